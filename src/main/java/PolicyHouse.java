@@ -94,6 +94,7 @@ public final class PolicyHouse {
     if (built != null) return built;
     Bundle b = checker.bundle(draft, drafts);
     if (b.kind == 0) coder.finish(b);
+    if (b.kind == 0) coder.encode();
     built = b;
     return b;
   }
@@ -491,7 +492,11 @@ public final class PolicyHouse {
       int other = cell[y] & 15;
       if (kind != other) return kind < other ? -1 : 1;
       if (kind < NUMBER) return 0;
-      if (kind == NUMBER) return Long.compare(number(x), number(y));
+      if (kind == NUMBER) {
+        int high = Integer.compare(cell[x + 1], cell[y + 1]);
+        if (high != 0) return high;
+        return Long.compare(cell[x + 2] & 0xffffffffL, cell[y + 2] & 0xffffffffL);
+      }
       int parts = kind == OBJECT ? 2 : 1;
       int n = (cell[x] >>> 4) * parts;
       int m = (cell[y] >>> 4) * parts;
@@ -508,44 +513,27 @@ public final class PolicyHouse {
       return compare(x, y) == 0;
     }
 
+    /** Sorts n entries of step cells by their first cell; equal ones stay as they come. */
     void sort(int base, int n, int step) {
       for (int width = 1; width < n; width *= 2) {
-        for (int low = 0; low < n; low += 2 * width) {
-          merge(base, low, Math.min(low + width, n), Math.min(low + 2 * width, n), step);
+        int i = 0;
+        int j = width;
+        for (int k = 0; k < n; k++) {
+          int low = k / (2 * width) * (2 * width);
+          if (k == low) {
+            i = low;
+            j = low + width;
+          }
+          boolean right = j < Math.min(low + 2 * width, n);
+          boolean left = i < low + width
+              && (!right || compare(acc[base + i * step], acc[base + j * step]) <= 0);
+          int from = base + (left ? i : j) * step;
+          for (int s = 0; s < step; s++) spare[base + k * step + s] = acc[from + s];
+          if (left) i++;
+          else j++;
         }
         System.arraycopy(spare, base, acc, base, n * step);
       }
-    }
-
-    void merge(int base, int low, int middle, int high, int step) {
-      int i = low;
-      int j = middle;
-      for (int k = low; k < high; k++) {
-        boolean left = j >= high
-            || i < middle && compare(acc[base + i * step], acc[base + j * step]) <= 0;
-        int from = base + (left ? i : j) * step;
-        for (int s = 0; s < step; s++) spare[base + k * step + s] = acc[from + s];
-        if (left) i++;
-        else j++;
-      }
-    }
-
-    /** How many are left of sorted entries without equal ones; -1 if equal keys differ in value. */
-    int distinct(int base, int n, int step, boolean last) {
-      sort(base, n, step);
-      int left = 0;
-      for (int i = 0; i < n; i++) {
-        int from = base + i * step;
-        int to = base + (left - 1) * step;
-        if (left > 0 && equal(acc[to], acc[from])) {
-          if (step == 2 && last) acc[to + 1] = acc[from + 1];
-          else if (step == 2 && !equal(acc[to + 1], acc[from + 1])) return -1;
-        } else {
-          for (int s = 0; s < step; s++) acc[base + left * step + s] = acc[from + s];
-          left++;
-        }
-      }
-      return left;
     }
 
     /**
@@ -555,9 +543,23 @@ public final class PolicyHouse {
     int made(int kind, int base, boolean lax) {
       int step = kind == OBJECT ? 2 : 1;
       int n = (used - base) / step;
-      if (kind != ARRAY) n = distinct(base, n, step, lax);
       used = base;
-      if (n < 0) return 0;
+      if (kind != ARRAY) {
+        sort(base, n, step);
+        int left = 0;
+        for (int i = 0; i < n; i++) {
+          int from = base + i * step;
+          int to = base + (left - 1) * step;
+          if (left > 0 && compare(acc[to], acc[from]) == 0) {
+            if (step == 2 && !lax && compare(acc[to + 1], acc[from + 1]) != 0) return 0;
+            if (step == 2) acc[to + 1] = acc[from + 1];
+          } else {
+            for (int s = 0; s < step; s++) acc[to + step + s] = acc[from + s];
+            left++;
+          }
+        }
+        n = left;
+      }
       int weight = 1;
       int depth = 0;
       for (int i = base; i < base + n * step && weight <= LAX; i++) {
@@ -574,9 +576,9 @@ public final class PolicyHouse {
 
     /** Where a key is in an object, an element in a set; -1. */
     int find(int h, int key) {
-      int step = kind(h) == OBJECT ? 2 : 1;
+      int step = (cell[h] & 15) == OBJECT ? 2 : 1;
       int low = 0;
-      int high = size(h) - 1;
+      int high = (cell[h] >>> 4) - 1;
       while (low <= high) {
         int middle = (low + high) >>> 1;
         int c = compare(cell[h + 2 + middle * step], key);
@@ -689,7 +691,7 @@ public final class PolicyHouse {
     }
 
     static int hexDigit(int c) {
-      if (isDigit(c)) return c - '0';
+      if (c >= '0' && c <= '9') return c - '0';
       if (c >= 'a' && c <= 'f') return c - 'a' + 10;
       return c >= 'A' && c <= 'F' ? c - 'A' + 10 : -1;
     }
@@ -1000,20 +1002,8 @@ public final class PolicyHouse {
   static final class Names {
     static final int MOST = 12288;
     static final int HASH = 16384;
-    static final String WORDS = "package import as default if contains else some in every not with"
-        + " true false null input data set _ ";
-    static final String BUILTINS = "abs n ceil n floor n round n numbers.range ww count y sum c"
-        + " product c max c min c sort c concat sc strings.includes ss startswith ss endswith ss"
-        + " indexof ss lower s upper s replace sss split ss strings.reverse s substring sww trim ss"
-        + " trim_left ss trim_right ss trim_prefix ss trim_suffix ss trim_space s strings.count ss"
-        + " format_int nw to_number x sprintf sa array.concat aa array.slice aww array.reverse a"
-        + " object.get oxx object.keys o object.remove ox object.filter ox object.union oo"
-        + " json.patch xa union t intersection t is_null x is_boolean x is_number x is_string x"
-        + " is_array x is_object x is_set x type_name x base64.encode s base64.decode s"
-        + " hex.encode s hex.decode s urlquery.encode s urlquery.decode s json.marshal x"
-        + " json.unmarshal s regex.match ss glob.match sxs net.cidr_contains ss semver.is_valid s"
-        + " semver.compare ss units.parse_bytes s time.date w time.clock w time.weekday w"
-        + " time.seconds a walk x ";
+    static final String WORDS = "package import as default if contains else some in every not with true false null input data set _ ";
+    static final String BUILTINS = "abs n ceil n floor n round n numbers.range ww count y sum c product c max c min c sort c concat sc strings.includes ss startswith ss endswith ss indexof ss lower s upper s replace sss split ss strings.reverse s substring sww trim ss trim_left ss trim_right ss trim_prefix ss trim_suffix ss trim_space s strings.count ss format_int nw to_number x sprintf sa array.concat aa array.slice aww array.reverse a object.get oxx object.keys o object.remove ox object.filter ox object.union oo json.patch xa union t intersection t is_null x is_boolean x is_number x is_string x is_array x is_object x is_set x type_name x base64.encode s base64.decode s hex.encode s hex.decode s urlquery.encode s urlquery.decode s json.marshal x json.unmarshal s regex.match ss glob.match sxs net.cidr_contains ss semver.is_valid s semver.compare ss units.parse_bytes s time.date w time.clock w time.weekday w time.seconds a walk x ";
     final Heap heap;
     final int[] table = new int[HASH];
     final int[] parent = new int[MOST];
@@ -1026,6 +1016,10 @@ public final class PolicyHouse {
     final int[] kinds = new int[70];
     final int[] arity = new int[70];
     final int[] letters = new int[32];
+    final int input;
+    final int data;
+    final int set;
+    final int blank;
 
     Names(Heap heap) {
       this.heap = heap;
@@ -1035,6 +1029,10 @@ public final class PolicyHouse {
         words[i] = symOf(WORDS, at, stop);
         at = stop + 1;
       }
+      input = words[15];
+      data = words[16];
+      set = words[17];
+      blank = words[18];
       at = 0;
       for (int i = 0; i < 70; i++) {
         int stop = stopOf(BUILTINS, at);
@@ -1072,22 +1070,6 @@ public final class PolicyHouse {
       return node;
     }
 
-    int inputName() {
-      return words[15];
-    }
-
-    int dataName() {
-      return words[16];
-    }
-
-    int setName() {
-      return words[17];
-    }
-
-    int blankName() {
-      return words[18];
-    }
-
     boolean same(int h, int[] src, int from, int n) {
       if (heap.cell[h] >>> 4 != n) return false;
       for (int i = 0; i < n; i++) {
@@ -1110,7 +1092,7 @@ public final class PolicyHouse {
         if (same(h, src, from, n)) return h;
         slot = slot + 1 & HASH - 1;
       }
-      return words[18];
+      return blank;
     }
 
     /** The child of a node, or -1. */
@@ -1479,7 +1461,7 @@ public final class PolicyHouse {
     }
 
     boolean isBlankName() {
-      return worth[now] == names.blankName();
+      return worth[now] == names.blank;
     }
 
     /** A name that is no wildcard: its string. */
@@ -1518,13 +1500,13 @@ public final class PolicyHouse {
       tree.pack = path(node(Tree.NAME), 0);
       tree.root = tree.add(Tree.BODY, 0);
       int list = tree.add(Tree.BODY, 0);
-      for (int n = 0; is(IMPORT); n++) {
-        if (n >= 10) fail();
+      for (int n = 0; n <= 10 && is(IMPORT); n++) {
+        if (n == 10) fail();
         tree.append(list, readImport());
       }
       tree.imports = tree.first[list];
-      for (int n = 0; wrong < 0 && !is(END); n++) {
-        if (n >= 100) fail();
+      for (int n = 0; n <= 100 && wrong < 0 && !is(END); n++) {
+        if (n == 100) fail();
         deep = 0;
         tree.append(tree.root, readRule());
         tree.rules = n + 1;
@@ -1544,8 +1526,8 @@ public final class PolicyHouse {
     int readImport() {
       int n = node(Tree.IMPORT);
       take();
-      if (!is(NAME) || worth[now] != names.inputName() && worth[now] != names.dataName()) fail();
-      tree.a[n] = worth[now] == names.dataName() ? 1 : 0;
+      if (!is(NAME) || worth[now] != names.input && worth[now] != names.data) fail();
+      tree.a[n] = worth[now] == names.data ? 1 : 0;
       take();
       if (!joined(DOT)) fail();
       take();
@@ -1673,14 +1655,14 @@ public final class PolicyHouse {
       return n;
     }
 
-    void readWiths(int literal) {
+    private void readWiths(int literal) {
       int list = 0;
-      for (int i = 0; is(WITH); i++) {
-        if (i >= 4) fail();
+      for (int i = 0; i <= 4 && is(WITH); i++) {
+        if (i == 4) fail();
         take();
         int w = node(Tree.WITH);
-        if (!is(NAME) || worth[now] != names.inputName() && worth[now] != names.dataName()) fail();
-        tree.a[w] = worth[now] == names.dataName() ? 1 : 0;
+        if (!is(NAME) || worth[now] != names.input && worth[now] != names.data) fail();
+        tree.a[w] = worth[now] == names.data ? 1 : 0;
         take();
         int path = node(Tree.NAME);
         if (joined(DOT)) {
@@ -1714,11 +1696,11 @@ public final class PolicyHouse {
         return n;
       }
       boolean second = right == 0 || tree.kind[right] == Tree.REF && tree.first[right] == 0;
-      if (!named || !second || tree.a[left] == names.blankName()) fail();
-      if (right != 0 && tree.a[right] == names.blankName()) fail();
+      if (!named || !second || tree.a[left] == names.blank) fail();
+      if (right != 0 && tree.a[right] == names.blank) fail();
       tree.append(n, asName(left));
       tree.append(n, asName(right));
-      while (right != 0 && takes(COMMA)) {
+      for (int i = 0; i < TOKENS && right != 0 && takes(COMMA); i++) {
         int more = node(Tree.NAME);
         tree.a[more] = plainName();
         tree.append(n, more);
@@ -1767,7 +1749,7 @@ public final class PolicyHouse {
         return;
       }
       readLevel(list, level + 1);
-      while (wrong < 0 && levelOf(sort[now]) == level) {
+      for (int i = 0; i < TOKENS && wrong < 0 && levelOf(sort[now]) == level; i++) {
         int sign = node(Tree.SIGN);
         tree.a[sign] = sort[now];
         take();
@@ -1859,11 +1841,10 @@ public final class PolicyHouse {
       tree.first[n] = 0;
       open();
       if (is(SHUT)) {
-        if (count == 1 && tree.a[n] == names.setName()) tree.kind[n] = Tree.SET;
+        if (count == 1 && tree.a[n] == names.set) tree.kind[n] = Tree.SET;
       } else {
-        do {
-          tree.append(n, readExpression(0));
-        } while (takes(COMMA));
+        tree.append(n, readExpression(0));
+        for (int i = 0; i < TOKENS && takes(COMMA); i++) tree.append(n, readExpression(0));
       }
       shut(SHUT);
       return n;
@@ -1877,7 +1858,7 @@ public final class PolicyHouse {
         if (is(BAR)) {
           readComprehension(n, Tree.ARRAYS, RIGHT);
         } else {
-          while (takes(COMMA)) tree.append(n, readExpression(2));
+          for (int i = 0; i < TOKENS && takes(COMMA); i++) tree.append(n, readExpression(2));
         }
       }
       shut(RIGHT);
@@ -1903,7 +1884,7 @@ public final class PolicyHouse {
         if (is(BAR)) {
           readComprehension(n, pairs ? Tree.OBJECTS : Tree.SETS, UNCURL);
         } else {
-          while (takes(COMMA)) {
+          for (int i = 0; i < TOKENS && takes(COMMA); i++) {
             tree.append(n, readExpression(2));
             if (pairs) readPairValue(n);
           }
@@ -1921,7 +1902,7 @@ public final class PolicyHouse {
     /** A term as behind default. */
     private int readConstant() {
       if (is(OPEN) || is(LEFT) || is(CURL)) return readConstantRow();
-      if (!is(NAME) || worth[now] != names.setName()) return readScalar();
+      if (!is(NAME) || worth[now] != names.set) return readScalar();
       int n = node(Tree.SET);
       take();
       if (joined(OPEN)) open();
@@ -1941,7 +1922,7 @@ public final class PolicyHouse {
         boolean pairs = close == UNCURL && is(COLON);
         if (close == UNCURL && !pairs) tree.kind[n] = Tree.SET;
         if (pairs) readConstantValue(n);
-        while (!round && takes(COMMA)) {
+        for (int i = 0; i < TOKENS && !round && takes(COMMA); i++) {
           tree.append(n, readConstant());
           if (pairs) readConstantValue(n);
         }
@@ -2149,7 +2130,7 @@ public final class PolicyHouse {
 
     boolean isClash(Tree tree, int node) {
       int alias = tree.c[node];
-      if (alias == names.inputName() || alias == names.dataName()) return true;
+      if (alias == names.input || alias == names.data) return true;
       for (int i = tree.imports; i != node && i != 0; i = tree.next[i]) {
         if (tree.c[i] == alias) return true;
       }
@@ -2159,7 +2140,7 @@ public final class PolicyHouse {
     boolean isPartClash(Tree tree, int p, int node) {
       int sort = tree.b[node];
       int r = b.part[p * Bundle.STRIDE + Bundle.OWNER];
-      if (tree.a[node] == names.inputName() || tree.a[node] == names.dataName()) return true;
+      if (tree.a[node] == names.input || tree.a[node] == names.data) return true;
       if (b.isInner(b.of(r, Bundle.NODE))) return true;
       if (b.of(r, Bundle.SORT) != (sort & 7)) return true;
       if ((sort & 8) == 0) return sort >> 4 != b.of(r, Bundle.ARITY);
@@ -2276,7 +2257,7 @@ public final class PolicyHouse {
     private void addPattern(int n, int scope) {
       if (t.kind[n] == Tree.REF) {
         t.res[n] = BLANK;
-        if (t.a[n] != names.blankName()) addVariable(n, scope);
+        if (t.a[n] != names.blank) addVariable(n, scope);
       } else if (t.kind[n] == Tree.ARRAY) {
         for (int i = t.first[n]; i != 0; i = t.next[i]) addPattern(i, scope);
       } else if (t.kind[n] == Tree.OBJECT) {
@@ -2293,7 +2274,7 @@ public final class PolicyHouse {
     void checkDeclared() {
       for (int i = 0; i < count; i++) {
         int sym = declared[i];
-        boolean bad = i == VARIABLES || sym == names.inputName() || sym == names.dataName()
+        boolean bad = i == VARIABLES || sym == names.input || sym == names.data
             || aliasOf(sym) != 0 || ruleOf(sym) >= 0;
         for (int j = 0; j < count && !bad; j++) {
           bad = declared[j] == sym && j != i && (j < i || scopeOf[j] != scopeOf[i])
@@ -2359,7 +2340,7 @@ public final class PolicyHouse {
 
     private void resolveStep(int n, int scope) {
       if (n == 0) return;
-      if (t.isName(n, names.blankName())) t.res[n] = BLANK;
+      if (t.isName(n, names.blank)) t.res[n] = BLANK;
       else resolve(n, scope);
     }
 
@@ -2368,7 +2349,7 @@ public final class PolicyHouse {
     }
 
     private void resolveSide(int n, int scope) {
-      if (t.isName(n, names.blankName())) {
+      if (t.isName(n, names.blank)) {
         t.res[n] = BLANK;
       } else if (t.kind[n] == Tree.ARRAY) {
         for (int i = t.first[n]; i != 0; i = t.next[i]) resolveSide(i, scope);
@@ -2388,14 +2369,14 @@ public final class PolicyHouse {
       int alias = aliasOf(sym);
       int r = ruleOf(sym);
       t.res[n] = 0;
-      if (sym == names.blankName()) {
+      if (sym == names.blank) {
         report(2, t.at[n]);
       } else if (v >= 0) {
         t.res[n] = VAR;
         t.ref[n] = v;
-      } else if (sym == names.inputName()) {
+      } else if (sym == names.input) {
         t.res[n] = INPUT;
-      } else if (sym == names.dataName()) {
+      } else if (sym == names.data) {
         t.res[n] = DATA;
       } else if (alias != 0) {
         t.res[n] = ALIAS;
@@ -2427,7 +2408,7 @@ public final class PolicyHouse {
       int own = t.c[n] == 1 ? ruleOf(t.a[n]) : -1;
       if (own >= 0 && b.of(own, Bundle.SORT) == 1) return own;
       int node = -1;
-      if (t.a[n] == names.dataName()) node = 0;
+      if (t.a[n] == names.data) node = 0;
       else if (alias != 0 && t.a[alias] == 1) node = t.ref[alias];
       for (int d = t.b[n]; d != 0 && node >= 0; d = t.next[d]) node = names.find(node, t.a[d]);
       int r = b.ruleAt(node);
@@ -2653,7 +2634,7 @@ public final class PolicyHouse {
       this.checker = checker;
     }
 
-    /** The faults 8 and 9 of a bundle without others, else its code. */
+    /** The faults 8 and 9 of a bundle without others. */
     void finish(Bundle bundle) {
       b = bundle;
       for (int pass = 8; pass <= 9; pass++) {
@@ -2661,22 +2642,18 @@ public final class PolicyHouse {
           int p = b.of(r, Bundle.FIRST);
           for (; p >= 0 && b.kind == 0; p = b.part[p * Bundle.STRIDE + Bundle.NEXT]) {
             badKind = 0;
-            checkPart(p, pass);
+            checker.scanPart(p);
+            t = checker.t;
+            int node = b.part[p * Bundle.STRIDE + Bundle.PART];
+            if (pass == 9) checkKinds(node);
+            else arrangePart(node);
             if (badKind != 0) b.fail(badKind, checker.module, badPlace);
           }
         }
       }
-      if (b.kind == 0) encode();
     }
 
-    void checkPart(int p, int pass) {
-      checker.scanPart(p);
-      t = checker.t;
-      int node = b.part[p * Bundle.STRIDE + Bundle.PART];
-      if (pass == 9) {
-        checkKinds(node);
-        return;
-      }
+    void arrangePart(int node) {
       for (int i = t.first[node]; i != 0 && badKind == 0; i = t.next[i]) {
         if (t.kind[i] == Tree.BRANCH) arrange(i, t.res[i]);
       }
@@ -2765,10 +2742,18 @@ public final class PolicyHouse {
       int tail = body;
       int start = t.first[body];
       for (int i = start; i != 0; i = t.next[i]) t.c[i] = 0;
-      while (start != 0) {
+      for (int n = 0; n < t.size && start != 0; n++) {
         int found = 0;
         for (int i = start; i != 0 && found == 0; i = t.next[i]) {
-          if (t.c[i] == 0 && takesPlace(i)) found = i;
+          if (t.c[i] != 0) continue;
+          int was = known;
+          if (isReadyLiteral(i)) {
+            found = i;
+            t.c[i] = Math.max(t.c[i], 1);
+          } else {
+            known = was;
+            t.c[i] = 0;
+          }
         }
         if (found == 0) {
           report(8, t.at[start]);
@@ -2784,17 +2769,6 @@ public final class PolicyHouse {
           if ((known >>> t.ref[v] & 1) == 0) report(8, t.at[i]);
         }
       }
-    }
-
-    boolean takesPlace(int literal) {
-      int was = known;
-      if (isReadyLiteral(literal)) {
-        t.c[literal] = Math.max(t.c[literal], 1);
-        return true;
-      }
-      known = was;
-      t.c[literal] = 0;
-      return false;
     }
 
     boolean isReadyLiteral(int n) {
@@ -3382,7 +3356,9 @@ public final class PolicyHouse {
     void take(int n) {
       if (free || limit) return;
       fuel += n;
-      if (fuel > FUEL) exhaust();
+      if (fuel <= FUEL) return;
+      fuel = FUEL;
+      limit = true;
     }
 
     void exhaust() {
@@ -3523,12 +3499,16 @@ public final class PolicyHouse {
       return value != 0;
     }
 
+    /** What an object has by a key; the value 0 is none. */
     int below(int value, int key) {
-      return value != 0 && heap.kind(value) == Heap.OBJECT ? heap.stepTo(value, key) : 0;
+      return heap.kind(value) == Heap.OBJECT ? heap.stepTo(value, key) : 0;
     }
 
     boolean stepFrom(int node, int value, int key) {
-      if (node >= 0) return enter(names.findValue(node, key), below(value, key));
+      if (node >= 0) {
+        int below = heap.kind(value) == Heap.OBJECT ? heap.stepTo(value, key) : 0;
+        return enter(names.findValue(node, key), below);
+      }
       outNode = -1;
       outValue = heap.stepTo(value, key);
       return outValue != 0;
@@ -3637,6 +3617,26 @@ public final class PolicyHouse {
 
     /** A run: what came of it stands in scopes, results and the documents of scope. */
     void perform(Query q, int input, boolean strict) {
+      begin(q, input, strict);
+      for (int i = 0; i < STEPS && !stopped; i++) {
+        int op = failing || pending ? 0 : fetch();
+        if (failing) goBack();
+        else if (pending) nextDocument();
+        else if (op == Coder.BUILTIN && isPaid()) giveBuiltin(builtins.call(c[p + 1]));
+        else if (op <= Coder.FUNCTION) stepValue(op);
+        else if (op <= Coder.TEST) stepChoice(op);
+        else stepMatch(op);
+        if (scopes.limit || heap.full) stopped = true;
+      }
+      if (!stopped || heap.full || scopes.limit) {
+        scopes.exhaust();
+        heap.reset(Heap.RUN);
+      }
+      if (scopes.outcome() == 0) results = heap.made(Heap.SET, 0, true);
+      heap.used = 0;
+    }
+
+    void begin(Query q, int input, boolean strict) {
       heap.reset(Heap.RUN);
       scopes.begin(q.bundle, q.value, input, strict);
       bundle = q.bundle;
@@ -3646,23 +3646,17 @@ public final class PolicyHouse {
       choices = 0;
       failing = false;
       stopped = false;
-      pending = false;
       fp = 0;
       top = q.frame;
       choose(END, 0);
       makeDocuments(scopes.wanted(q.reads, 0), QUERY);
-      for (int i = 0; i < STEPS && !stopped; i++) {
-        if (failing) goBack();
-        else if (pending) nextDocument();
-        else step();
-        if (scopes.limit || heap.full) stopped = true;
-      }
-      if (!stopped || heap.full || scopes.limit) {
-        scopes.exhaust();
-        heap.reset(Heap.RUN);
-      }
-      if (scopes.outcome() == 0) results = heap.made(Heap.SET, 0, true);
-      heap.used = 0;
+    }
+
+    int fetch() {
+      boolean query = pc >= QUERY;
+      c = query ? own : bundle.code;
+      p = query ? pc - QUERY : pc;
+      return c[p];
     }
 
     /** A new choice, at which the run goes on with this frame and scope: its place. */
@@ -3776,18 +3770,18 @@ public final class PolicyHouse {
       beginPart(t, bundle.of(r, Bundle.FIRST));
     }
 
+    /** Behind the last part the way fails, and B is below 0. */
     void beginPart(int t, int part) {
       int p = part;
-      while (p >= 0 && bundle.part[p * Bundle.STRIDE + Bundle.COUNT] == 0) {
+      for (int i = 0; i < bundle.parts && p >= 0; i++) {
+        if (bundle.part[p * Bundle.STRIDE + Bundle.COUNT] > 0) break;
         p = bundle.part[p * Bundle.STRIDE + Bundle.NEXT];
-      }
-      if (p < 0) {
-        finishRule(t);
-        return;
       }
       cp[t + B] = p;
       cp[t + C] = -1;
       cp[t + E] = 0;
+      failing = p < 0;
+      if (failing) return;
       fp = cp[t + I];
       pc = bundle.branch[bundle.part[p * Bundle.STRIDE + Bundle.START]];
     }
@@ -3797,6 +3791,10 @@ public final class PolicyHouse {
       if (cp[t + C] == -2) {
         scopes.free = false;
         endRule(t, 0);
+        return;
+      }
+      if (cp[t + B] < 0) {
+        finishRule(t);
         return;
       }
       int at = cp[t + B] * Bundle.STRIDE;
@@ -3875,16 +3873,6 @@ public final class PolicyHouse {
       return o < 0 ? -o : regs[fp + o];
     }
 
-    void step() {
-      boolean query = pc >= QUERY;
-      c = query ? own : bundle.code;
-      p = query ? pc - QUERY : pc;
-      int op = c[p];
-      if (op <= Coder.FUNCTION) stepValue(op);
-      else if (op <= Coder.TEST) stepChoice(op);
-      else stepMatch(op);
-    }
-
     void stepValue(int op) {
       switch (op) {
         case Coder.TRY:
@@ -3925,12 +3913,11 @@ public final class PolicyHouse {
           set(c[p + 2], sign(c[p + 1], val(3), val(4)));
           pc += 5;
           break;
-        case Coder.BUILTIN:
-          set(c[p + 2], callBuiltin(c[p + 1], c[p + 3]));
-          pc += 4 + c[p + 3];
+        case Coder.FUNCTION:
+          callFunction(c[p + 1], c[p + 3]);
           break;
         default:
-          callFunction(c[p + 1], c[p + 3]);
+          stopped = true;
       }
     }
 
@@ -3981,17 +3968,21 @@ public final class PolicyHouse {
       return scopes.weigh(builtins.sign(sign, x, y));
     }
 
-    int callBuiltin(int id, int n) {
-      for (int i = 0; i < n; i++) {
+    /** The operands are there, and what they take is taken. */
+    boolean isPaid() {
+      for (int i = 0; i < c[p + 3]; i++) {
         int value = val(4 + i);
         builtins.arg[i] = value;
         scopes.take(heap.weight(value));
       }
-      if (scopes.limit) return 0;
-      int value = builtins.call(id);
+      return !scopes.limit;
+    }
+
+    void giveBuiltin(int value) {
       scopes.take(builtins.spent);
-      if (value == 0 && scopes.strict) scopes.noteBuiltin(id);
-      return scopes.weigh(value);
+      if (value == 0 && scopes.strict) scopes.noteBuiltin(c[p + 1]);
+      set(c[p + 2], scopes.weigh(value));
+      pc += 4 + c[p + 3];
     }
 
     void callFunction(int r, int n) {
@@ -4321,12 +4312,18 @@ public final class PolicyHouse {
       if (id < 0 || id >= 70 || !takesAll(id)) return 0;
       if (id <= 3) return rounded(id, heap.number(arg[0]));
       if (id <= 10) return ofRow(id);
-      if (id <= 31) return strings.call(id, arg);
+      if (id == 31) return strings.sprintf(arg[0], arg[1]);
+      if (id < 31) return strings.call(id, arg);
       if (id <= 36) return ofArray(id);
+      if (id == 40) return patched(arg[0], arg[1], false);
       if (id <= 42) return ofObject(id);
       if (id <= 50) return ofKind(id);
       if (id == 57) return json(arg[0]);
-      if (id == 58) return heap.checked(unjson(arg[0]));
+      if (id == 58) {
+        int start = arg[0] + 1;
+        return heap.checked(texts.readJson(heap.cell, start, start + heap.size(arg[0])));
+      }
+      if (id == 60) return strings.globMatch(arg[0], arg[1], arg[2]);
       if (id <= 64) return strings.callMore(id, arg);
       return id == 69 ? walkAll(arg[0]) : ofTime(id);
     }
@@ -4428,8 +4425,6 @@ public final class PolicyHouse {
           return heap.isRow(arg[1]) ? filtered(arg[0], arg[1], id == 38) : 0;
         case 39:
           return joined(arg[0], arg[1]);
-        case 40:
-          return patched(arg[0], arg[1], false);
         default:
           return ofSets(arg[0], id == 41);
       }
@@ -4517,10 +4512,6 @@ public final class PolicyHouse {
       return texts.over ? Heap.BIG : heap.newString(texts.out, 0, texts.length);
     }
 
-    int unjson(int s) {
-      return texts.readJson(heap.cell, s + 1, s + 1 + heap.size(s));
-    }
-
     int ofTime(int id) {
       if (id == 68) return seconds(arg[0]);
       long all = heap.number(arg[0]) / Heap.ONE;
@@ -4565,7 +4556,7 @@ public final class PolicyHouse {
       for (int i = 0; i < 40 && daysTo(year + 1) <= days; i++) year++;
       long rest = days - daysTo(year);
       int month = 1;
-      while (month < 12 && rest >= daysIn(year, month)) {
+      for (int i = 1; i < 12 && rest >= daysIn(year, month); i++) {
         rest -= daysIn(year, month);
         month++;
       }
@@ -4754,25 +4745,18 @@ public final class PolicyHouse {
       int v = last ? value : edit(heap.item(h, at), i + 1, n, kind, value);
       if (!last && v <= 0) return v;
       boolean inserts = last && kind == 0 && array;
-      return rebuilt(h, i, at, v, last && kind == 1 ? 1 : inserts ? 2 : 0);
-    }
-
-    /** Kind 1 leaves out what is at a place, 2 puts a value ahead of it, 0 puts one there. */
-    int rebuilt(int h, int i, int at, int value, int kind) {
+      boolean removes = last && kind == 1;
       int base = heap.used;
-      int size = heap.size(h);
-      boolean array = heap.kind(h) == Heap.ARRAY;
       for (int k = 0; k < size; k++) {
-        if (k == at && (kind == 2 || array && kind == 0)) heap.push(value);
-        if (k == at && kind < 2) continue;
+        if (k == at && array && !removes) heap.push(v);
+        if (k == at && !inserts) continue;
         if (!array) heap.push(heap.label(h, k));
         heap.push(heap.item(h, k));
       }
-      if (array && kind == 2 && at >= size) {
-        heap.push(value);
-      } else if (!array && kind == 0) {
+      if (inserts && at >= size) heap.push(v);
+      if (!array && !removes) {
         heap.push(path[i]);
-        heap.push(value);
+        heap.push(v);
       }
       return heap.made(array ? Heap.ARRAY : Heap.OBJECT, base, true);
     }
@@ -4836,11 +4820,7 @@ public final class PolicyHouse {
     }
 
     void putString(int s) {
-      putAll(s, 0, heap.size(s));
-    }
-
-    void putText(String text) {
-      for (int i = 0; i < text.length(); i++) put(text.charAt(i));
+      for (int i = 0; i < heap.size(s) && !over; i++) put(heap.cell[s + 1 + i]);
     }
 
     int made() {
@@ -4908,8 +4888,6 @@ public final class PolicyHouse {
           return inBase(heap.number(s), heap.number(x) / Heap.ONE);
         case 30:
           return toNumber(s);
-        case 31:
-          return sprintf(s, x);
         default:
           return trimmed(id, s, x);
       }
@@ -4939,7 +4917,7 @@ public final class PolicyHouse {
       if (n == 0) return 0;
       int at = 0;
       int next = find(s, what, 0);
-      while (next >= 0 && !over) {
+      for (int i = 0; i < Heap.HEAVY && next >= 0 && !over; i++) {
         putAll(s, at, next);
         putString(by);
         at = next + n;
@@ -4957,9 +4935,11 @@ public final class PolicyHouse {
         for (int i = 0; i < heap.size(s); i++) heap.push(part(s, i, i + 1));
         return heap.made(Heap.ARRAY, base, false);
       }
-      for (int next = find(s, by, 0); next >= 0; next = find(s, by, at)) {
+      int next = find(s, by, 0);
+      for (int i = 0; i < Heap.HEAVY && next >= 0; i++) {
         heap.push(part(s, at, next));
         at = next + n;
+        next = find(s, by, at);
       }
       heap.push(part(s, at, heap.size(s)));
       return heap.made(Heap.ARRAY, base, false);
@@ -4975,7 +4955,11 @@ public final class PolicyHouse {
 
     long countOf(int s, int what) {
       long n = 0;
-      for (int i = find(s, what, 0); i >= 0; i = find(s, what, i + heap.size(what))) n++;
+      int at = find(s, what, 0);
+      for (int i = 0; i < Heap.HEAVY && at >= 0; i++) {
+        n++;
+        at = find(s, what, at + heap.size(what));
+      }
       return n;
     }
 
@@ -5004,6 +4988,7 @@ public final class PolicyHouse {
     }
 
     int sprintf(int s, int row) {
+      begin();
       int n = heap.size(s);
       int used = 0;
       for (int i = 0; i < n; i++) {
@@ -5077,8 +5062,6 @@ public final class PolicyHouse {
           return unurlquery(s);
         case 59:
           return regexMatch(s, arg[1]);
-        case 60:
-          return globMatch(s, arg[1], arg[2]);
         case 61:
           return cidr(s, arg[1]);
         case 62:
@@ -5250,7 +5233,7 @@ public final class PolicyHouse {
     }
 
     static boolean isIdentifier(int c) {
-      return Texts.isDigit(c) || Texts.isLetter(c) || c == '-';
+      return c >= '0' && c <= '9' || c >= 'A' && c <= 'Z' || c >= 'a' && c <= 'z' || c == '-';
     }
 
     boolean isVersion(int s) {
@@ -5298,7 +5281,7 @@ public final class PolicyHouse {
       boolean more = p < stop && heap.cell[p] == '-';
       boolean other = q < halt && heap.cell[q] == '-';
       if (c == 0 && more != other) c = more ? -1 : 1;
-      while (c == 0 && more && other) {
+      for (int i = 0; i < Heap.HEAVY && c == 0 && more && other; i++) {
         int a = behind(p + 1, stop, false);
         int b = behind(q + 1, halt, false);
         c = comparePart(p + 1, a, q + 1, b);
@@ -5393,7 +5376,7 @@ public final class PolicyHouse {
     }
 
     void includeAll(int set, int from, int to) {
-      for (int c = from; c <= to; c++) include(set, c);
+      for (int c = from; c <= to; c++) sets[set * 8 + (c >> 5 & 7)] |= 1 << (c & 31);
     }
 
     void complement(int set) {
@@ -5524,15 +5507,21 @@ public final class PolicyHouse {
       int items = 0;
       while (!bad && pos < end && byteAt(pos) != ']') {
         items++;
-        int from = setByte(set);
-        if (from < 0) continue;
+        boolean named = byteAt(pos) == '\\' && !isSpecial(byteAt(pos + 1))
+            && byteAt(pos + 1) != '-';
+        if (named) {
+          addNamed(set, byteAt(pos + 1));
+          pos += 2;
+          continue;
+        }
+        int from = setByte();
         int to = from;
         if (byteAt(pos) == '-') {
           pos++;
-          to = pos < end && byteAt(pos) != ']' ? setByte(-1) : -1;
+          to = pos < end && byteAt(pos) != ']' ? setByte() : -1;
         }
         if (to < from) bad = true;
-        includeAll(set, from, to);
+        else includeAll(set, from, to);
       }
       if (items == 0 || pos >= end) bad = true;
       pos++;
@@ -5540,8 +5529,8 @@ public final class PolicyHouse {
       return set;
     }
 
-    /** A byte of a set; -1 where it was a class, which no range may have. */
-    int setByte(int set) {
+    /** A byte of a set, itself or behind a \; -1 where there is none such. */
+    int setByte() {
       int c = byteAt(pos);
       pos++;
       if (c == '-') bad = true;
@@ -5549,19 +5538,8 @@ public final class PolicyHouse {
       int e = byteAt(pos);
       pos++;
       if (isSpecial(e) || e == '-') return e;
-      if (set < 0) {
-        bad = true;
-      } else {
-        addNamed(set, e);
-        if (byteAt(pos) == '-') bad = true;
-      }
+      bad = true;
       return -1;
-    }
-
-    int repeatNumber() {
-      int n = smallNumber(20);
-      if (n < 0) bad = true;
-      return n;
     }
 
     /** Perhaps * + ? { } behind what was written from start on: its parts then. */
@@ -5572,13 +5550,15 @@ public final class PolicyHouse {
       int least = c == '+' ? 1 : 0;
       int most = c == '?' ? 1 : -1;
       if (c == '{') {
-        least = repeatNumber();
+        least = smallNumber(20);
         most = least;
+        boolean open = false;
         if (byteAt(pos) == ',') {
           pos++;
-          most = byteAt(pos) == '}' ? -1 : repeatNumber();
+          open = byteAt(pos) == '}';
+          most = open ? -1 : smallNumber(20);
         }
-        if (byteAt(pos) != '}' || most >= 0 && most < least) bad = true;
+        if (byteAt(pos) != '}' || least < 0 || !open && most < least) bad = true;
         pos++;
       }
       int next = byteAt(pos);
@@ -5640,7 +5620,7 @@ public final class PolicyHouse {
       int high = 1;
       stack[0] = from;
       boolean ends = false;
-      while (high > 0) {
+      for (int k = 0; k < 4 * PROGRAM && high > 0; k++) {
         high--;
         int at = stack[high];
         if (at < 0 || at >= length || mark[at] == i) continue;
@@ -5667,6 +5647,17 @@ public final class PolicyHouse {
     int globMatch(int s, int row, int text) {
       if (heap.kind(row) != 0 && heap.kind(row) != Heap.ARRAY) return 0;
       startPattern(s);
+      delimiters(row);
+      while (!bad && pos < end) {
+        if (byteAt(pos) == '{') globChoice();
+        else globItem();
+      }
+      emit(MATCH, 0);
+      return bad ? 0 : heap.truth(isMatching(text, true));
+    }
+
+    /** Set 0 has all bytes but the delimiters, set 1 all. */
+    void delimiters(int row) {
       int set = newSet();
       if (heap.kind(row) == 0) include(set, '.');
       for (int i = 0; heap.kind(row) != 0 && i < heap.size(row); i++) {
@@ -5674,14 +5665,7 @@ public final class PolicyHouse {
         if (heap.kind(e) == Heap.STRING && heap.size(e) == 1) include(set, heap.cell[e + 1]);
       }
       complement(set);
-      int any = newSet();
-      complement(any);
-      while (!bad && pos < end) {
-        if (byteAt(pos) == '{') globChoice();
-        else globItem();
-      }
-      emit(MATCH, 0);
-      return bad ? 0 : heap.truth(isMatching(text, true));
+      complement(newSet());
     }
 
     void globItem() {
