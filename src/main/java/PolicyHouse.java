@@ -605,13 +605,13 @@ public final class PolicyHouse {
     int stepTo(int h, int key) {
       int kind = kind(h);
       if (kind == ARRAY) {
-        if (!isWhole(key)) return 0;
-        long i = number(key) / ONE;
-        return i < 0 || i >= size(h) ? 0 : cell[h + 2 + (int) i];
+        long i = (cell[key] & 15) == NUMBER ? number(key) : -1;
+        return i < 0 || i % ONE != 0 || i / ONE >= size(h) ? 0 : cell[h + 2 + (int) (i / ONE)];
       }
       if (kind != OBJECT && kind != SET) return 0;
       int i = find(h, key);
-      return i < 0 ? 0 : item(h, i);
+      if (i < 0) return 0;
+      return kind == OBJECT ? cell[h + 3 + 2 * i] : cell[h + 2 + i];
     }
 
     boolean isRow(int h) {
@@ -4638,6 +4638,7 @@ public final class PolicyHouse {
       return heap.stepTo(op, member[i]);
     }
 
+    /** What one operation makes of a value, 0 if it can't be done. */
     int operate(int h, int op) {
       if (heap.kind(op) != Heap.OBJECT) return 0;
       int name = memberOf(op, 0);
@@ -4647,7 +4648,13 @@ public final class PolicyHouse {
       int n = pointer(way, path);
       if (n < 0) return 0;
       boolean moves = heap.has(name, "move");
-      if (moves || heap.has(name, "copy")) return carry(h, n, memberOf(op, 2), moves);
+      if (moves || heap.has(name, "copy")) {
+        int start = memberOf(op, 2);
+        int m = start == 0 || heap.kind(start) != Heap.STRING ? -1 : pointer(start, from);
+        value = m < 0 ? 0 : find(h, from, m);
+        if (value == 0) return 0;
+        return moves ? moved(h, m, n, value) : edit(h, 0, n, 0, value);
+      }
       if (heap.has(name, "remove")) return n == 0 ? 0 : edit(h, 0, n, 1, 0);
       if (value == 0) return 0;
       if (heap.has(name, "add")) return edit(h, 0, n, 0, value);
@@ -4657,12 +4664,8 @@ public final class PolicyHouse {
       return there != 0 && heap.equal(there, value) ? h : 0;
     }
 
-    int carry(int h, int n, int start, boolean moves) {
-      if (start == 0 || heap.kind(start) != Heap.STRING) return 0;
-      int m = pointer(start, from);
-      int value = m < 0 ? 0 : find(h, from, m);
-      if (value == 0) return 0;
-      if (!moves) return edit(h, 0, n, 0, value);
+    /** What is at from, m names long, goes to path, n names long. */
+    int moved(int h, int m, int n, int value) {
       if (m == 0) return 0;
       boolean within = m < n;
       for (int i = 0; i < m && within; i++) within = heap.equal(from[i], path[i]);
