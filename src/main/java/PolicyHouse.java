@@ -359,13 +359,13 @@ public final class PolicyHouse {
     static final int SLOTS = 120000;
     static final int SLOT = 16500;
     static final int RUN = 318000;
-    static final int SPILL = 1300000;
-    static final int CELLS = 1370000;
+    static final int SPILL = 960000;
+    static final int CELLS = 1030000;
     static final int LAX = 60000;
 
     final int[] cell = new int[CELLS];
-    final int[] acc = new int[130000];
-    final int[] spare = new int[130000];
+    final int[] acc = new int[100000];
+    final int[] spare = new int[100000];
     int used = 0;
     int kept = 16;
     int top = RUN;
@@ -441,14 +441,10 @@ public final class PolicyHouse {
 
     int newNumber(long value) {
       int h = room(3);
-      setNumber(h, value);
-      return h;
-    }
-
-    void setNumber(int h, long value) {
       cell[h] = NUMBER;
       cell[h + 1] = (int) (value >>> 32);
       cell[h + 2] = (int) value;
+      return h;
     }
 
     /** None for a number that is out of bounds. */
@@ -481,7 +477,9 @@ public final class PolicyHouse {
       if (kept + 3 > SLOTS) return NULL;
       int h = kept;
       kept += 3;
-      setNumber(h, value);
+      cell[h] = NUMBER;
+      cell[h + 1] = (int) (value >>> 32);
+      cell[h + 2] = (int) value;
       return h;
     }
 
@@ -3312,7 +3310,9 @@ public final class PolicyHouse {
     static final int INPUT = 0;
     static final int DATA = 1;
     static final int CHANGED = 2;
-    static final int RULES = 3;
+    static final int PAIRS = 3;
+    static final int MOST = 12;
+    static final int RULES = PAIRS + 2 * MOST;
     final Heap heap;
     final Names names;
     Bundle bundle = null;
@@ -3418,22 +3418,42 @@ public final class PolicyHouse {
 
     /** Replaces in this scope: kind 0 in INPUT, 1 in DATA, 2 a rule's document. */
     boolean replace(int kind, int what, int value) {
-      int row = kind == 0 ? INPUT : DATA;
-      if (kind > 0) heap.cell[now + CHANGED] = 1;
       if (kind == 2) {
         heap.cell[now + RULES + what] = -value;
         return true;
       }
       int n = names.pathOf(what, path);
-      int h = changed(heap.cell[now + row], 0, n, value);
+      int was = kind == 0 ? heap.cell[now + INPUT] : replaced(path[0]);
+      if (was == 0 && kind == 1) was = heap.stepTo(heap.cell[now + DATA], path[0]);
+      int h = changed(was, kind, n, value);
       if (h == Heap.BIG) return false;
-      heap.cell[now + row] = h;
-      int heavy = kind == 0 ? h : heap.stepTo(h, path[0]);
-      boolean great = heavy == 0 || heap.tooGreat(heavy);
-      take(great ? Heap.HEAVY : heap.weight(heavy));
+      if (kind == 0) heap.cell[now + INPUT] = h;
+      else keep(path[0], h);
+      boolean great = heap.tooGreat(h);
+      take(great ? Heap.HEAVY : heap.weight(h));
       if (kind == 1 || !great) return true;
       note(2);
       return false;
+    }
+
+    /** What DATA has by a key as it is replaced in this scope, or 0. */
+    int replaced(int key) {
+      int at = now + PAIRS;
+      for (int i = 0; i < heap.cell[now + CHANGED]; i++) {
+        if (heap.equal(heap.cell[at + 2 * i], key)) return heap.cell[at + 2 * i + 1];
+      }
+      return 0;
+    }
+
+    /** The names under which DATA is changed stand in the scope: DATA itself is not made anew. */
+    void keep(int name, int value) {
+      int n = heap.cell[now + CHANGED];
+      int i = 0;
+      while (i < n && heap.cell[now + PAIRS + 2 * i] != name) i++;
+      if (i >= MOST) return;
+      heap.cell[now + PAIRS + 2 * i] = name;
+      heap.cell[now + PAIRS + 2 * i + 1] = value;
+      heap.cell[now + CHANGED] = Math.max(n, i + 1);
     }
 
     private int changed(int h, int i, int n, int value) {
@@ -3499,14 +3519,17 @@ public final class PolicyHouse {
       return value != 0;
     }
 
-    /** What an object has by a key; the value 0 is none. */
-    int below(int value, int key) {
-      return heap.kind(value) == Heap.OBJECT ? heap.stepTo(value, key) : 0;
+    /** What DATA has by a key behind a node at which it has a value, which may be 0 for none. */
+    int below(int node, int value, int key) {
+      int below = node == 0 ? replaced(key) : 0;
+      if (below != 0 || heap.kind(value) != Heap.OBJECT) return below;
+      return heap.stepTo(value, key);
     }
 
     boolean stepFrom(int node, int value, int key) {
       if (node >= 0) {
-        int below = heap.kind(value) == Heap.OBJECT ? heap.stepTo(value, key) : 0;
+        int below = node == 0 ? replaced(key) : 0;
+        if (below == 0 && heap.kind(value) == Heap.OBJECT) below = heap.stepTo(value, key);
         return enter(names.findValue(node, key), below);
       }
       outNode = -1;
@@ -3524,16 +3547,27 @@ public final class PolicyHouse {
       return found;
     }
 
+    /** Pushes the keys of what DATA has at a node, but those of rules and packages; or pairs. */
+    void pushData(int node, int value, boolean pairs) {
+      boolean object = heap.kind(value) == Heap.OBJECT;
+      int own = object ? heap.size(value) : 0;
+      int all = node == 0 ? own + heap.cell[now + CHANGED] : own;
+      for (int i = 0; i < all; i++) {
+        int at = now + PAIRS + 2 * (i - own);
+        int key = i < own ? heap.label(value, i) : heap.cell[at];
+        if (isNamed(names.findValue(node, key))) continue;
+        heap.push(key);
+        if (pairs) heap.push(i < own ? heap.item(value, i) : heap.cell[at + 1]);
+      }
+    }
+
     /** The keys of the object that THE TREE has at a node. */
     int keysOf(int node, int value) {
       int base = heap.used;
-      boolean object = value != 0 && heap.kind(value) == Heap.OBJECT;
-      for (int i = 0; object && i < heap.size(value); i++) {
-        int key = heap.label(value, i);
-        if (!isNamed(names.findValue(node, key))) heap.push(key);
-      }
+      pushData(node, value, false);
       for (int c = names.child[node]; c != 0; c = names.sibling[c]) {
-        if (isNamed(c) && enter(c, below(value, names.name[c]))) heap.push(names.name[c]);
+        int key = names.name[c];
+        if (isNamed(c) && enter(c, below(node, value, key))) heap.push(key);
       }
       return heap.made(Heap.SET, base, true);
     }
@@ -3541,21 +3575,16 @@ public final class PolicyHouse {
     /** The object that THE TREE has at a node, however great. */
     private int treeValue(int node, int value) {
       int base = heap.used;
-      boolean object = value != 0 && heap.kind(value) == Heap.OBJECT;
-      for (int i = 0; object && i < heap.size(value); i++) {
-        int key = heap.label(value, i);
-        if (isNamed(names.findValue(node, key))) continue;
-        heap.push(key);
-        heap.push(heap.item(value, i));
-      }
+      pushData(node, value, true);
       for (int c = names.child[node]; c != 0; c = names.sibling[c]) {
-        if (!isNamed(c) || !enter(c, below(value, names.name[c]))) continue;
+        int key = names.name[c];
+        if (!isNamed(c) || !enter(c, below(node, value, key))) continue;
         int v = outNode >= 0 ? treeValue(outNode, outValue) : outValue;
         if (v == Heap.BIG) {
           heap.used = base;
           return v;
         }
-        heap.push(names.name[c]);
+        heap.push(key);
         heap.push(v);
       }
       return heap.made(Heap.OBJECT, base, true);
@@ -3587,13 +3616,13 @@ public final class PolicyHouse {
     static final int H = 11;
     static final int I = 12;
     static final int WIDTH = 13;
-    static final int CHOICES = 6000;
+    static final int CHOICES = 4500;
     static final int STEPS = 1000000000;
 
     final Heap heap;
     final Scopes scopes;
     final Builtins builtins;
-    final int[] regs = new int[66000];
+    final int[] regs = new int[20000];
     final int[] cp = new int[CHOICES * WIDTH];
     int choices = 0;
     int pc = 0;
