@@ -646,11 +646,13 @@ public final class PolicyHouse {
       return true;
     }
 
-    int newText(String text) {
-      int n = text.length();
+    /** The string of the signs of a text from a place up to a blank. */
+    int newWord(String text, int from) {
+      int n = 0;
+      while (from + n < text.length() && text.charAt(from + n) != ' ') n++;
       int h = room(n + 1);
       cell[h] = STRING | n << 4;
-      for (int i = 0; i < n; i++) cell[h + 1 + i] = text.charAt(i);
+      for (int i = 0; i < n; i++) cell[h + 1 + i] = text.charAt(from + i);
       return h;
     }
   }
@@ -4527,12 +4529,12 @@ public final class PolicyHouse {
       if (id == 43) return heap.truth(kind == 0);
       if (id == 44) return heap.truth(kind == 1 || kind == 2);
       if (id < 50) return heap.truth(kind == id - 45 + Heap.NUMBER);
-      if (kind == 0) return heap.newText("null");
-      if (kind < Heap.NUMBER) return heap.newText("boolean");
-      if (kind == Heap.NUMBER) return heap.newText("number");
-      if (kind == Heap.STRING) return heap.newText("string");
-      if (kind == Heap.ARRAY) return heap.newText("array");
-      return heap.newText(kind == Heap.OBJECT ? "object" : "set");
+      if (kind == 0) return heap.newWord("null", 0);
+      if (kind < Heap.NUMBER) return heap.newWord("boolean", 0);
+      if (kind == Heap.NUMBER) return heap.newWord("number", 0);
+      if (kind == Heap.STRING) return heap.newWord("string", 0);
+      if (kind == Heap.ARRAY) return heap.newWord("array", 0);
+      return heap.newWord(kind == Heap.OBJECT ? "object" : "set", 0);
     }
 
     int json(int h) {
@@ -4554,15 +4556,16 @@ public final class PolicyHouse {
         heap.push(heap.newNumber(all % 3600 / 60 * Heap.ONE));
         heap.push(heap.newNumber(all % 60 * Heap.ONE));
       } else {
-        return heap.newText(weekday((int) (days % 7)));
+        return heap.newWord(WEEK, weekday((int) (days % 7)));
       }
       return heap.made(Heap.ARRAY, base, false);
     }
 
-    static String weekday(int d) {
+    /** Where the name of a day stands in WEEK. */
+    static int weekday(int d) {
       int at = 0;
       for (int i = 0; i < d; i++) at = Names.stopOf(WEEK, at) + 1;
-      return WEEK.substring(at, Names.stopOf(WEEK, at));
+      return at;
     }
 
     static boolean isLeap(long year) {
