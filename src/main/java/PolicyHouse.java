@@ -2915,18 +2915,21 @@ public final class PolicyHouse {
       if (size < CODE - 1) size++;
     }
 
-    void put(int op, int x) {
+    void putTwo(int op, int x) {
       put(op);
       put(x);
     }
 
-    void put(int op, int x, int y) {
-      put(op, x);
+    void putThree(int op, int x, int y) {
+      put(op);
+      put(x);
       put(y);
     }
 
-    void put(int op, int x, int y, int z) {
-      put(op, x, y);
+    void putFour(int op, int x, int y, int z) {
+      put(op);
+      put(x);
+      put(y);
       put(z);
     }
 
@@ -2982,7 +2985,7 @@ public final class PolicyHouse {
       known = around(t.res[node]);
       if ((sort & 8) != 0) {
         b.rule[owner * Bundle.RULE + Bundle.FIXED] = size;
-        put(FIXED, expression(t.first[node]));
+        putTwo(FIXED, expression(t.first[node]));
         return;
       }
       if (first) put(ENTER);
@@ -2991,9 +2994,9 @@ public final class PolicyHouse {
       int head = t.first[node];
       if (t.a[node] == 2) {
         int key = expression(head);
-        put(GIVEPAIR, key, expression(t.next[head]));
+        putThree(GIVEPAIR, key, expression(t.next[head]));
       } else {
-        put(GIVE, t.a[node] == 0 ? -Heap.TRUE : expression(head));
+        putTwo(GIVE, t.a[node] == 0 ? -Heap.TRUE : expression(head));
       }
     }
 
@@ -3009,7 +3012,7 @@ public final class PolicyHouse {
       for (int v = 0; v < checker.count; v++) {
         if (checker.scopeOf[v] == t.res[t.root]) own++;
       }
-      put(RESULT, own);
+      putTwo(RESULT, own);
       for (int v = 0; v < checker.count; v++) {
         if (checker.scopeOf[v] == t.res[t.root]) put(FIRST + v);
       }
@@ -3021,7 +3024,7 @@ public final class PolicyHouse {
     }
 
     private void literal(int n) {
-      put(TRY, owner);
+      putTwo(TRY, owner);
       int was = t.b[n] == 0 ? 0 : with(n);
       int e = t.first[n];
       switch (t.kind[n]) {
@@ -3041,10 +3044,10 @@ public final class PolicyHouse {
         }
         case Tree.NOT: {
           int flag = registers(1);
-          put(NOT, flag, 0);
+          putThree(NOT, flag, 0);
           int resume = size - 1;
           int value = expression(e);
-          put(NOTHIT, value, flag);
+          putThree(NOTHIT, value, flag);
           code[resume] = size;
           break;
         }
@@ -3052,9 +3055,9 @@ public final class PolicyHouse {
           every(n);
           break;
         default:
-          put(TEST, expression(e));
+          putTwo(TEST, expression(e));
       }
-      if (was != 0) put(WITHEND, was);
+      if (was != 0) putTwo(WITHEND, was);
     }
 
     /** The scope of a literal: the register in which the one around it is kept. */
@@ -3067,11 +3070,11 @@ public final class PolicyHouse {
         targets++;
       }
       int was = registers(1);
-      put(WITH, was, targets);
+      putThree(WITH, was, targets);
       int i = base;
       for (int w = t.b[n]; w != 0; w = t.next[w]) {
         int r = t.a[w] == 1 ? b.ruleAt(t.ref[w]) : -1;
-        put(r >= 0 ? 2 : t.a[w], r >= 0 ? r : t.ref[w], ops[i]);
+        putThree(r >= 0 ? 2 : t.a[w], r >= 0 ? r : t.ref[w], ops[i]);
         i++;
       }
       used = base;
@@ -3094,7 +3097,7 @@ public final class PolicyHouse {
       int value = key == 0 ? t.first[n] : t.next[key];
       int row = expression(t.next[value]);
       int r = registers(2);
-      put(SOMEIN, row, key == 0 ? -1 : r, r + 1);
+      putFour(SOMEIN, row, key == 0 ? -1 : r, r + 1);
       if (key != 0) match(key, r);
       match(value, r + 1);
     }
@@ -3104,14 +3107,14 @@ public final class PolicyHouse {
       int last = t.a[n] == 2 ? t.next[name] : name;
       int row = expression(t.next[last]);
       int flag = registers(1);
-      put(EVERY, row, t.a[n] == 2 ? FIRST + t.ref[name] : -1, FIRST + t.ref[last]);
-      put(flag, 0);
+      putFour(EVERY, row, t.a[n] == 2 ? FIRST + t.ref[name] : -1, FIRST + t.ref[last]);
+      putTwo(flag, 0);
       int resume = size - 1;
       int was = known;
       known |= 1 << t.ref[name] | 1 << t.ref[last];
       literals(bodyOf(n));
       known = was;
-      put(EVERYHIT, flag);
+      putTwo(EVERYHIT, flag);
       code[resume] = size;
     }
 
@@ -3120,13 +3123,13 @@ public final class PolicyHouse {
       if (kind == Tree.REF && t.first[n] == 0 && t.res[n] == Checker.BLANK) return;
       if (kind == Tree.REF && t.first[n] == 0 && t.res[n] == Checker.VAR) {
         boolean is = (known >>> t.ref[n] & 1) != 0;
-        put(is ? EQUAL : MOVE, FIRST + t.ref[n], value);
+        putThree(is ? EQUAL : MOVE, FIRST + t.ref[n], value);
         known |= 1 << t.ref[n];
       } else if (kind == Tree.ARRAY) {
         int parts = 0;
         for (int i = t.first[n]; i != 0; i = t.next[i]) parts++;
         int r = registers(parts);
-        put(SPLIT, value, parts, r);
+        putFour(SPLIT, value, parts, r);
         for (int i = t.first[n]; i != 0; i = t.next[i]) {
           match(i, r);
           r++;
@@ -3134,7 +3137,7 @@ public final class PolicyHouse {
       } else if (kind == Tree.OBJECT) {
         matchObject(n, value);
       } else {
-        put(EQUAL, expression(n), value);
+        putThree(EQUAL, expression(n), value);
       }
     }
 
@@ -3142,16 +3145,16 @@ public final class PolicyHouse {
       int keys = 0;
       for (int i = t.first[n]; i != 0; i = t.next[t.next[i]]) keys++;
       int r = registers(2 * keys);
-      put(ISOBJECT, value);
+      putTwo(ISOBJECT, value);
       int k = 0;
       for (int i = t.first[n]; i != 0; i = t.next[t.next[i]]) {
         int key = expression(i);
-        put(KEY, value, key, r + keys + k);
+        putFour(KEY, value, key, r + keys + k);
         put(r + k);
         match(t.next[i], r + keys + k);
         k++;
       }
-      put(KEYS, value, keys, r);
+      putFour(KEYS, value, keys, r);
     }
 
     /** Writes an expression: the register of its value, or below 0 a constant. */
@@ -3188,7 +3191,7 @@ public final class PolicyHouse {
         keep(value);
       }
       int to = registers(1);
-      put(op, what, to, used - base);
+      putFour(op, what, to, used - base);
       for (int i = base; i < used; i++) put(ops[i]);
       used = base;
       return to;
@@ -3202,7 +3205,7 @@ public final class PolicyHouse {
           keep(value);
         } else if (used >= base + 2) {
           int to = registers(1);
-          put(SIGN, t.a[i], to, ops[used - 2]);
+          putFour(SIGN, t.a[i], to, ops[used - 2]);
           put(ops[used - 1]);
           used--;
           ops[used - 1] = to;
@@ -3221,13 +3224,13 @@ public final class PolicyHouse {
       boolean input = res == Checker.INPUT || alias && t.a[t.ref[n]] == 0;
       int node = alias ? t.ref[t.ref[n]] : 0;
       if (res == Checker.RULE) node = b.of(t.ref[n], Bundle.NODE);
-      if (res == Checker.VAR) put(REFVAR, r, FIRST + t.ref[n]);
-      else put(input ? REFINPUT : REFDATA, r, node);
+      if (res == Checker.VAR) putThree(REFVAR, r, FIRST + t.ref[n]);
+      else putThree(input ? REFINPUT : REFDATA, r, node);
       for (int i = t.first[n]; i != 0; i = t.next[i]) {
-        if (t.kind[i] == Tree.DOT) put(STEP, r, -t.a[i], r);
+        if (t.kind[i] == Tree.DOT) putFour(STEP, r, -t.a[i], r);
         else r = step(t.first[i], r);
       }
-      put(VALUE, r);
+      putTwo(VALUE, r);
       return r;
     }
 
@@ -3235,24 +3238,24 @@ public final class PolicyHouse {
       boolean name = t.kind[e] == Tree.REF && t.first[e] == 0;
       if (name && t.res[e] == Checker.BLANK) {
         int to = registers(2);
-        put(EACH, r, to, -1);
+        putFour(EACH, r, to, -1);
         return to;
       }
       if (name && t.res[e] == Checker.VAR && (known >>> t.ref[e] & 1) == 0) {
         known |= 1 << t.ref[e];
         int to = registers(2);
-        put(EACH, r, to, FIRST + t.ref[e]);
+        putFour(EACH, r, to, FIRST + t.ref[e]);
         return to;
       }
       int key = expression(e);
       int to = registers(2);
-      put(STEP, r, key, to);
+      putFour(STEP, r, key, to);
       return to;
     }
 
     private int comprehension(int n) {
       int to = registers(1);
-      put(GATHER, t.kind[n] - Tree.ARRAYS + Heap.ARRAY, to, 0);
+      putFour(GATHER, t.kind[n] - Tree.ARRAYS + Heap.ARRAY, to, 0);
       int resume = size - 1;
       int was = known;
       int body = bodyOf(n);
@@ -3262,7 +3265,7 @@ public final class PolicyHouse {
       int x = expression(item);
       boolean pair = t.kind[n] == Tree.OBJECTS;
       int y = pair ? expression(t.next[item]) : 0;
-      put(ADD, pair ? 2 : 1, x, y);
+      putFour(ADD, pair ? 2 : 1, x, y);
       known = was;
       code[resume] = size;
       return to;
@@ -3556,10 +3559,11 @@ public final class PolicyHouse {
       int all = node == 0 ? own + heap.cell[now + CHANGED] : own;
       for (int i = 0; i < all; i++) {
         int at = now + PAIRS + 2 * (i - own);
-        int key = i < own ? heap.label(value, i) : heap.cell[at];
+        if (i < own) at = value + 2 + 2 * i;
+        int key = heap.cell[at];
         if (isNamed(names.findValue(node, key))) continue;
         heap.push(key);
-        if (pairs) heap.push(i < own ? heap.item(value, i) : heap.cell[at + 1]);
+        if (pairs) heap.push(heap.cell[at + 1]);
       }
     }
 
@@ -4785,7 +4789,7 @@ public final class PolicyHouse {
       for (int k = 0; k < size; k++) {
         if (k == at && array && !removes) heap.push(v);
         if (k == at && !inserts) continue;
-        if (!array) heap.push(heap.label(h, k));
+        if (!array) heap.push(heap.cell[h + 2 + 2 * k]);
         heap.push(heap.item(h, k));
       }
       if (inserts && at >= size) heap.push(v);
@@ -5255,9 +5259,8 @@ public final class PolicyHouse {
       for (int n = 0; n < Heap.HEAVY; n++) {
         int from = pos;
         boolean digits = true;
-        while (isIdentifier(byteAt(pos))) {
+        for (; isIdentifier(byteAt(pos)); pos++) {
           digits = digits && Texts.isDigit(heap.cell[pos]);
-          pos++;
         }
         if (pos == from) return false;
         if (strict && digits && pos > from + 1 && heap.cell[from] == '0') return false;
@@ -5540,7 +5543,7 @@ public final class PolicyHouse {
       boolean not = byteAt(pos) == '^';
       if (not) pos++;
       int items = 0;
-      while (!bad && pos < end && byteAt(pos) != ']') {
+      for (int n = 0; n < Heap.HEAVY && !bad && pos < end && byteAt(pos) != ']'; n++) {
         items++;
         boolean named = byteAt(pos) == '\\' && !isSpecial(byteAt(pos + 1))
             && byteAt(pos + 1) != '-';
@@ -5683,7 +5686,7 @@ public final class PolicyHouse {
       if (heap.kind(row) != 0 && heap.kind(row) != Heap.ARRAY) return 0;
       startPattern(s);
       delimiters(row);
-      while (!bad && pos < end) {
+      for (int n = 0; n < Heap.HEAVY && !bad && pos < end; n++) {
         if (byteAt(pos) == '{') globChoice();
         else globItem();
       }
@@ -5730,7 +5733,7 @@ public final class PolicyHouse {
       boolean not = byteAt(pos) == '!';
       if (not) pos++;
       int from = pos;
-      while (!bad && pos < end && byteAt(pos) != ']') {
+      for (int n = 0; n < Heap.HEAVY && !bad && pos < end && byteAt(pos) != ']'; n++) {
         int a = byteAt(pos);
         int b = a;
         boolean range = byteAt(pos + 1) == '-' && byteAt(pos + 2) >= 0 && byteAt(pos + 2) != ']';
@@ -5750,7 +5753,7 @@ public final class PolicyHouse {
       int start = length;
       pos++;
       emit(SPLIT, 1);
-      while (!bad && pos < end && byteAt(pos) != '}') {
+      for (int n = 0; n < Heap.HEAVY && !bad && pos < end && byteAt(pos) != '}'; n++) {
         int c = byteAt(pos);
         if (c == '{') bad = true;
         if (c == ',') {
