@@ -3945,7 +3945,8 @@ public final class PolicyHouse {
           pc += 4 + c[p + 3];
           break;
         case Coder.SIGN:
-          set(c[p + 2], sign(c[p + 1], val(3), val(4)));
+          scopes.take(heap.weight(val(3)) + heap.weight(val(4)));
+          if (!scopes.limit) set(c[p + 2], scopes.weigh(builtins.sign(c[p + 1], val(3), val(4))));
           pc += 5;
           break;
         case Coder.FUNCTION:
@@ -3994,13 +3995,6 @@ public final class PolicyHouse {
       int base = heap.used;
       for (int i = 0; i < c[p + 3]; i++) heap.push(val(4 + i));
       return scopes.weigh(heap.made(c[p + 1], base, false));
-    }
-
-    int sign(int sign, int x, int y) {
-      scopes.take(heap.weight(x));
-      scopes.take(heap.weight(y));
-      if (scopes.limit) return 0;
-      return scopes.weigh(builtins.sign(sign, x, y));
     }
 
     /** The operands are there, and what they take is taken. */
@@ -4328,8 +4322,9 @@ public final class PolicyHouse {
       return heap.made(Heap.SET, base, false);
     }
 
+    /** Pushes the elements of an array or set. */
     void pushAll(int row) {
-      for (int i = 0; i < heap.size(row); i++) heap.push(heap.item(row, i));
+      for (int i = 0; i < heap.size(row); i++) heap.push(heap.cell[row + 2 + i]);
     }
 
     boolean takesAll(int id) {
