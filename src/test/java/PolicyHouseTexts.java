@@ -149,7 +149,6 @@ public final class PolicyHouseTexts {
     json("\"\\\"\\\\\\/\\b\\f\\n\\r\\t\\u001f\\u00fF\"", 11, "\"\\\"\\\\/\\b\\f\\n\\r\\t\\u001f\u00ff\"");
     json("{\"b\":1,\"a\":[],\"b\":{}}", 7, "{\"a\":[],\"b\":{}}");
     json("{\"\":{}}", 3, "{\"\":{}}");
-    json("\u007f1".substring(1), 1, "1");
     json("\"\u007f\u0080\"", 3, "\"\u007f\u0080\"");
     json(times("[", 12) + times("]", 12), 12, times("[", 12) + times("]", 12));
     wrongJson(times("[", 13) + times("]", 13), 12);
@@ -254,7 +253,7 @@ public final class PolicyHouseTexts {
     rule("a := 1");
     rule("default a := -1");
     rule("a if true");
-    rule("a := {1,2}[0]".substring(0, 10));
+    rule("a := {1,2}");
     rule("f(x, [y, _], {\"k\": z}, \"c\") := x if { y == z }");
     rule("s contains x if { some x in [1] }");
     rule("o[k] := v if some k, v in {}");
@@ -263,8 +262,8 @@ public final class PolicyHouseTexts {
     rule("a if every x in [1] { x == 1; x != 2; }");
     rule("a if { not input.x with input as 1 with data.y.z as 2 }");
     rule("a := set( \n )");
-    rule("a := data . x".replace(" .", "."));
-    rule("a if { x := input. y[ 0 ].z; x in [1] == true }".replace(" == true", ""));
+    rule("a := data. x");
+    rule("a if { x := input. y[ 0 ].z; x in [1] }");
     rule("a := [x | some x in input.y]");
     rule("a := {x: 1 | some x in input.y; x > 0 }");
     rule("a if { 1 + 2 * 3 - 4 / 5 % 6 == 7 }");
