@@ -356,16 +356,16 @@ public final class PolicyHouse {
     static final long MOST = 1000000000000000000L;
     static final int HEAVY = 4000;
     static final int DEEP = 20;
-    static final int SLOTS = 120000;
+    static final int SLOTS = 60000;
     static final int SLOT = 16500;
-    static final int RUN = 318000;
-    static final int SPILL = 960000;
-    static final int CELLS = 1030000;
+    static final int RUN = 258000;
+    static final int SPILL = 820000;
+    static final int CELLS = 886000;
     static final int LAX = 60000;
 
     final int[] cell = new int[CELLS];
-    final int[] acc = new int[100000];
-    final int[] spare = new int[100000];
+    final int[] acc = new int[90000];
+    final int[] spare = new int[90000];
     int used = 0;
     int kept = 16;
     int top = RUN;
@@ -2609,7 +2609,7 @@ public final class PolicyHouse {
     static final int GIVEPAIR = 31;
     static final int FIXED = 32;
     static final int RESULT = 33;
-    static final int CODE = 160000;
+    static final int CODE = 80000;
     static final int FIRST = 5;
 
     final Heap heap;
