@@ -7,6 +7,7 @@ public final class PolicyHouse {
   public static final int FULL = -10000;
 
   private static final int TAPE = 6000;
+  // No object is used for more calls: what is kept of texts for good has its bound by this.
   private static final int FEEDS = 512;
   private static final int MODULES = 4;
   private static final int QUERIES = 4;
@@ -36,7 +37,8 @@ public final class PolicyHouse {
   private int bytes = 0;
 
   public PolicyHouse() {
-    machine = new Machine(heap, scopes, new Builtins(heap, texts, names, new Strings(heap, texts, names)));
+    Strings strings = new Strings(heap, texts, names);
+    machine = new Machine(heap, scopes, new Builtins(heap, texts, names, strings));
     data = heap.copyTo(0, heap.made(Heap.OBJECT, 0, true));
     heap.reset(Heap.RUN);
     active = bundleOfDraft();
@@ -3455,6 +3457,7 @@ public final class PolicyHouse {
       int n = heap.cell[now + CHANGED];
       int i = 0;
       while (i < n && heap.cell[now + PAIRS + 2 * i] != name) i++;
+      // Three scopes with four targets each are all that there can be.
       if (i >= MOST) return;
       heap.cell[now + PAIRS + 2 * i] = name;
       heap.cell[now + PAIRS + 2 * i + 1] = value;
@@ -4202,7 +4205,7 @@ public final class PolicyHouse {
 
   /** Signs, and built-ins of numbers, rows and all values; 0 is no value, BIG is too great. */
   static final class Builtins {
-    static final long BAD = Long.MIN_VALUE;
+    static final long BAD = -9000000000000000000L;
     static final int STEPS = 60;
     static final String WEEK = "Thursday Friday Saturday Sunday Monday Tuesday Wednesday ";
     final Heap heap;
