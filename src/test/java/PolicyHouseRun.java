@@ -184,6 +184,46 @@ public final class PolicyHouseRun {
     Desk.same("nothing by LIMIT", d.h.covered(-1) + d.h.document(0) + d.h.result(0, 0), -3);
   }
 
+  private static String times(String s, int n) {
+    StringBuilder b = new StringBuilder();
+    for (int i = 0; i < n; i++) b.append(s);
+    return b.toString();
+  }
+
+  private static void great(String q, String due, int fuel, String... mods) {
+    d = new Desk();
+    if (mods.length > 0) Desk.same("modules", d.mods(mods), mods[0].contains("f(") ? "2" : "1");
+    String short_ = q.length() > 60 ? q.substring(0, 60) : q;
+    Desk.same(short_, d.ask(q), due);
+    Desk.same("fuel of " + short_, d.h.about(2), fuel);
+  }
+
+  /** What is TOO GREAT: constants, defaults, results, what with makes. */
+  private static void greats() {
+    String big = "\"" + times("x", 4000) + "\"";
+    String fit = "\"" + times("x", 3999) + "\"";
+    great("x := " + big, "-102", 1);
+    great("x := " + fit, "-102", 1 + 4000);
+    great("count(" + fit + ") == 3999", "[]", 1 + 4000 + 1 + 2 + 1 + 1);
+    great("not " + big, "-102", 2);
+    great("x := [1 / 0, " + big + "]", "", 1 + 2);
+    great("x := [" + big + ", 1 / 0]", "-102", 1);
+    great("x := data.p.a", "-102", 1, "package p\ndefault a := " + big);
+    great("x := data.p.a", "", 1, "package p\ndefault a := [{1: 2, 1: 3}, " + big + "]");
+    great("x := data.p.a", "-102", 1, "package p\ndefault a := [" + fit + "]");
+    great("x := data.p.f(1)", "-102", 1 + 1 + 4 + 2, "package p\na := 1\nf(" + big + ") := 1\nf(x) := 2 if { x == 1 }");
+    d = new Desk();
+    d.input("{\"a\":\"" + times("x", 2000) + "\"}");
+    same("x := 1 with input.b as input.a with input.c as 1", "-102", 1 + 100 + 4000);
+    same("x := count(input) with input.b as 1", "[2]", 1 + 100 + 2007 + 2007 + 1 + 2);
+    same("x := count(data.z) with data.z.b as input.a with data.z.c as input.a", "[2]", 1 + 100 + 2004 + 4000 + 4007 + 1 + 2);
+    same("x := data.z with data.z.b as input.a with data.z.c as input.a", "-102", 1 + 100 + 2004 + 4000 + 4000);
+    same("x := count(data) with data.z.b as input.a with data.z.c as input.a", "-102", 1 + 100 + 2004 + 4000 + 4000);
+    same("true with data.z.b as input.a with data.z.c as input.a", "[]", 1 + 100 + 2004 + 4000 + 1);
+    same("x := json.patch({}, [{\"op\": \"add\", \"path\": \"/a\", \"value\": 1}, {\"op\": \"add\", \"path\": \"/b\", \"value\": 2}])",
+        "[{\"a\":1,\"b\":2}]", 1 + 1 + 2 * 23 + 47 + 1 + 47 + 4 + 7 + 7 + 8);
+  }
+
   /** Fuel may be taken up to 40000: here 13 * 3076 + more. */
   private static void limit() {
     d = new Desk();
@@ -279,6 +319,7 @@ public final class PolicyHouseRun {
     tree();
     nested();
     noted();
+    greats();
     limit();
     forms();
     kept();
