@@ -151,6 +151,7 @@ public final class PolicyHouseBuiltins {
     is("split(\"\", \"\")", "[]");
     is("split(\",\", \",\")", "[\"\",\"\"]");
     is("strings.reverse(\"abc\")", "\"cba\"");
+    is("substring(\"hello\", 0, 2)", "\"he\"");
     is("substring(\"hello\", 1, 3)", "\"ell\"");
     is("substring(\"hello\", 3, 9)", "\"lo\"");
     is("substring(\"hello\", 5, 1)", "\"\"");
@@ -185,6 +186,7 @@ public final class PolicyHouseBuiltins {
     is("to_number(null)", "0");
     is("to_number([])", "none");
     is("to_number(5)", "5");
+    is("to_number(-2.5)", "-2.5");
     is("sprintf(\"%d|%x|%s|%v|%v|%%\", [-15.5, 255, \"s\", \"t\", [\"q\"]])", "\"-15|ff|s|t|[\\\"q\\\"]|%\"");
     is("sprintf(\"%d\", [0.5])", "\"0\"");
     is("sprintf(\"%d\", [\"a\"])", "none");
@@ -283,6 +285,7 @@ public final class PolicyHouseBuiltins {
     is("hex.decode(\"610aFF\")", "\"a\\n\u00ff\"");
     is("hex.decode(\"6\")", "none");
     is("hex.decode(\"6g\")", "none");
+    is("urlquery.encode(\"AzZ9@[`{/:\")", "\"AzZ9%40%5B%60%7B%2F%3A\"");
     is("urlquery.encode(\"aZ0-_.~ /\\u00ff\")", "\"aZ0-_.~+%2F%FF\"");
     is("urlquery.decode(\"a+b%2f%2F/\")", "\"a b///\"");
     is("urlquery.decode(\"%2\")", "none");

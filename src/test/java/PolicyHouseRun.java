@@ -154,7 +154,8 @@ public final class PolicyHouseRun {
 
   private static void noted() {
     house("{\"d\":1}", null, "package p\na := 1\na := 2\nb := 1\nb := 1.0\no[1] := 1\no[1] := 2\nf(x) := x\nf(x) := 2\n"
-        + "default g := {1: 2, 1: 3}\nh := 1 if { false } else := x if { some x in [1, 2] } else := 3\nc := 1 if { data.d == 1 } else := 2\nc := 2 if { data.d == 2 } else := 1\n");
+        + "default g := {1: 2, 1: 3}\nh := 1 if { false } else := x if { some x in [1, 2] } else := 3\nc := 1 if { data.d == 1 } else := 2\nc := 2 if { data.d == 2 } else := 1\n"
+        + "k(1) := \"a\" if { false } else := \"b\"\nk(3) := \"c\"\n");
     same("x := data.p.b", "[1]");
     same("x := data.p.a", "-101");
     Desk.same("about", d.h.about(0) + " " + d.h.about(1) + " " + d.h.about(3) + " " + d.h.about(4) + " " + d.h.about(-1), "1 0 0 -1 -1");
@@ -167,6 +168,9 @@ public final class PolicyHouseRun {
     Desk.same("about", d.h.about(1), 3);
     same("x := data.p.g", "");
     Desk.same("about", d.h.about(0) + " " + d.h.about(1), "0 -1");
+    same("x := data.p.k(1)", "[\"b\"]");
+    same("x := data.p.k(2)", "");
+    same("x := data.p.k(3)", "[\"c\"]");
     same("x := data.p.h", "-101");
     same("x := data.p.c", "[1]");
     same("x := data.p", "-101");

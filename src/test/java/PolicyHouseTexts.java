@@ -327,6 +327,10 @@ public final class PolicyHouseTexts {
     wrongRule("default a := - 1", 13);
     wrongRule("default a(x) := 1", 9);
     wrongRule("default _ := 1", 8);
+    rule("AZaz_09 := [A1, Z, a, z] if { A1 := 1; Z := 2; a := 3; z := 4 }");
+    wrongRule("@ := 1", 0);
+    wrongRule("[ := 1", 0);
+    wrongRule("9a := 1", 0);
     rule("default a := {[(1)]: {\"b\", set( )}, \"c\": {}, -2: `d`}");
     wrongRule("a := [[[[[[[", 11);
     wrongRule("a := [[[[[[1]]]]] ", 18);
