@@ -42,6 +42,8 @@ public final class PolicyHouseBuiltins {
     is("1 / 0", "nothing");
     is("0.000001 / 2", "0.000001");
     is("1000000000000 / 0.5", "nothing");
+    is("1000000000000 / 1", "1000000000000");
+    is("1000000000000 / 0.999999", "nothing");
     is("1000000000000 / 999999999999.999999", "1");
     is("7 % 3", "1");
     is("-7 % 3", "-1");
@@ -405,12 +407,16 @@ public final class PolicyHouseBuiltins {
     is("replace(sprintf(\"%v\", [numbers.range(1, 500)]), \"1\", \"" + times("z", 100) + "\")", "great");
     is("sprintf(\"%v%v%v\", [numbers.range(1, 500), numbers.range(1, 500), numbers.range(1, 500)])", "great");
     is("sprintf(\"%v%v%v%q\", [numbers.range(1, 500), numbers.range(1, 500), numbers.range(1, 500)])", "none");
-    is("walk(numbers.range(1, 500))", "[", true);
+    is("count(walk(numbers.range(1, 500)))", "501");
+    is("count(walk([[numbers.range(1, 442)]]))", "445");
+    is("count(walk([[numbers.range(1, 443)]]))", "great");
     is("walk([numbers.range(1, 500), numbers.range(1, 500)])", "great");
     is("hex.encode(hex.encode(sprintf(\"%v\", [numbers.range(1, 500)])))", "great");
     is("{y | some y in numbers.range(1, 500)} - {1}", "{2,3,", true);
     used = 0;
     d = new Desk();
+    Desk.same("too many", d.ask("r := numbers.range(1, 500); a := array.concat(r, r); b := array.concat(a, a); x := count(array.concat(b, b))"), "-102");
+    Desk.same("not too many", d.ask("r := numbers.range(1, 499); a := count(array.concat(r, r)); a == 998").length() > 9, true);
     Desk.same("20 deep", d.ask("a := [[[[[1]]]]]; b := [[[[[a]]]]]; c := [[[[b]]]]; x := [1 | c == c]; count(x) == 1").length() > 0, true);
     Desk.same("21 deep", d.ask("a := [[[[[1]]]]]; b := [[[[[a]]]]]; c := [[[[[b]]]]]; x := [[[[c]]]]; y := [x]"), "-102");
   }

@@ -69,6 +69,9 @@ public final class PolicyHouseRun {
     same("s := {1, \"a\"}; x := s[_]", "[{1,\"a\"},1] [{1,\"a\"},\"a\"]", 1 + 4 + 1 + 2 + 6 + 7);
     same("s := {1, \"a\"}; x := s[1]", "[{1,\"a\"},1]", 1 + 4 + 1 + 6);
     same("s := [5]; x := s[1]", "", 1 + 2 + 1);
+    same("r := 1; s := {\"a\": [5]}; x := s.a[0]", "[1,{\"a\":[5]},5]");
+    same("x := [[y | y := z] | some z in [1, 2]]", "[[[1],[2]]]");
+    same("x := [w | some z in [1, 2]; w := {y | some y in [z, 3]}; every v in w { [u | u := v] != [4] }]", "[[{1,3},{2,3}]]");
     same("s := [5]; x := s[0.5]", "", 1 + 2 + 1);
     same("s := [5]; x := s[\"0\"]", "", 1 + 2 + 1);
     same("some x, y; data.o[x]; data.a[y] == data.o[x]", "[\"x\",0] [\"y\",1]", 1 + 1 + 2 + 2 * (1 + 3 + 9) + 2 * 4);
@@ -129,6 +132,20 @@ public final class PolicyHouseRun {
     same("x := data with data.n as 1 with data.new.b as 2", "[{\"n\":1,\"new\":{\"b\":2}}]", 1 + 100 + 1 + 4 + 12 + 13);
     same("x := data", "[{\"n\":{\"k\":1}}]", 1 + 8);
     same("x := data[_] with data.n.k as {3}", "[{\"k\":{3}}]", 1 + 2 + 100 + 5 + 1 + 6);
+  }
+
+  /** More rules than one word of bits has. */
+  private static void many() {
+    String m = "package m\n";
+    for (int i = 0; i < 70; i++) m += "r" + i + " := " + (i < 35 ? i + "" : "[r" + (i - 35) + "]") + "\n";
+    house("{}", null, m);
+    same("x := data.m.r69", "[[34]]");
+    same("x := data.m.r35", "[[0]]");
+    same("x := count(data.m)", "[70]");
+    same("x := data.m.r69 with data.m.r34 as 5", "[[5]]");
+    same("x := data.m.r40; y := data.m.r66 with data.m.r31 as 7", "[[5],[7]]");
+    Desk.same("documents", d.out(d.h.document(5)) + d.out(d.h.document(40)) + d.out(d.h.document(66)), "5[5]none");
+    Desk.same("depends", d.h.rule(69, 4) + " " + d.h.rule(34, 4), "1 0");
   }
 
   private static void nested() {
@@ -321,6 +338,7 @@ public final class PolicyHouseRun {
   public static void main(String[] args) {
     ways();
     tree();
+    many();
     nested();
     noted();
     greats();

@@ -347,6 +347,8 @@ public final class PolicyHouseTexts {
     wrongRule("a := x.y[0](1)", 11);
     wrongRule("a := x._(1)", 8);
     wrongRule("a := _(1)", 6);
+    rule("a := a.b.c.d.e.f(1)");
+    rule("a := a.b.c.d.e.f.g.h[1]");
     wrongRule("a := a.b.c.d.e.f.g(1)", 18);
     wrongRule("a := x.if", 7);
     wrongRule("a := 1.", 7);
