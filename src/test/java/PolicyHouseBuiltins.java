@@ -248,6 +248,9 @@ public final class PolicyHouseBuiltins {
     is("json.patch({\"a\": 1}, [{\"op\": \"remove\", \"path\": \"\"}])", "none");
     is("json.patch({\"a\": 1}, [{\"op\": \"remove\", \"path\": \"/a\"}])", "{}");
     is("json.patch({\"a\": 1}, [{\"op\": \"remove\", \"path\": \"/b\"}])", "none");
+    is("json.patch({\"a\": {}}, [{\"op\": \"remove\", \"path\": \"/a/b\"}])", "none");
+    is("json.patch({\"a\": [[1]]}, [{\"op\": \"replace\", \"path\": \"/a/0/1\", \"value\": 2}])", "none");
+    is("json.patch({\"a\": [[1]]}, [{\"op\": \"replace\", \"path\": \"/a/0/0\", \"value\": 2}])", "{\"a\":[[2]]}");
     is("json.patch({\"a/b\": 1, \"c~d\": 2}, [{\"op\": \"remove\", \"path\": \"/a~1b\"}, {\"op\": \"replace\", \"path\": \"/c~0d\", \"value\": 3}])", "{\"c~d\":3}");
     is("json.patch({\"a\": 1}, [{\"op\": \"test\", \"path\": \"/a~2\", \"value\": 1}])", "none");
     is("json.patch({\"a\": 1}, [{\"op\": \"move\", \"from\": \"/a\", \"path\": \"/b\"}])", "{\"b\":1}");
@@ -285,6 +288,7 @@ public final class PolicyHouseBuiltins {
     is("base64.decode(\"Z=8=\")", "none");
     is("hex.encode(\"a\\n\\u00ff\")", "\"610aff\"");
     is("hex.decode(\"610aFF\")", "\"a\\n\u00ff\"");
+    is("hex.decode(\"3039\")", "\"09\"");
     is("hex.decode(\"6\")", "none");
     is("hex.decode(\"6g\")", "none");
     is("urlquery.encode(\"AzZ9@[`{/:\")", "\"AzZ9%40%5B%60%7B%2F%3A\"");

@@ -138,6 +138,7 @@ public final class PolicyHouseFaults {
   private static void targets() {
     rules("a if { b with data.p.b.c as 1 }\nb := 1", 5, 14);
     rules("a if { b with data.p as 1 }\nb := 1", 5, 14);
+    rules("b := 1\na if { b with data.p.b.c as 1 }", 5, 21);
     rules("a if { b with data.p.f.x as 1 }\nb := 1\nf(x) := 1", 5, 14);
     right("a if { b with data.p.f as 1 }\nb := 1\nf(x) := 1", 3);
     right("a if { b with data.p.x.y as 1 with data.q as 1 }\nb := 1", 2);
@@ -201,6 +202,9 @@ public final class PolicyHouseFaults {
     rules("a := [input[y] | some y; true]", 8, 17);
     right("a if { some x; input.y with input as x; x = 1; input.z[x] with input as 1; true }", 1);
     rules("a if { some x; input.y[x] with input as x }", 8, 15);
+    rules("a if { some x; every y in input[x] { y == 1 } }", 8, 15);
+    rules("a if { some x; not input[x] }", 8, 15);
+    rules("a if { some x; input.y with input as input[x] }", 8, 15);
     rules("a if { [1] == [x | some x; x == input.y] }", 8, 27);
     rules("a := [y | some y in input] if { some x; x == 1 }", 8, 40);
     right("a if { y := x + 1; x := 1 }", 1);

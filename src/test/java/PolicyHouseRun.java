@@ -134,6 +134,19 @@ public final class PolicyHouseRun {
     same("x := data[_] with data.n.k as {3}", "[{\"k\":{3}}]", 1 + 2 + 100 + 5 + 1 + 6);
   }
 
+  /** Rules and functions with many variables, and calls within calls. */
+  private static void variables() {
+    house("{}", null, "package p\nf(a, [b, c], {\"k\": e}, g) := [a, b, c, e, g, h] if { h := a + b + c + e + g }\n"
+        + "v := [a, b, c, e, g, h] if { a := 1; b := a + 1; c := b * b; e := [x | some x in [a, b, c]; x > 1]; g := e[i]; some i; h := {i: g} }\n"
+        + "w(x) := (x * 2)\nu(x) := (w(w(x)) + w(x))\nt := [u(a) + w(b), c] if { some a, b in [5, 6]; c := [w(z) | some z in [a, b]] }\n");
+    same("x := data.p.f(1, [2, 3], {\"k\": 4}, 5)", "[[1,2,3,4,5,15]]");
+    same("x := data.p.f(1, [2], {\"k\": 4}, 5)", "");
+    same("x := data.p.f(1, [2, 3], {\"k\": 4, \"l\": 5}, 5)", "");
+    same("x := data.p.t", "-101");
+    same("x := data.p.v", "-101");
+    same("x := [data.p.u(1), data.p.u(data.p.u(2))]", "[[6,72]]");
+  }
+
   /** More rules than one word of bits has. */
   private static void many() {
     String m = "package m\n";
@@ -338,6 +351,7 @@ public final class PolicyHouseRun {
   public static void main(String[] args) {
     ways();
     tree();
+    variables();
     many();
     nested();
     noted();

@@ -405,6 +405,10 @@ public final class PolicyHouseTexts {
     wrongQuery("x := a .b", 7);
     wrongQuery("x := 00", 6);
     wrongQuery("x := - 1", 5);
+    tape("x := 1");
+    h.end(3);
+    same("a text that the tape's end cuts", h.prepare(), -3);
+
   }
 
   private static void draft() {
