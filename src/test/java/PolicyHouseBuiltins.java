@@ -361,7 +361,7 @@ public final class PolicyHouseBuiltins {
     String[] no = {"10.0.0.0", "10.0.0.0/33", "10.0.0/8", "10.0.0.256/8", "10.00.0.0/8", "10.0.0.0/08", "10.0.0.0/", "10.0.0.0/8 ", "a"};
     for (String s : no) is("net.cidr_contains(\"" + s + "\", \"10.0.0.0\")", "none");
     is("net.cidr_contains(\"10.0.0.0/8\", \"10.0.0\")", "none");
-    String[] right = {"0.0.0", "1.22.333", "1.2.3-a", "1.2.3-a.0.b-1", "1.2.3-0a", "1.2.3+01", "1.2.3-a+b.c", "1.2.3--", "99999999999999999999.0.0"};
+    String[] right = {"0.0.0", "1.22.333", "1.2.3-a", "1.2.3-a.0.b-1", "1.2.3-0a", "1.2.3+01", "1.2.3-a+b.c", "1.2.3--", "1.2.3-AZaz09", "99999999999999999999.0.0"};
     for (String s : right) is("semver.is_valid(\"" + s + "\")", "true");
     String[] bad = {"", "1.2", "1.2.3.4", "01.2.3", "1.2.3-", "1.2.3-01", "1.2.3-a..b", "1.2.3+", "1.2.3-a_b", "v1.2.3", "1.2.3 ", "1.2.3+a+b"};
     for (String s : bad) is("semver.is_valid(\"" + s + "\")", "false");
@@ -381,6 +381,9 @@ public final class PolicyHouseBuiltins {
   private static void times() {
     is("time.date(0)", "[1970,1,1]");
     is("time.date(951782400)", "[2000,2,29]");
+    is("time.date(946684800)", "[2000,1,1]");
+    is("time.date(946684799)", "[1999,12,31]");
+    is("time.date(978307199)", "[2000,12,31]");
     is("time.date(253402300799)", "[9999,12,31]");
     is("time.date(253402300800)", "none");
     is("time.date(-1)", "none");

@@ -153,6 +153,8 @@ public final class PolicyHouseFaults {
     rules("a := 1\na if data.p", 6, 0);
     rules("a := 1\nf(x) := data.p[x]", 6, 7);
     rules("f(x) := f(x)", 6, 0);
+    rules("b := 1\na if { data.p.a with input as 1 }", 6, 7);
+    rules("b := 1\na := [x | x := data.p.b with input as [y | y := data.p.a]]", 6, 7);
     rules("a := data[input.x]", 6, 0);
     rules("a := data[\"p\"].a.b.c", 6, 0);
     rules("a if { input.x with data.p.a as 1 with input as data.p.a }", 6, 0);

@@ -237,6 +237,13 @@ public final class PolicyHouseTexts {
     tape("[{\"op\":\"add\",\"path\":\"/b/d\",\"value\":1},{\"op\":\"test\",\"path\":\"/b\",\"value\":2}]");
     same("a patch that fails late", h.patch(), -10000);
     same("data stays", h.count(3), 10);
+    tape("{\"a\":" + times("[", 11) + times("]", 11) + "}");
+    same("data", h.data(), 14);
+    String inner = "[{\"op\":\"add\",\"path\":\"/a" + times("/0", 10) + "/-\",\"value\":";
+    tape(inner + times("[", 9) + times("]", 9) + "}]");
+    same("21 deep", h.patch(), -10000);
+    tape(inner + times("[", 8) + times("]", 8) + "}]");
+    same("20 deep", h.patch(), 22);
     tape("{\"a\":\"" + times("x", 1000) + "\"}");
     same("data", h.data(), 1004);
     String copies = "[{\"op\":\"copy\",\"from\":\"/a\",\"path\":\"/b\"},{\"op\":\"copy\",\"from\":\"/a\",\"path\":\"/c\"}";
@@ -297,6 +304,10 @@ public final class PolicyHouseTexts {
     wrongRule("a := 1 + 2", 7);
     wrongRule("a := ", 5);
     wrongRule("a = 1", 2);
+    wrongRule("a = \"b", 2);
+    wrongRule("a := 1 \"b", 7);
+    wrongRule("a := 1 `b", 7);
+    wrongRule("a := 1 1.", 7);
     wrongRule("a := 1 if", 9);
     wrongRule("a := 1 if {}", 11);
     rule("a if { true; }");
