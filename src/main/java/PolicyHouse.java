@@ -4810,6 +4810,7 @@ public final class PolicyHouse {
     static final int MATCH = 7;
     static final int DEAD = 8;
     static final int PROGRAM = 16400;
+    static final int SETS = 2100;
     static final int PARTS = 300;
     static final long MANY = 1000000000L;
     final Heap heap;
@@ -4825,7 +4826,7 @@ public final class PolicyHouse {
     final int[] there = new int[PROGRAM];
     final int[] stack = new int[PROGRAM];
     int length = 0;
-    final int[] sets = new int[8 * 2100];
+    final int[] sets = new int[8 * SETS];
     int count = 0;
     int pos = 0;
     int end = 0;
@@ -5398,11 +5399,10 @@ public final class PolicyHouse {
       length++;
     }
 
-    /** An empty set of bytes: its number. */
+    /** An empty set of bytes: its number. The last one serves all that a pattern has too many. */
     int newSet() {
-      if (count >= sets.length / 8) return 0;
-      int set = count;
-      count++;
+      int set = Math.min(count, SETS - 1);
+      count = set + 1;
       for (int i = 0; i < 8; i++) sets[set * 8 + i] = 0;
       return set;
     }
@@ -5467,9 +5467,16 @@ public final class PolicyHouse {
       for (int n = 0; n < Heap.HEAVY && !bad && pos < end; n++) {
         if (byteAt(pos) == '|' || byteAt(pos) == ')') break;
         int start = length;
+        int named = count;
         long one = atom(deep);
         if (bad) break;
-        parts = Math.min(parts + repeats(start, one), MANY);
+        long all = repeats(start, one);
+        parts = Math.min(parts + all, MANY);
+        // What has no part is empty: its code, however long it has become, must leave the room.
+        if (all == 0) {
+          length = start;
+          count = named;
+        }
       }
       return parts;
     }

@@ -329,6 +329,12 @@ public final class PolicyHouseBuiltins {
     is("regex.match(`(a{20}){15}b`, \"a\")", "none");
     is("regex.match(`((a{20}){20}){0}b`, \"b\")", "true");
     is("regex.match(`((((((a))))))`, \"a\")", "none");
+    is("regex.match(`(((((){20}){20}){20}){20}){20}a`, \"a\")", "true");
+    is("regex.match(`^((((){0,14}){10}){1}a){2}$`, \"aa\")", "true");
+    is("regex.match(`^((((){0,14}){10}){2}a){2}$`, \"aa\")", "none");
+    is("regex.match(`[ab](.\u00ff" + times(".", 2200) + "){0}`, \"c\")", "false");
+    is("regex.match(`[ab](\\d[x](" + times("\\w", 1200) + "){1}){0}`, \"xb\")", "true");
+    is("regex.match(`(" + times("(|a){20}", 40) + "){0}^(((((|))))){20}b$`, \"b\")", "true");
     String[] no = {"a**", "a+?", "a{2}{3}", "*", "(*a)", "a|*", "(", ")", "a)", "(a", "[", "[]", "[^]", "[a", "]", "}", "a{", "a{}", "a{,2}",
       "a{3,2}", "a{21}", "a{01}", "a{1", "a{1,", "a{1x}", "\\", "\\x", "\\n", "[a-]", "[-a]", "[b-a]", "[\\d-z]", "[a-\\d]", "[\\x]", "{1}", "[a-c-e]"};
     for (String s : no) is("regex.match(`" + s + "`, \"a\")", "none");
