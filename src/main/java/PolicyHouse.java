@@ -33,7 +33,7 @@ public final class PolicyHouse {
   private int input = 0;
   private int ranData = 0;
   private int ranInput = 0;
-  private final int[] shown = new int[Texts.LONGEST];
+  private long[] shown = new long[Texts.LONGEST / 8];
   private int bytes = 0;
 
   public PolicyHouse() {
@@ -270,11 +270,16 @@ public final class PolicyHouse {
   }
 
   private int show(int h, boolean json) {
-    texts.start(Texts.LONGEST);
+    texts.count(json ? Texts.LONGEST : Texts.ENDLESS);
     texts.show(h, json, 0);
     if (texts.over) return NONE;
     bytes = texts.length;
-    System.arraycopy(texts.out, 0, shown, 0, bytes);
+    // A DOCUMENT may be greater than all that is made, if a with made it of THE TREE.
+    int size = shown.length;
+    for (int i = 0; i < 30 && 8 * size < bytes; i++) size *= 2;
+    if (size > shown.length) shown = new long[size];
+    texts.pack(bytes, shown);
+    texts.show(h, json, 0);
     return bytes;
   }
 
@@ -291,7 +296,7 @@ public final class PolicyHouse {
   }
 
   public int output(int i) {
-    return i < 0 || i >= bytes ? NONE : shown[i];
+    return i < 0 || i >= bytes ? NONE : (int) (shown[i >> 3] >>> 8 * (i & 7)) & 255;
   }
 
   public int rule(int rule, int what) throws NoSuchElementException {
@@ -363,7 +368,7 @@ public final class PolicyHouse {
     static final int RUN = 258000;
     static final int SPILL = 820000;
     static final int CELLS = 886000;
-    static final int LAX = 60000;
+    static final int LAX = 4000000;
 
     final int[] cell = new int[CELLS];
     final int[] acc = new int[90000];
@@ -377,6 +382,15 @@ public final class PolicyHouse {
     Heap() {
       cell[FALSE] = 1;
       cell[TRUE] = 2;
+      for (int kind = ARRAY; kind <= SET; kind++) {
+        cell[empty(kind)] = kind;
+        cell[empty(kind) + 1] = 1 << 6 | 1;
+      }
+    }
+
+    /** Where the row of a kind with nothing in it stands, once for all. */
+    static int empty(int kind) {
+      return 4 + 2 * (kind - ARRAY);
     }
 
     /** The spill takes what is made too much until the run is ended for it. */
@@ -544,6 +558,8 @@ public final class PolicyHouse {
       int step = kind == OBJECT ? 2 : 1;
       int n = (used - base) / step;
       used = base;
+      // Without FUEL there may be many of these: they must not take room.
+      if (n <= 0) return empty(kind);
       if (kind != ARRAY) {
         sort(base, n, step);
         int left = 0;
@@ -662,6 +678,7 @@ public final class PolicyHouse {
   /** Reads JSON and its numbers and strings; prints values. */
   static final class Texts {
     static final int LONGEST = 100000;
+    static final int ENDLESS = 100000000;
     final Heap heap;
     int[] in = null;
     int to = 0;
@@ -671,7 +688,9 @@ public final class PolicyHouse {
     long value = 0;
     final int[] buf = new int[6004];
     int size = 0;
-    final int[] out = new int[LONGEST];
+    final int[] out = new int[Heap.HEAVY];
+    boolean stored = true;
+    long[] packed = null;
     int length = 0;
     int limit = 0;
     boolean over = false;
@@ -885,20 +904,42 @@ public final class PolicyHouse {
       return heap.made(pairs ? Heap.OBJECT : Heap.ARRAY, base, true);
     }
 
-    /** Starts a print of at most so many bytes. */
+    /** Starts a print of at most so many bytes into out. */
     void start(int most) {
       length = 0;
-      limit = most;
+      limit = Math.min(most, out.length);
       over = false;
+      stored = true;
+      packed = null;
+    }
+
+    /** Starts a print that is counted alone. */
+    void count(int most) {
+      start(0);
+      limit = most;
+      stored = false;
+    }
+
+    /** Starts a print into a row, eight bytes in each of its elements. */
+    void pack(int most, long[] row) {
+      start(0);
+      limit = Math.min(most, 8 * row.length);
+      packed = row;
     }
 
     void put(int c) {
-      if (length < limit && length < LONGEST) {
-        out[length] = c;
-        length++;
-      } else {
+      if (length >= limit) {
         over = true;
+        return;
       }
+      if (packed != null) {
+        int at = length >> 3;
+        int shift = 8 * (length & 7);
+        packed[at] = packed[at] & ~(255L << shift) | (long) c << shift;
+      } else if (stored) {
+        out[length] = c;
+      }
+      length++;
     }
 
     /** Each level of strings around puts a \ ahead of " and \ once more. */
@@ -915,16 +956,13 @@ public final class PolicyHouse {
     }
 
     void putDigits(long whole, int base) {
-      int from = length;
+      long unit = 1;
+      for (int i = 0; i < 64 && whole / unit >= base; i++) unit *= base;
       long rest = whole;
-      for (int i = 0; i < 64 && (rest > 0 || i == 0); i++) {
-        put("0123456789abcdef".charAt((int) (rest % base)));
-        rest /= base;
-      }
-      for (int i = from, j = length - 1; i < j; i++, j--) {
-        int c = out[i];
-        out[i] = out[j];
-        out[j] = c;
+      for (int i = 0; i < 64 && unit > 0; i++) {
+        put("0123456789abcdef".charAt((int) (rest / unit)));
+        rest %= unit;
+        unit /= base;
       }
     }
 
@@ -3646,6 +3684,7 @@ public final class PolicyHouse {
     int p = 0;
     int scope = 0;
     int results = 0;
+    final int[] fixed = new int[400];
 
     Machine(Heap heap, Scopes scopes, Builtins builtins) {
       this.heap = heap;
@@ -3679,6 +3718,7 @@ public final class PolicyHouse {
       scopes.begin(q.bundle, q.value, input, strict);
       bundle = q.bundle;
       own = q.code;
+      for (int r = 0; r < fixed.length; r++) fixed[r] = 0;
       scope = scopes.now;
       results = 0;
       choices = 0;
@@ -3828,6 +3868,7 @@ public final class PolicyHouse {
     void nextBranch(int t) {
       if (cp[t + C] == -2) {
         scopes.free = false;
+        fixed[cp[t + A]] = -1;
         endRule(t, 0);
         return;
       }
@@ -3857,7 +3898,10 @@ public final class PolicyHouse {
       } else if (cp[t + F] != 0) {
         scopes.noteConflict(r);
         value = 0;
+      } else if (value == 0 && fixed[r] != 0) {
+        value = Math.max(fixed[r], 0);
       } else if (value == 0 && bundle.of(r, Bundle.FIXED) >= 0) {
+        // Defaults take no FUEL: each is made once in a RUN, however many SCOPES there are.
         cp[t + C] = -2;
         scopes.free = true;
         fp = cp[t + I];
@@ -4189,6 +4233,7 @@ public final class PolicyHouse {
       } else if (op == Coder.FIXED) {
         failing = false;
         scopes.free = false;
+        fixed[cp[t + A]] = val(1);
         endRule(t, val(1));
       } else if (op == Coder.GIVEPAIR) {
         heap.push(val(1));
