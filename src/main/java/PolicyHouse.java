@@ -270,7 +270,7 @@ public final class PolicyHouse {
   }
 
   private int show(int h, boolean json) {
-    texts.count(json ? Texts.LONGEST : Texts.ENDLESS);
+    texts.measure(json ? Texts.LONGEST : Texts.ENDLESS);
     texts.show(h, json, 0);
     if (texts.over) return NONE;
     bytes = texts.length;
@@ -914,7 +914,7 @@ public final class PolicyHouse {
     }
 
     /** Starts a print that is counted alone. */
-    void count(int most) {
+    void measure(int most) {
       start(0);
       limit = most;
       stored = false;
@@ -5258,7 +5258,7 @@ public final class PolicyHouse {
     int smallNumber(int most) {
       int from = pos;
       int v = 0;
-      while (Texts.isDigit(byteAt(pos)) && pos < from + 4) {
+      while (pos < end && pos < from + 4 && Texts.isDigit(heap.cell[pos])) {
         v = v * 10 + heap.cell[pos] - '0';
         pos++;
       }
@@ -5303,7 +5303,7 @@ public final class PolicyHouse {
       for (int n = 0; n < Heap.HEAVY; n++) {
         int from = pos;
         boolean digits = true;
-        for (; isIdentifier(byteAt(pos)); pos++) {
+        for (; pos < end && isIdentifier(heap.cell[pos]); pos++) {
           digits = digits && Texts.isDigit(heap.cell[pos]);
         }
         if (pos == from) return false;
@@ -5325,7 +5325,7 @@ public final class PolicyHouse {
         if (i > 0 && byteAt(pos) != '.') return false;
         if (i > 0) pos++;
         int from = pos;
-        while (Texts.isDigit(byteAt(pos))) pos++;
+        while (pos < end && Texts.isDigit(heap.cell[pos])) pos++;
         if (pos == from || pos > from + 1 && heap.cell[from] == '0') return false;
       }
       if (byteAt(pos) == '-') {
@@ -5396,14 +5396,14 @@ public final class PolicyHouse {
       long whole = 0;
       long part = 0;
       int from = pos;
-      for (; Texts.isDigit(byteAt(pos)); pos++) {
+      for (; pos < end && Texts.isDigit(heap.cell[pos]); pos++) {
         whole = Math.min(whole * 10 + heap.cell[pos] - '0', most * 2);
       }
       if (pos == from) return 0;
       if (byteAt(pos) == '.') {
         pos++;
         from = pos;
-        for (; Texts.isDigit(byteAt(pos)) && pos < from + 6; pos++) {
+        for (; pos < end && pos < from + 6 && Texts.isDigit(heap.cell[pos]); pos++) {
           part = part * 10 + heap.cell[pos] - '0';
         }
         if (pos == from) return 0;
