@@ -19,20 +19,13 @@ public final class PolicyHouseTexts {
 
   /** A fresh house ahead of the calls that one may take. */
   private static void tape(String s) {
-    byte[] b = s.getBytes(java.nio.charset.StandardCharsets.ISO_8859_1);
+    byte[] b = Desk.bytes(s);
     calls += b.length / 20 + 6;
     if (calls > 400) {
       h = new PolicyHouse();
       calls = b.length / 20 + 6;
     }
-    for (int i = 0; i < b.length; i += 20) {
-      int[] v = new int[5];
-      for (int k = 0; k < 20; k++) {
-        v[k / 4] = v[k / 4] << 8 | (i + k < b.length ? b[i + k] & 255 : 0);
-      }
-      h.feed(v[0], v[1], v[2], v[3], v[4]);
-    }
-    h.end(b.length);
+    Desk.tape(h, b);
   }
 
   private static void wrongJson(String s, int place) {

@@ -9,16 +9,23 @@ final class Desk {
     System.out.println(what + " answered " + got + ", due is " + due);
   }
 
-  void tape(String s) {
-    byte[] b = s.getBytes(java.nio.charset.StandardCharsets.ISO_8859_1);
+  static byte[] bytes(String s) {
+    return s.getBytes(java.nio.charset.StandardCharsets.ISO_8859_1);
+  }
+
+  static void tape(PolicyHouse house, byte[] b) {
     for (int i = 0; i < b.length; i += 20) {
       int[] v = new int[5];
       for (int k = 0; k < 20; k++) {
         v[k / 4] = v[k / 4] << 8 | (i + k < b.length ? b[i + k] & 255 : 0);
       }
-      h.feed(v[0], v[1], v[2], v[3], v[4]);
+      house.feed(v[0], v[1], v[2], v[3], v[4]);
     }
-    h.end(b.length);
+    house.end(b.length);
+  }
+
+  void tape(String s) {
+    tape(h, bytes(s));
   }
 
   int module(String s) {
