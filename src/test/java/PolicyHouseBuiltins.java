@@ -1,28 +1,5 @@
 // The built-ins and signs, each by a query x := .. in a plain and in a STRICT RUN.
-public final class PolicyHouseBuiltins {
-  private static Desk d = new Desk();
-  private static int used = 0;
-
-  /** What an expression is; due "none": no value, NOTED as a built-in's in a STRICT RUN. */
-  private static void is(String e, String due) {
-    used += e.length() / 20 + 10;
-    if (used > 400) {
-      d = new Desk();
-      used = e.length() / 20 + 10;
-    }
-    String q = "x := " + e;
-    if (due.equals("none")) {
-      Desk.same(q, d.ask(q), "");
-      Desk.same("strict " + q, d.ask(q, true), "-103");
-    } else if (due.equals("nothing")) {
-      Desk.same("strict " + q, d.ask(q, true), "");
-    } else if (due.equals("great")) {
-      Desk.same(q, d.ask(q), "-102");
-    } else {
-      Desk.same(q, d.ask(q), "[" + due + "]");
-    }
-  }
-
+public final class PolicyHouseBuiltins extends Sheet {
   private static void signs() {
     is("1 + 2.5", "3.5");
     is("1 - 2.5", "-1.5");
@@ -324,17 +301,17 @@ public final class PolicyHouseBuiltins {
     is("regex.match(`^(ab|c){2}$`, \"abc\")", "true");
     is("regex.match(`^(ab|c){2}$`, \"ab\")", "false");
     is("regex.match(`(a*)*b`, \"aaac\")", "false");
-    is("regex.match(`(a{20}){15}`, \"" + times("a", 300) + "\")", "true");
-    is("regex.match(`(a{20}){15}`, \"" + times("a", 299) + "\")", "false");
+    is("regex.match(`(a{20}){15}`, \"" + "a".repeat(300) + "\")", "true");
+    is("regex.match(`(a{20}){15}`, \"" + "a".repeat(299) + "\")", "false");
     is("regex.match(`(a{20}){15}b`, \"a\")", "none");
     is("regex.match(`((a{20}){20}){0}b`, \"b\")", "true");
     is("regex.match(`((((((a))))))`, \"a\")", "none");
     is("regex.match(`(((((){20}){20}){20}){20}){20}a`, \"a\")", "true");
     is("regex.match(`^((((){0,14}){10}){1}a){2}$`, \"aa\")", "true");
     is("regex.match(`^((((){0,14}){10}){2}a){2}$`, \"aa\")", "none");
-    is("regex.match(`[ab](.\u00ff" + times(".", 2200) + "){0}`, \"c\")", "false");
-    is("regex.match(`[ab](\\d[x](" + times("\\w", 1200) + "){1}){0}`, \"xb\")", "true");
-    is("regex.match(`(" + times("(|a){20}", 40) + "){0}^(((((|))))){20}b$`, \"b\")", "true");
+    is("regex.match(`[ab](.\u00ff" + ".".repeat(2200) + "){0}`, \"c\")", "false");
+    is("regex.match(`[ab](\\d[x](" + "\\w".repeat(1200) + "){1}){0}`, \"xb\")", "true");
+    is("regex.match(`(" + "(|a){20}".repeat(40) + "){0}^(((((|))))){20}b$`, \"b\")", "true");
     String[] no = {"a**", "a+?", "a{2}{3}", "*", "(*a)", "a|*", "(", ")", "a)", "(a", "[", "[]", "[^]", "[a", "]", "}", "a{", "a{}", "a{,2}",
       "a{3,2}", "a{21}", "a{01}", "a{1", "a{1,", "a{1x}", "\\", "\\x", "\\n", "[a-]", "[-a]", "[b-a]", "[\\d-z]", "[a-\\d]", "[\\x]", "{1}", "[a-c-e]"};
     for (String s : no) is("regex.match(`" + s + "`, \"a\")", "none");
@@ -408,16 +385,10 @@ public final class PolicyHouseBuiltins {
     for (String s : no) is("time.seconds(" + s + ")", "none");
   }
 
-  private static String times(String s, int n) {
-    StringBuilder b = new StringBuilder();
-    for (int i = 0; i < n; i++) b.append(s);
-    return b.toString();
-  }
-
   private static void great() {
-    is("array.concat(numbers.range(1, 500), numbers.range(1, 500))", "[1,2,3", true);
+    begins("array.concat(numbers.range(1, 500), numbers.range(1, 500))", 2 * 1893 - 1 + 2, "[1,2,3");
     is("[numbers.range(1, 500), numbers.range(1, 500), numbers.range(1, 500), numbers.range(1, 500), numbers.range(1, 500), numbers.range(1, 500), numbers.range(1, 500), numbers.range(1, 500)]", "great");
-    is("replace(sprintf(\"%v\", [numbers.range(1, 500)]), \"1\", \"" + times("z", 100) + "\")", "great");
+    is("replace(sprintf(\"%v\", [numbers.range(1, 500)]), \"1\", \"" + "z".repeat(100) + "\")", "great");
     is("sprintf(\"%v%v%v\", [numbers.range(1, 500), numbers.range(1, 500), numbers.range(1, 500)])", "great");
     is("sprintf(\"%v%v%v%q\", [numbers.range(1, 500), numbers.range(1, 500), numbers.range(1, 500)])", "none");
     is("count(walk(numbers.range(1, 500)))", "501");
@@ -425,20 +396,17 @@ public final class PolicyHouseBuiltins {
     is("count(walk([[numbers.range(1, 443)]]))", "great");
     is("walk([numbers.range(1, 500), numbers.range(1, 500)])", "great");
     is("hex.encode(hex.encode(sprintf(\"%v\", [numbers.range(1, 500)])))", "great");
-    is("{y | some y in numbers.range(1, 500)} - {1}", "{2,3,", true);
-    used = 0;
+    begins("{y | some y in numbers.range(1, 500)} - {1}", 1893 - 2 + 2, "{2,3,");
     d = new Desk();
     Desk.same("too many", d.ask("r := numbers.range(1, 500); a := array.concat(r, r); b := array.concat(a, a); x := count(array.concat(b, b))"), "-102");
-    Desk.same("not too many", d.ask("r := numbers.range(1, 499); a := count(array.concat(r, r)); a == 998").length() > 9, true);
-    Desk.same("20 deep", d.ask("a := [[[[[1]]]]]; b := [[[[[a]]]]]; c := [[[[b]]]]; x := [1 | c == c]; count(x) == 1").length() > 0, true);
+    Desk.same("not too many", d.number("r := numbers.range(1, 499); a := count(array.concat(r, r)); a == 998"), "1");
+    Desk.same("20 deep", d.number("a := [[[[[1]]]]]; b := [[[[[a]]]]]; c := [[[[b]]]]; x := [1 | c == c]; count(x) == 1"), "1");
     Desk.same("21 deep", d.ask("a := [[[[[1]]]]]; b := [[[[[a]]]]]; c := [[[[[b]]]]]; x := [[[[c]]]]; y := [x]"), "-102");
   }
 
-  private static void is(String e, String begins, boolean begin) {
+  private static void begins(String e, int bytes, String begin) {
     d = new Desk();
-    used = 30;
-    String got = d.ask("x := " + e);
-    Desk.same(e + " begins", got.startsWith("[" + begins), true);
+    same(e, d.begin("x := " + e, begin.length() + 1), bytes + " [" + begin);
   }
 
   public static void main(String[] args) {
@@ -453,7 +421,6 @@ public final class PolicyHouseBuiltins {
     nets();
     times();
     great();
-    if (Desk.wrong > 0) System.exit(1);
-    System.out.println("built-ins: all answers are as due");
+    Desk.end("built-ins");
   }
 }

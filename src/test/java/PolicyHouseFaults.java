@@ -1,42 +1,5 @@
 // Promises 6 to 8, 12, 13, 21, 22: the faults of bundles and queries, rules and orders.
-public final class PolicyHouseFaults {
-  private static Desk d = new Desk();
-  private static int used = 0;
-
-  private static void fresh(int bytes) {
-    used += bytes / 20 + 12;
-    if (used < 400) return;
-    d = new Desk();
-    used = bytes / 20 + 12;
-  }
-
-  private static void fault(String due, String... texts) {
-    int n = 0;
-    for (String s : texts) n += s.length();
-    fresh(n);
-    Desk.same(String.join(" || ", texts), d.mods(texts), due);
-  }
-
-  /** Rules in a package p of one module; the place is told from the rules on. */
-  private static void rules(String text, int kind, int place) {
-    fault(kind + ":0@" + (10 + place), "package p\n" + text);
-  }
-
-  private static void right(String text, int n) {
-    fault("" + n, "package p\n" + text);
-  }
-
-  private static void query(String q, String due) {
-    fresh(q.length());
-    Desk.same(q, d.ask(q), due);
-  }
-
-  private static String times(String s, int n) {
-    StringBuilder b = new StringBuilder();
-    for (int i = 0; i < n; i++) b.append(s);
-    return b.toString();
-  }
-
+public final class PolicyHouseFaults extends Sheet {
   private static void clashes() {
     fault("1:0@24", "package p import data.a import input.b.a");
     fault("1:0@10", "package p import data.a.x as y y := 1");
@@ -116,8 +79,8 @@ public final class PolicyHouseFaults {
     right(many + "true }", 1);
     rules(many + "w:=1; true }", 3, 7 + 30 * 7);
     rules("f(w)" + many.substring(1) + "true }", 3, 7 + 3 + 29 * 7);
-    query(many.substring(7) + "true", "[" + times("1,", 29) + "1]");
-    query(many.substring(7) + "w:=1", "3@210");
+    asks(many.substring(7) + "true", "[" + "1,".repeat(29) + "1]");
+    asks(many.substring(7) + "w:=1", "3@210");
   }
 
   private static void patterns() {
@@ -164,29 +127,29 @@ public final class PolicyHouseFaults {
     right(row, 12);
     fault("7:0@" + (10 + row.length()), "package p\n" + row + "s := 1 if r11\n");
     fault("7:0@10", "package p\n" + "s := 1 if r11\n" + row + "t := s");
-    Desk.same("rules that r11 depends on", d.h.rule(0, 4), d.h.rule(0, 4));
+    same("rules that r11 depends on", d.h().rule(0, 4), d.h().rule(0, 4));
     fault("4", "package p\na := b\nb := c\nc := d.x\nd contains data.z");
-    Desk.same("sort", d.h.rule(3, 0), 2);
-    Desk.same("module", d.h.rule(3, 1), 0);
-    Desk.same("place", d.h.rule(1, 2), 17);
-    Desk.same("parts", d.h.rule(1, 3), 1);
-    Desk.same("depends", d.h.rule(0, 4), 3);
-    Desk.same("depends", d.h.rule(3, 4), 0);
-    Desk.same("no such what", d.h.rule(0, 5), -1);
+    same("sort", d.h().rule(3, 0), 2);
+    same("module", d.h().rule(3, 1), 0);
+    same("place", d.h().rule(1, 2), 17);
+    same("parts", d.h().rule(1, 3), 1);
+    same("depends", d.h().rule(0, 4), 3);
+    same("depends", d.h().rule(3, 4), 0);
+    same("no such what", d.h().rule(0, 5), -1);
     for (int r = -1; r <= 4; r += 5) {
       boolean thrown = false;
       try {
-        d.h.rule(r, 9);
+        d.h().rule(r, 9);
       } catch (java.util.NoSuchElementException e) {
         thrown = true;
       }
       Desk.same("rule " + r + " throws", thrown, true);
     }
     fault("3", "package p\nf(x) := 1\ndefault g := 1", "package p\no[1] := 2\ng := 3\nf(y) := 2");
-    Desk.same("sort", d.h.rule(0, 0) + "" + d.h.rule(1, 0) + d.h.rule(2, 0), "103");
-    Desk.same("module", d.h.rule(2, 1), 1);
-    Desk.same("first part", d.h.rule(1, 1) + "@" + d.h.rule(1, 2), "0@20");
-    Desk.same("parts", d.h.rule(0, 3) + "" + d.h.rule(1, 3) + d.h.rule(2, 3), "221");
+    same("sort", d.h().rule(0, 0) + "" + d.h().rule(1, 0) + d.h().rule(2, 0), "103");
+    same("module", d.h().rule(2, 1), 1);
+    same("first part", d.h().rule(1, 1) + "@" + d.h().rule(1, 2), "0@20");
+    same("parts", d.h().rule(0, 3) + "" + d.h().rule(1, 3) + d.h().rule(2, 3), "221");
   }
 
   private static void unsafe() {
@@ -244,87 +207,79 @@ public final class PolicyHouseFaults {
 
   private static void queries() {
     d = new Desk();
-    used = 0;
     fault("3", "package p\nf(x) := x\na := 1\nb if { true }");
-    same("x := a", "2@5");
-    same("x := f(1)", "2@5");
-    same("x := data.p.f(7)", "[7]");
-    same("x := p.a", "2@5");
-    same("a := data.p.a", "[1]");
-    same("input := 1", "3@0");
-    same("x := 1; x := 2", "3@8");
-    same("x.y := 1", "2@0");
-    same("input.y := 1", "4@0");
-    same("x := 1 with data.p as 2", "5@12");
-    same("x := 1 with data.p.a.b as 2", "5@12");
-    same("x := 1 with data.p.a as 2", "[1]");
-    same("some x; x > 1", "8@8");
-    same("x := abs(\"1\")", "9@9");
-    same("some x", "8@0");
-    fresh(60);
+    asks("x := a", "2@5");
+    asks("x := f(1)", "2@5");
+    asks("x := data.p.f(7)", "[7]");
+    asks("x := p.a", "2@5");
+    asks("a := data.p.a", "[1]");
+    asks("input := 1", "3@0");
+    asks("x := 1; x := 2", "3@8");
+    asks("x.y := 1", "2@0");
+    asks("input.y := 1", "4@0");
+    asks("x := 1 with data.p as 2", "5@12");
+    asks("x := 1 with data.p.a.b as 2", "5@12");
+    asks("x := 1 with data.p.a as 2", "[1]");
+    asks("some x; x > 1", "8@8");
+    asks("x := abs(\"1\")", "9@9");
+    asks("some x", "8@0");
+    ready(60, 40);
     int q = d.prepare("y := x; x := 1; z := [y | some y in [1]]");
-    Desk.same("a clash within", q, -7003);
+    same("a clash within", q, -7003);
     q = d.prepare("y := x; some z; input[z] == y; x := 1");
     for (int k = -1; k < 5; k++) {
       int due = k == 0 ? 1 : k == 1 ? 3 : k == 2 ? 0 : k == 3 ? 2 : -1;
-      Desk.same("order " + k, d.h.order(q, k), due);
+      Desk.same("order " + k, d.h().order(q, k), due);
     }
-    Desk.same("order of none", d.h.order(3, 0), -1);
-    Desk.same("order of -1", d.h.order(-1, 0), -1);
-    Desk.same("fault of a right query", d.h.fault(0) + " " + d.h.fault(1) + " " + d.h.fault(2), "0 -1 -1");
-    Desk.same("a fault", d.ask("x := y"), "2@5");
-    Desk.same("wrong", d.ask("x := "), "wrong 5");
-    Desk.same("the fault stays", d.h.fault(0) + " " + d.h.fault(1) + " " + d.h.fault(2), "2 -1 5");
-    Desk.same("no such what", d.h.fault(3) + " " + d.h.fault(-1), "-1 -1");
+    same("order of none", d.h().order(3, 0), -1);
+    same("order of -1", d.h().order(-1, 0), -1);
+    same("fault of a right query", d.h().fault(0) + " " + d.h().fault(1) + " " + d.h().fault(2), "0 -1 -1");
+    same("a fault", d.ask("x := y"), "2@5");
+    same("wrong", d.ask("x := "), "wrong 5");
+    same("the fault stays", d.h().fault(0) + " " + d.h().fault(1) + " " + d.h().fault(2), "2 -1 5");
+    same("no such what", d.h().fault(3) + " " + d.h().fault(-1), "-1 -1");
     d = new Desk();
-  }
-
-  private static void same(String q, String due) {
-    Desk.same(q, d.ask(q), due);
   }
 
   private static void withs() {
     d = new Desk();
-    used = 0;
     fault("4", "package p\na if { input.x with input as 1 }\nb if { a with input as 1 }\nc if { b with input as 1 }\nd if { c with input as 1 }");
-    same("data.p.c", "");
-    same("data.p.d", "7@0");
-    same("true; data.p.c with input as 1", "7@6");
-    same("true; data.p.c with input as data.p.c", "7@6");
-    same("true; data.p.b with input as data.p.c", "");
-    same("x := [y | y := data.p.d]", "7@0");
-    same("data[input.x]", "7@0");
-    same("true; x := [y | y := 1 with input as [z | z := data.p.c with input as 1]]", "7@6");
-    same("some x; data.p.d", "7@8");
+    asks("data.p.c", "");
+    asks("data.p.d", "7@0");
+    asks("true; data.p.c with input as 1", "7@6");
+    asks("true; data.p.c with input as data.p.c", "7@6");
+    asks("true; data.p.b with input as data.p.c", "");
+    asks("x := [y | y := data.p.d]", "7@0");
+    asks("data[input.x]", "7@0");
+    asks("true; x := [y | y := 1 with input as [z | z := data.p.c with input as 1]]", "7@6");
+    asks("some x; data.p.d", "7@8");
   }
 
   private static void lives() {
     d = new Desk();
-    used = 0;
-    Desk.same("activate", d.mods("package p\nf(x) := 1"), "1");
+    same("activate", d.mods("package p\nf(x) := 1"), "1");
     for (int i = 0; i < 4; i++) Desk.same("prepare", d.prepare("x := data.p.f(1)"), i);
-    Desk.same("no room", d.prepare("x := 1"), -10000);
-    Desk.same("a fault ahead of no room", d.prepare("x := y"), -7002);
-    Desk.same("wrong ahead of no room", d.prepare("x"), -7002);
-    Desk.same("queries", d.h.count(2), 4);
-    Desk.same("release", d.h.release(1), true);
-    Desk.same("release again", d.h.release(1), false);
-    Desk.same("release of none", d.h.release(4) || d.h.release(-1), false);
-    Desk.same("the least free", d.prepare("x := 2"), 1);
-    Desk.same("drop and activate", d.mods(), "0");
-    Desk.same("renew by a bundle without it", d.h.renew(0), -2);
-    Desk.same("its fault", d.h.fault(0) + " " + d.h.fault(1) + " " + d.h.fault(2), "2 -1 5");
-    Desk.same("it stays", d.h.run(0, false), 1);
-    Desk.same("renew", d.h.renew(1), 1);
-    Desk.same("its fault", d.h.fault(0), 0);
-    Desk.same("renew of none", d.h.renew(4) + d.h.renew(-1), -2);
-    Desk.same("check", d.h.check(), 0);
-    Desk.same("a faulty draft", d.mods("package p\na := b"), "2:0@15");
-    Desk.same("the active bundle stays", d.h.count(1), 0);
-    Desk.same("check", d.h.check(), 2);
-    Desk.same("activate", d.h.activate(), -2);
+    same("no room", d.prepare("x := 1"), -10000);
+    same("a fault ahead of no room", d.prepare("x := y"), -7002);
+    same("wrong ahead of no room", d.prepare("x"), -7002);
+    same("queries", d.h().count(2), 4);
+    same("release", d.h().release(1), true);
+    same("release again", d.h().release(1), false);
+    same("release of none", d.h().release(4) || d.h().release(-1), false);
+    same("the least free", d.prepare("x := 2"), 1);
+    same("drop and activate", d.mods(), "0");
+    same("renew by a bundle without it", d.h().renew(0), -2);
+    same("its fault", d.h().fault(0) + " " + d.h().fault(1) + " " + d.h().fault(2), "2 -1 5");
+    same("it stays", d.h().run(0, false), 1);
+    same("renew", d.h().renew(1), 1);
+    same("its fault", d.h().fault(0), 0);
+    same("renew of none", d.h().renew(4) + d.h().renew(-1), -2);
+    same("check", d.h().check(), 0);
+    same("a faulty draft", d.mods("package p\na := b"), "2:0@15");
+    same("the active bundle stays", d.h().count(1), 0);
+    same("check", d.h().check(), 2);
+    same("activate", d.h().activate(), -2);
     d = new Desk();
-    used = 0;
   }
 
   public static void main(String[] args) {
@@ -339,7 +294,6 @@ public final class PolicyHouseFaults {
     queries();
     withs();
     lives();
-    if (Desk.wrong > 0) System.exit(1);
-    System.out.println("faults: all answers are as due");
+    Desk.end("faults");
   }
 }

@@ -1,96 +1,5 @@
 // Promises 1 to 5 and 9 to 11: the tape, JSON texts, module and query texts with their places.
-public final class PolicyHouseTexts {
-  private static int wrong = 0;
-
-  private static void same(String what, long got, long due) {
-    if (got == due) return;
-    wrong++;
-    System.out.println(what + " answered " + got + ", due is " + due);
-  }
-
-  private static void same(String what, String got, String due) {
-    if (got.equals(due)) return;
-    wrong++;
-    System.out.println(what + " answered " + got + ", due is " + due);
-  }
-
-  private static PolicyHouse h = new PolicyHouse();
-  private static int calls = 0;
-
-  /** A fresh house ahead of the calls that one may take. */
-  private static void tape(String s) {
-    byte[] b = Desk.bytes(s);
-    calls += b.length / 20 + 6;
-    if (calls > 400) {
-      h = new PolicyHouse();
-      calls = b.length / 20 + 6;
-    }
-    Desk.tape(h, b);
-  }
-
-  private static void wrongJson(String s, int place) {
-    tape(s);
-    same("data of " + s, h.data(), -1 - place);
-    tape(s);
-    same("input of " + s, h.input(), -1 - place);
-    tape(s);
-    same("patch of " + s, h.patch(), -1 - place);
-  }
-
-  /** Reads a JSON text as input, and prints it by a query. */
-  private static void json(String s, int weight, String print) {
-    tape(s);
-    same("input of " + s, h.input(), weight);
-    tape("x := input");
-    int q = h.prepare();
-    same("run of " + s, h.run(q, false), 1);
-    int n = h.result(0, 0);
-    StringBuilder b = new StringBuilder();
-    for (int i = 0; i < n; i++) b.append((char) h.output(i));
-    same("print of " + s, b.toString(), "[" + print + "]");
-    h.release(q);
-    tape("");
-    h.input();
-  }
-
-  private static void module(String s, int due) {
-    tape(s);
-    h.drop();
-    same("module of " + s, h.module(), due);
-    same("tape behind it", h.count(5), 0);
-  }
-
-  private static void wrongModule(String s, int place) {
-    module(s, -1 - place);
-  }
-
-  /** A rule's text behind "package p" and a byte 10; places are told from the rule on. */
-  private static void rule(String s) {
-    module("package p\n" + s, 1);
-  }
-
-  private static void wrongRule(String s, int place) {
-    wrongModule("package p\n" + s, 10 + place);
-  }
-
-  private static void wrongQuery(String s, int place) {
-    tape(s);
-    same("prepare of " + s, h.prepare(), -1 - place);
-  }
-
-  private static void query(String s) {
-    tape(s);
-    int n = h.prepare();
-    same("prepare of " + s, n >= 0 ? 0 : n, 0);
-    h.release(n);
-  }
-
-  private static String times(String s, int n) {
-    StringBuilder b = new StringBuilder();
-    for (int i = 0; i < n; i++) b.append(s);
-    return b.toString();
-  }
-
+public final class PolicyHouseTexts extends Sheet {
   private static void newObject() {
     PolicyHouse x = new PolicyHouse();
     for (int what = 0; what <= 6; what++) same("new count " + what, x.count(what), what == 3 ? 1 : 0);
@@ -143,9 +52,9 @@ public final class PolicyHouseTexts {
     json("{\"b\":1,\"a\":[],\"b\":{}}", 7, "{\"a\":[],\"b\":{}}");
     json("{\"\":{}}", 3, "{\"\":{}}");
     json("\"\u007f\u0080\"", 3, "\"\u007f\u0080\"");
-    json(times("[", 12) + times("]", 12), 12, times("[", 12) + times("]", 12));
-    wrongJson(times("[", 13) + times("]", 13), 12);
-    wrongJson("{\"a\":" + times("[", 12), 16);
+    json("[".repeat(12) + "]".repeat(12), 12, "[".repeat(12) + "]".repeat(12));
+    wrongJson("[".repeat(13) + "]".repeat(13), 12);
+    wrongJson("{\"a\":" + "[".repeat(12), 16);
     wrongJson(" ", 1);
     wrongJson("nul", 3);
     wrongJson("nulx", 3);
@@ -185,66 +94,46 @@ public final class PolicyHouseTexts {
   }
 
   private static void jsonBounds() {
-    tape("[1]");
-    same("data that is no object", h.data(), -10000);
-    tape("{\"a\":\"" + times("x", 3994) + "\"}");
-    same("data as heavy as may be", h.data(), 1 + 2 + 3995);
-    same("its weight", h.count(3), 3998);
-    h = new PolicyHouse();
-    tape("{\"a\":\"" + times("x", 3997) + "\"}");
-    same("data too great", h.data(), -10000);
-    same("data stays", h.count(3), 1);
-    h = new PolicyHouse();
-    tape("\"" + times("x", 3999) + "\"");
-    same("input as heavy as may be", h.input(), 4000);
-    same("its weight", h.count(4), 4000);
-    h = new PolicyHouse();
-    tape("\"" + times("x", 4000) + "\"");
-    same("input too great", h.input(), -10000);
-    tape("5");
-    same("input", h.input(), 1);
-    tape("5x");
-    same("wrong input", h.input(), -2);
-    same("input stays", h.count(4), 1);
-    same("no input", h.input(), 0);
-    same("its weight", h.count(4), 0);
-    same("data of an empty tape", h.data(), -1);
-    same("patch of an empty tape", h.patch(), -1);
-    same("module of an empty tape", h.module(), -1);
-    same("prepare of an empty tape", h.prepare(), -1);
+    same("data that is no object", d.data("[1]"), -10000);
+    same("data as heavy as may be", d.data("{\"a\":\"" + "x".repeat(3994) + "\"}"), 1 + 2 + 3995);
+    same("its weight", d.h().count(3), 3998);
+    d = new Desk();
+    same("data too great", d.data("{\"a\":\"" + "x".repeat(3997) + "\"}"), -10000);
+    same("data stays", d.h().count(3), 1);
+    d = new Desk();
+    same("input as heavy as may be", d.input("\"" + "x".repeat(3999) + "\""), 4000);
+    same("its weight", d.h().count(4), 4000);
+    d = new Desk();
+    same("input too great", d.input("\"" + "x".repeat(4000) + "\""), -10000);
+    same("input", d.input("5"), 1);
+    same("wrong input", d.input("5x"), -2);
+    same("input stays", d.h().count(4), 1);
+    same("no input", d.h().input(), 0);
+    same("its weight", d.h().count(4), 0);
+    same("data of an empty tape", d.h().data(), -1);
+    same("patch of an empty tape", d.h().patch(), -1);
+    same("module of an empty tape", d.h().module(), -1);
+    same("prepare of an empty tape", d.h().prepare(), -1);
   }
 
   private static void patches() {
-    tape("{\"a\":[1,2],\"b\":{\"c\":null}}");
-    same("data", h.data(), 12);
-    tape("[]");
-    same("an empty patch", h.patch(), 12);
-    tape("[{\"op\":\"add\",\"path\":\"/a/1\",\"value\":9},{\"op\":\"remove\",\"path\":\"/b/c\"}]");
-    same("a patch", h.patch(), 10);
-    tape("{}");
-    same("a patch that is no array", h.patch(), -10000);
-    tape("[{\"op\":\"remove\",\"path\":\"/x\"}]");
-    same("a patch that can't be done", h.patch(), -10000);
-    tape("[{\"op\":\"replace\",\"path\":\"\",\"value\":[1]}]");
-    same("a patch to no object", h.patch(), -10000);
-    tape("[{\"op\":\"add\",\"path\":\"/b/d\",\"value\":1},{\"op\":\"test\",\"path\":\"/b\",\"value\":2}]");
-    same("a patch that fails late", h.patch(), -10000);
-    same("data stays", h.count(3), 10);
-    tape("{\"a\":" + times("[", 11) + times("]", 11) + "}");
-    same("data", h.data(), 14);
-    String inner = "[{\"op\":\"add\",\"path\":\"/a" + times("/0", 10) + "/-\",\"value\":";
-    tape(inner + times("[", 9) + times("]", 9) + "}]");
-    same("21 deep", h.patch(), -10000);
-    tape(inner + times("[", 8) + times("]", 8) + "}]");
-    same("20 deep", h.patch(), 22);
-    tape("{\"a\":\"" + times("x", 1000) + "\"}");
-    same("data", h.data(), 1004);
+    same("data", d.data("{\"a\":[1,2],\"b\":{\"c\":null}}"), 12);
+    same("an empty patch", d.patch("[]"), 12);
+    same("a patch", d.patch("[{\"op\":\"add\",\"path\":\"/a/1\",\"value\":9},{\"op\":\"remove\",\"path\":\"/b/c\"}]"), 10);
+    same("a patch that is no array", d.patch("{}"), -10000);
+    same("a patch that can't be done", d.patch("[{\"op\":\"remove\",\"path\":\"/x\"}]"), -10000);
+    same("a patch to no object", d.patch("[{\"op\":\"replace\",\"path\":\"\",\"value\":[1]}]"), -10000);
+    same("a patch that fails late", d.patch("[{\"op\":\"add\",\"path\":\"/b/d\",\"value\":1},{\"op\":\"test\",\"path\":\"/b\",\"value\":2}]"), -10000);
+    same("data stays", d.h().count(3), 10);
+    same("data", d.data("{\"a\":" + "[".repeat(11) + "]".repeat(11) + "}"), 14);
+    String inner = "[{\"op\":\"add\",\"path\":\"/a" + "/0".repeat(10) + "/-\",\"value\":";
+    same("21 deep", d.patch(inner + "[".repeat(9) + "]".repeat(9) + "}]"), -10000);
+    same("20 deep", d.patch(inner + "[".repeat(8) + "]".repeat(8) + "}]"), 22);
+    same("data", d.data("{\"a\":\"" + "x".repeat(1000) + "\"}"), 1004);
     String copies = "[{\"op\":\"copy\",\"from\":\"/a\",\"path\":\"/b\"},{\"op\":\"copy\",\"from\":\"/a\",\"path\":\"/c\"}";
-    tape(copies + "]");
-    same("copies", h.patch(), 1 + 3 * 1003);
-    tape("[{\"op\":\"copy\",\"from\":\"/a\",\"path\":\"/d\"},{\"op\":\"remove\",\"path\":\"/d\"}]");
-    same("a patch that is too great on its way", h.patch(), -10000);
-    same("data stays", h.count(3), 3010);
+    same("copies", d.patch(copies + "]"), 1 + 3 * 1003);
+    same("a patch that is too great on its way", d.patch("[{\"op\":\"copy\",\"from\":\"/a\",\"path\":\"/d\"},{\"op\":\"remove\",\"path\":\"/d\"}]"), -10000);
+    same("data stays", d.h().count(3), 3010);
   }
 
   private static void modules() {
@@ -281,14 +170,14 @@ public final class PolicyHouseTexts {
     wrongModule("package p import data", 21);
     wrongModule("package p import data.x as _", 27);
     wrongModule("package p import data.a.b.c.d.e.f.g", 33);
-    wrongModule("package p " + times("import data.a as b ", 11), 10 + 190);
+    wrongModule("package p " + "import data.a as b ".repeat(11), 10 + 190);
     wrongModule("package p a := 1 import data.x", 17);
-    wrongModule("package p " + times("a:=1 ", 101), 10 + 500);
-    module("package p " + times("a:=1 ", 100), 100);
+    wrongModule("package p " + "a:=1 ".repeat(101), 10 + 500);
+    module("package p " + "a:=1 ".repeat(100), 100);
     wrongModule("package p $", 10);
     wrongModule("package p a := 1 !", 17);
-    wrongModule("package p a" + times("b", 24) + " := 1", 10);
-    module("package p a" + times("b", 23) + " := 1", 1);
+    wrongModule("package p a" + "b".repeat(24) + " := 1", 10);
+    module("package p a" + "b".repeat(23) + " := 1", 1);
   }
 
   private static void rules() {
@@ -319,8 +208,8 @@ public final class PolicyHouseTexts {
     wrongRule("o[1] := 2 else := 3", 10);
     wrongRule("a := 1 else", 11);
     wrongRule("a := 1 else true", 12);
-    wrongRule("a := 1" + times(" else := 1", 9), 6 + 80 + 1);
-    rule("a := 1" + times(" else := 1", 8));
+    wrongRule("a := 1" + " else := 1".repeat(9), 6 + 80 + 1);
+    rule("a := 1" + " else := 1".repeat(8));
     wrongRule("default a := x", 13);
     wrongRule("default a := [1, x]", 17);
     wrongRule("default a := [1 | true]", 16);
@@ -387,8 +276,8 @@ public final class PolicyHouseTexts {
     wrongRule("a if b with data as 1", 17);
     wrongRule("a if b with input .c as 1", 18);
     wrongRule("a if b with data.x[1] as 1", 18);
-    wrongRule("a if b" + times(" with input as 1", 5), 6 + 64 + 1);
-    rule("a if b" + times(" with input as 1", 4));
+    wrongRule("a if b" + " with input as 1".repeat(5), 6 + 64 + 1);
+    rule("a if b" + " with input as 1".repeat(4));
     wrongRule("a if b with input.a.b.c.d.e.f.g as 1", 29);
   }
 
@@ -409,33 +298,27 @@ public final class PolicyHouseTexts {
     wrongQuery("x := a .b", 7);
     wrongQuery("x := 00", 6);
     wrongQuery("x := - 1", 5);
-    tape("x := 1");
-    h.end(3);
-    same("a text that the tape's end cuts", h.prepare(), -3);
-
+    ready(0, 0).tape("x := 1");
+    d.h().end(3);
+    same("a text that the tape's end cuts", d.h().prepare(), -3);
   }
 
   private static void draft() {
-    PolicyHouse x = new PolicyHouse();
-    h = x;
-    calls = 0;
+    d = new Desk();
     for (int i = 0; i < 4; i++) {
-      tape("package p" + i + " a := 1 else := 2 b := 3");
-      same("module", x.module(), 2);
+      same("module", d.module("package p" + i + " a := 1 else := 2 b := 3"), 2);
     }
-    same("modules", x.count(0), 4);
-    tape("package p");
-    same("a fifth module", x.module(), -10000);
-    tape("package 5");
-    same("a fifth module that is wrong", x.module(), -9);
-    same("modules stay", x.count(0), 4);
-    same("rules", x.activate(), 8);
-    same("modules stay", x.count(0), 4);
-    same("drop", x.drop(), 4);
-    same("drop again", x.drop(), 0);
-    same("rules of the active bundle stay", x.count(1), 8);
-    same("activate nothing", x.activate(), 0);
-    same("no rules then", x.count(1), 0);
+    same("modules", d.h().count(0), 4);
+    same("a fifth module", d.module("package p"), -10000);
+    same("a fifth module that is wrong", d.module("package 5"), -9);
+    same("modules stay", d.h().count(0), 4);
+    same("rules", d.h().activate(), 8);
+    same("modules stay", d.h().count(0), 4);
+    same("drop", d.h().drop(), 4);
+    same("drop again", d.h().drop(), 0);
+    same("rules of the active bundle stay", d.h().count(1), 8);
+    same("activate nothing", d.h().activate(), 0);
+    same("no rules then", d.h().count(1), 0);
   }
 
   public static void main(String[] args) {
@@ -448,7 +331,6 @@ public final class PolicyHouseTexts {
     rules();
     queries();
     draft();
-    if (wrong > 0) System.exit(1);
-    System.out.println("texts: all answers are as due");
+    Desk.end("texts");
   }
 }
