@@ -169,22 +169,15 @@ public final class PolicyHouseFuel extends Sheet {
       "data", "json.patch({}, [{\"op\": \"add\", \"path\": \"\", \"value\": {}}])", "every x in data.a { true }", "not false"};
     String head = "n := numbers.range(1, 500); ";
     for (String last : lasts) {
-      d = new Desk();
-      d.data("{\"a\":[1,2,3]}");
-      d.mods("package p f(x) := x");
+      world("{\"a\":[1,2,3]}", null, "package p f(x) := x");
       d.number(head + last);
       int base = d.h().about(2);
       int more = 40000 - base;
-      // Each WAY of data.a[_] and of some x in data.a has what is behind it, so they stand last.
       String q = head + burn(more);
-      d = new Desk();
-      d.data("{\"a\":[1,2,3]}");
-      d.mods("package p f(x) := x");
+      world("{\"a\":[1,2,3]}", null, "package p f(x) := x");
       same("all FUEL, at last " + last, d.number(q + last).matches("[13]"), true);
       same("its FUEL", d.h().about(2) + " " + d.h().about(0), "40000 0");
-      d = new Desk();
-      d.data("{\"a\":[1,2,3]}");
-      d.mods("package p f(x) := x");
+      world("{\"a\":[1,2,3]}", null, "package p f(x) := x");
       same("one more, at last " + last, d.number(head + "true; " + burn(more) + last), "-104");
       same("its FUEL", d.h().about(2) + " " + d.h().about(0) + " " + d.h().about(1) + " " + d.h().about(3), "40000 4 -1 0");
       same("covered", d.h().covered(-1) + " " + d.h().covered(0), "-1 -1");
