@@ -248,6 +248,10 @@ public final class PolicyHouseCalls extends Sheet {
         sprintf("%", []) => none
         sprintf("a%", [1]) => none
         sprintf("%q", [1]) => none
+        sprintf("%q", ["a"]) => none
+        sprintf("%S", ["a"]) => none
+        sprintf("% s", ["a"]) => none
+        sprintf("%\\u0000", ["a"]) => none
         sprintf("%D", [1]) => none
         sprintf("% d", [1]) => none
         sprintf("%5d", [1]) => none
@@ -414,7 +418,7 @@ public final class PolicyHouseCalls extends Sheet {
       {"{\"a\": {\"b\": 1}}", "move </a/b", "1"}, {"{\"a\": 1, \"ab\": {}}", "move /ab/c</a", "{\"ab\":{\"c\":1}}"}, {"{\"a\": 1}", "move /b</c", "none"},
       {"{\"a\": 1, \"b\": 2}", "move /b</a", "{\"b\":1}"}, {"[1, 2, 3]", "move /0</2", "[3,1,2]"}, {"[1, 2, 3]", "move /2</0", "[2,3,1]"}, {"[1, 2, 3]", "move /3</0", "none"},
       {"[1, 2, 3]", "move /-</0", "[2,3,1]"}, {"[1, 2, 3]", "move /0</-", "none"}, {"[1, 2, 3]", "move /1</1", "[1,2,3]"}, {"[[1], [2]]", "move /0/0</1", "[[[2],1]]"},
-      {"[[1], [2]]", "move /1/0</0", "none"}, {"[[1], [2], []]", "move /1/0</0", "[[2],[[1]]]"}, {"[{\"a\": 5}, 6]", "move /0/b</0/a", "[{\"b\":5},6]"},
+      {"[[1], [2]]", "move /1/0</0", "none"}, {"[[1], [2]]", "move /0/0</0", "none"}, {"[[1], [2]]", "move /0/-</0", "none"}, {"[[[1]], [2]]", "move /0/0/0</0/0", "none"}, {"[[1], [2], []]", "move /1/0</0", "[[2],[[1]]]"}, {"[{\"a\": 5}, 6]", "move /0/b</0/a", "[{\"b\":5},6]"},
       {"{\"a\": 1}", "copy /b</a", "{\"a\":1,\"b\":1}"}, {"{\"a\": 1}", "copy /a/b</a", "none"}, {"{\"a\": {}}", "copy /a/b</a", "{\"a\":{\"b\":{}}}"}, {"{\"a\": 1}", "copy /b<", "{\"a\":1,\"b\":{\"a\":1}}"},
       {"{\"a\": 1}", "copy </a", "1"}, {"{\"a\": 1}", "copy /b</c", "none"}, {"[1, 2]", "copy /0</1", "[2,1,2]"}, {"[1, 2]", "copy /-</0", "[1,2,1]"}, {"[1, 2]", "copy /0</-", "none"},
       {"[1, 2]", "copy /0</2", "none"}, {"{\"a\": 1}", "copy /b<a", "none"},
@@ -448,6 +452,15 @@ public final class PolicyHouseCalls extends Sheet {
         json.patch({"a": 1}, [{"op": "copy", "path": "/b", "from": "/a", "value": 7}]) => {"a":1,"b":1}
         """);
     is("json.patch({}, [{\"op\": \"remove\", \"path\": \"" + "/a".repeat(61) + "\"}])", "none");
+    // Places of more digits than one, and signs that are no digits.
+    String[][] places = {{"0", "0"}, {"9", "9"}, {"10", "10"}, {"11", "11"}, {"49", "49"}, {"59", "59"}, {"60", "none"}, {"99", "none"}, {"010", "none"}, {"a", "none"}, {":", "none"}, {";", "none"},
+      {"1+", "none"}, {"1-", "none"}, {"1.", "none"}, {"5/", "none"}, {"1a", "none"}, {"0a", "none"}, {"-", "none"}, {"", "none"}, {"4294967306", "none"}, {"000001", "none"}, {"1000000", "none"}, {"10000000", "none"}};
+    for (String[] p : places) {
+      String due = p[1].equals("none") ? "none" : "\"x\"";
+      is("object.get({\"r\": json.patch(numbers.range(0, 59), [{\"op\": \"replace\", \"path\": \"/" + p[0] + "\", \"value\": \"x\"}])}, [\"r\", " + (due.equals("none") ? "0" : p[1]) + "], 0)", due);
+    }
+    is("count(json.patch(numbers.range(0, 59), [{\"op\": \"add\", \"path\": \"/60\", \"value\": 1}, {\"op\": \"remove\", \"path\": \"/60\"}, {\"op\": \"remove\", \"path\": \"/59\"}]))", "59");
+    is("json.patch(numbers.range(0, 59), [{\"op\": \"add\", \"path\": \"/61\", \"value\": 1}])", "none");
   }
 
   /** "add /a 1, remove /b, move /to</from" as the array of operations. */
@@ -490,6 +503,16 @@ public final class PolicyHouseCalls extends Sheet {
         base64.decode("YWJj\\n") => none
         base64.decode("YWJ\\u00e9") => none
         base64.decode("YQ=Q") => none
+        hex.encode(base64.decode("ABCDEFGHIJKLMNOPQRSTUVWXYZabcdefghijklmnopqrstuvwxyz0123456789+/")) => "00108310518720928b30d38f41149351559761969b71d79f8218a39259a7a29aabb2dbafc31cb3d35db7e39ebbf3dfbf"
+        base64.encode(hex.decode("00108310518720928b30d38f41149351559761969b71d79f8218a39259a7a29aabb2dbafc31cb3d35db7e39ebbf3dfbf")) => "ABCDEFGHIJKLMNOPQRSTUVWXYZabcdefghijklmnopqrstuvwxyz0123456789+/"
+        base64.decode("YW@j") => none
+        base64.decode("YW[j") => none
+        base64.decode("YW`j") => none
+        base64.decode("YW{j") => none
+        base64.decode("YW:j") => none
+        base64.decode("YW.j") => none
+        base64.decode("YW*j") => none
+        base64.decode("YW,j") => none
         -- 53 hex.encode s (small), 54 hex.decode s: great letters, too, none of an odd number
         hex.encode("") => ""
         hex.encode("\\u0000\\u000fz\\u00ff") => "000f7aff"
@@ -541,12 +564,114 @@ public final class PolicyHouseCalls extends Sheet {
         """);
   }
 
+  /** A text's end is its end, whatever stands behind it in another one. */
+  private static void ends() {
+    values("""
+        [startswith("zb", "zb4"), "abc", "zb"] => [false,"abc","zb"]
+        [strings.includes("zc", "zc4"), "abc"] => [false,"abc"]
+        [indexof("zd", "d4a"), "abc"] => [-1,"abc"]
+        [strings.count("ze", "e4"), "abc"] => [0,"abc"]
+        [replace("zf", "f4", ""), "abc"] => ["zf","abc"]
+        [split("zg", "g4"), "abc"] => [["zg"],"abc"]
+        [trim_prefix("zh", "zh4"), "abc"] => ["zh","abc"]
+        [endswith("i", "zi"), trim_suffix("j", "zj")] => [false,"j"]
+        [base64.decode("YWJ"), "abc"] => none
+        [hex.decode("41f"), "abc"] => none
+        [urlquery.decode("w%4"), "abc"] => none
+        [urlquery.decode("w%"), "abc"] => none
+        [to_number("-"), "1", "abc"] => none
+        [to_number("1."), "123", "abc"] => none
+        [sprintf("y%", [1]), "abc"] => none
+        [json.unmarshal("[1"), "abc", "]"] => none
+        [json.unmarshal("tru"), "e"] => none
+        [json.unmarshal("\\"\\\\u00"), "4a1"] => none
+        [regex.match("a{2", "aa"), "}"] => none
+        [regex.match("[a", "a"), "]"] => none
+        [glob.match("[b", [], "b"), "]"] => none
+        [glob.match("q\\\\", [], "q"), "abc"] => none
+        [units.parse_bytes("3"), "K"] => [3,"K"]
+        [semver.is_valid("1.0.0-"), "abc"] => [false,"abc"]
+        [net.cidr_contains("1.2.3.4/", "1.2.3.4"), "abc"] => none
+        """);
+    // Many strings, each of which is itself alone.
+    StringBuilder s = new StringBuilder();
+    for (char a = 'a'; a <= 'z'; a++) {
+      for (char b = 'a'; b <= 'z'; b++) s.append('"').append(a).append(b).append("\",");
+    }
+    is("count({" + s + "\"zz\"})", "676");
+    is("count({" + s.toString().replace("\",", "x\",") + "\"zzx\"})", "676");
+  }
+
+  /** What is made of an operand that is TOO GREAT (a with makes such a one) is TOO GREAT itself, or has its value. */
+  private static void great() {
+    // data.k has the WEIGHT 4001: 1 + (2 + 3991) + (2 + 5).
+    world("{\"k\":{\"l\":\"" + "x".repeat(3990) + "\"}}", null);
+    each("""
+        count(data.k) => 2
+        is_object(data.k) => true
+        type_name(data.k) => "object"
+        data.k.m => "abcd"
+        [data.k] => great
+        {1: data.k} => great
+        object.keys(data.k) => {"l","m"}
+        object.filter(data.k, ["l"]) => fits
+        object.filter(data.k, {"m"}) => {"m":"abcd"}
+        object.filter(data.k, []) => {}
+        object.filter(data.k, data.k) => great
+        object.remove(data.k, ["l"]) => {"m":"abcd"}
+        object.remove(data.k, {"m": 1}) => fits
+        object.remove(data.k, []) => great
+        object.union(data.k, {}) => great
+        object.union({}, data.k) => great
+        object.union({"k": 1}, {"k": data.k}) => great
+        object.union(data.k, {"l": 1}) => {"l":1,"m":"abcd"}
+        object.get(data.k, "m", 0) => "abcd"
+        object.get(data.k, ["l", 1], 0) => 0
+        object.get(data.k, [], 0) => great
+        object.get({}, 1, data.k) => great
+        json.marshal(data.k) => great
+        walk(data.k) => great
+        (data.k == data.k) => true
+        (data.k < {}) => false
+        ("abcd" in data.k) => true
+        (2 in data.k) => false
+        to_number(data.k) => none
+        abs(data.k) => none
+        json.patch(data.k, []) => great
+        json.patch(data.k, [{"op": "remove", "path": "/l"}]) => {"m":"abcd"}
+        json.patch(data.k, [{"op": "remove", "path": "/m"}]) => fits
+        json.patch(data.k, [{"op": "remove", "path": "/z"}]) => none
+        json.patch(data.k, [{"op": "replace", "path": "", "value": 5}]) => 5
+        json.patch(data.k, [{"op": "test", "path": "/m", "value": "abcd"}, {"op": "remove", "path": "/l"}]) => great
+        json.patch(data.k, [{"op": "add", "path": "/z", "value": 1}, {"op": "remove", "path": "/l"}]) => great
+        """, line -> {
+      int at = line.lastIndexOf(" => ");
+      String q = "x := " + line.substring(0, at) + " with data.k.m as \"abcd\"";
+      String due = line.substring(at + 4);
+      ready(q.length(), due.length() + 20);
+      if (due.equals("fits")) same(q, d.number(q), "1");
+      else if (due.equals("none")) same(q, d.ask(q, true), "-103");
+      else same(q, d.ask(q), due.equals("great") ? "-102" : "[" + due + "]");
+    });
+    world("{\"k\":{\"" + "x".repeat(3990) + "\":1}}", null);
+    asks("""
+        count(object.keys(data.k)) == 2 with data.k.abcdefg as 1 => []
+        count(object.keys(data.k)) == 2 with data.k.abcdefgh as 1 => -102
+        count(object.filter(data.k, ["abcdefgh"])) == 1 with data.k.abcdefgh as 1 => []
+        count([1 | some k, _ in data.k]) == 2 with data.k.abcdefgh as 1 => []
+        count([1 | data.k[_]]) == 2 with data.k.abcdefgh as 1 => []
+        """);
+    world(null, null);
+  }
+
   public static void main(String[] args) {
     numbers();
     strings();
     rows();
     patches();
     codes();
+    ends();
+    great();
     Desk.end("calls");
   }
 }

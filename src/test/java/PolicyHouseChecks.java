@@ -59,6 +59,11 @@ public final class PolicyHouseChecks extends Sheet {
         1 default a := 1 ¿default a := 1
         1 a := 0 default a := 1 a := 2 ¿default a := 3
         1 package p default a := 1 || package p ¿default a := 1
+        1 a := 0 a := 1 default a := 2 a := 3 ¿default a := 4
+        1 b := 1 default b := 1 a := 0 a := 1 default a := 2 ¿default a := 3
+        0 a := 0 b := 1 a := 1 default b := 2 a := 2 default a := 3
+        1 package p a := 0 || package p b := 1 default a := 1 || package q default a := 1 || package p a := 2 ¿default a := 2
+        0 package p a := 0 || package q default a := 1 || package p default a := 2
         1 a contains 1 ¿default a := 1
         1 a(x) := 1 ¿default a := 1
         1 a[1] := 1 ¿default a := 1
@@ -620,6 +625,9 @@ public final class PolicyHouseChecks extends Sheet {
         0 a if { some x; input[x] = x }
         0 a if { some x; x = input[x] }
         8 a if { some x; ¿[x] = [[x]] }
+        8 a if { some x, y; ¿[input[x], y] = [x, 1] }
+        8 a if { some x, y; ¿[input[x], y] = x }
+        8 a if { some x, y; ¿[input[x], y] = [1, x] }
         8 a if { ¿_ = _ }
         8 a if { ¿[_] = [_] }
         0 a if { [_] = [1] }
@@ -635,6 +643,11 @@ public final class PolicyHouseChecks extends Sheet {
         0 a if { some x; [x, x + 1] = input }
         8 a if { some x; ¿[x + 1, x] = input }
         0 a if { some x; {input.y[x]: x} = input }
+        0 a if { some x, y; {input.y[x]: y} = input }
+        0 a if { some x, y; input = {input.y[x]: y} }
+        0 a if { some x, y; [input[x], y] = input }
+        8 a if { some x, y; ¿{input.y[x]: y + 1} = input }
+        8 a if { some x, y; ¿[input[x] + y, 1] = input }
         0 a if { some x; {1: x, x: 2} = input }
         8 a if { some x; ¿{x: 2, 1: x} = input }
         0 a if { some x; [input[x]] = [1] }
@@ -703,6 +716,10 @@ public final class PolicyHouseChecks extends Sheet {
     order("every e in [x] { e == y }; x := 1; true; y := 2", "1 2 3 0");
     order("true with input as x; x := 1", "1 0");
     order("1", "0");
+    // What is not READY makes nothing KNOWN.
+    order("some x, y; input[x] == y; z := x; y = 1", "0 3 1 2");
+    order("some x, y; [input[x], y] = [x, 1]; z := y; x = 2; y = 3", "0 3 1 2 4");
+    order("some x, y; y == input[x]; z := x; input[x] == y; y = 1", "0 4 1 2 3");
     order("[x] = [y]; [y] = [1]; some x; some y", "1 0 2 3");
   }
 

@@ -81,6 +81,12 @@ public final class PolicyHouseFuel extends Sheet {
         x := 1 + data.q => @ 1
         x := 1000000000000 + 1 => @ 1+2
         1 + 1 + 1 => [] @ 1+3+3+1
+        x := {1} & 1 + 2 => @ 1+2+3+3
+        x := {1} & 1 - 2 => @ 1+2+3+3
+        x := 1 + 2 & {1} => @ 1+3+2+3
+        x := 1 + 2 * "a" => @ 1+3
+        x := "a" + 2 * 3 => @ 1+3+3
+        x := ({1} | {2} & 3) => @ 1+2+2+3
         -- each CALL of a BUILT-IN takes the WEIGHTS of its operands (when all are there), and its value
         count(data.a) => [] @ 1+4+1+1
         count("abc") => [] @ 1+4+1+1

@@ -976,6 +976,24 @@ public final class PolicyHouseModules extends Sheet {
         """);
   }
 
+  /** A text that is WRONG leaves nothing behind for the next one; texts of 6000 bytes have room. */
+  private static void behind() {
+    for (String s : new String[] {"x := [[[[[[", "x := [[[[[[[", "f(f(f(", "x := {{{"}) {
+      wrongQuery(s, s.length() - (s.endsWith("[[[[[[[") ? 1 : 0));
+      query("x := [[[[[[1]]]]]]");
+      wrongRule("a := " + s.substring(s.indexOf(s.endsWith("(") ? "f" : s.endsWith("{") ? "{" : "[")), s.endsWith("[[[[[[[") ? 11 : s.endsWith("[") ? 11 : s.endsWith("(") ? 11 : 8);
+      rule("a := [[[[[[1]]]]]]");
+    }
+    d = new Desk();
+    same("a module of literals", d.module("package p\na if {" + "b;".repeat(2991) + "b}"), 1);
+    d = new Desk();
+    same("a module of terms", d.module("package p\na := [" + "1,".repeat(2990) + "1]"), 1);
+    d = new Desk();
+    same("a module of SIGNS", d.module("package p\na := (" + "1+".repeat(2990) + "1)"), 1);
+    d = new Desk();
+    same("a QUERY of COMPREHENSIONS", d.number("[" + "[1|1],".repeat(999) + "1]"), "1");
+  }
+
   public static void main(String[] args) {
     names();
     keywords();
@@ -988,6 +1006,7 @@ public final class PolicyHouseModules extends Sheet {
     expressions();
     terms();
     brackets();
+    behind();
     Desk.end("modules");
   }
 }

@@ -130,6 +130,12 @@ public final class PolicyHousePatterns extends Sheet {
         ^[\\W\\d]$ : 5 - : a _
         ^[^\\W]$ : a 5 _ : -
         ^[x\\d\\-y]$ : x 5 - y : z
+        -- one way is not left for another one
+        ^(a(x|y)|ab)$ : ax ay ab : a axb aab
+        ^(a(x|y|z)|ab|(a|b)c)$ : ab ac bc az : bb
+        ^(a|ab)(c|bcd)$ : ac abc abcd abbcd : abd
+        (a|ab|abc|abcd)e : abcde abce abe ae : abcd
+        ^(a*|b)*c : aabbac c : aabb
         -- somewhere
         b : abc : ac
         b+c : abbc : ab
@@ -189,6 +195,7 @@ public final class PolicyHousePatterns extends Sheet {
     is("regex.match(`((a{20}){20}){20}`, \"\")", "none");
     is("regex.match(`(((((a{20}){20}){20}){20}){20}){20}`, \"\")", "none");
     is("regex.match(`(((((a{20}){20}){20}){20}){20}){0}`, \"\")", "true");
+    for (String[] p : new String[][] {{"ac", "true"}, {"bd", "true"}, {"aa", "false"}, {"cc", "false"}, {"ca", "false"}}) is("regex.match(`(" + ".".repeat(2200) + "){0}[ab][cd]`, \"" + p[0] + "\")", p[1]);
     is("regex.match(`(((((a{20}){20}){20}){20}){20}){0}" + "b".repeat(300) + "`, \"\")", "false");
   }
 
@@ -311,7 +318,8 @@ public final class PolicyHousePatterns extends Sheet {
       {"10.0.0.0/8", "10.255.255.255", "true"}, {"10.0.0.0/8", "11.0.0.0", "false"}, {"10.0.0.0/8", "9.255.255.255", "false"}, {"10.0.0.0/8", "10.1.0.0/7", "false"},
       {"10.0.0.0/8", "10.1.0.0/9", "true"}, {"10.9.9.9/8", "10.1.2.3/30", "true"}, {"1.2.3.4/32", "1.2.3.4/32", "true"}, {"1.2.3.4/32", "1.2.3.4", "true"}, {"1.2.3.4/31", "1.2.3.5", "true"},
       {"1.2.3.4/32", "1.2.3.5", "false"}, {"1.2.3.4/31", "1.2.3.6", "false"}, {"128.0.0.0/1", "255.0.0.1", "true"}, {"128.0.0.0/1", "127.255.255.255", "false"}, {"0.0.0.0/1", "128.0.0.0", "false"},
-      {"1.2.3.128/25", "1.2.3.255", "true"}, {"1.2.3.128/25", "1.2.3.127", "false"}, {"1.2.3.4/24", "1.2.3.4/23", "false"}, {"1.2.3.4/0", "9.9.9.9/0", "true"}};
+      {"1.2.3.128/25", "1.2.3.255", "true"}, {"1.2.3.128/25", "1.2.3.127", "false"}, {"1.2.3.4/24", "1.2.3.4/23", "false"}, {"1.2.3.4/0", "9.9.9.9/0", "true"},
+      {"1.2.3.4/31", "1.2.3.5/31", "true"}, {"128.0.0.0/1", "128.0.0.0/1", "true"}, {"1.2.3.4/25", "1.2.3.4/25", "true"}, {"1.2.3.4/17", "1.2.3.4/16", "false"}, {"1.2.3.4/17", "1.2.3.4/17", "true"}};
     for (String[] n : nets) is("net.cidr_contains(\"" + n[0] + "\", \"" + n[1] + "\")", n[2]);
     // a.b.c.d/n (0 .. 255, 0 .. 32, no 0 ahead), and such a one or an address; none of strings that are none such
     for (String s : new String[] {"", "1", "1.2.3", "1.2.3/8", "1.2.3.4.5/8", "1.2.3.256/8", "256.2.3.4/8", "1.2.3.1000/8", "1.2.3.4294967296/8", "01.2.3.4/8", "1.2.3.04/8", "1.2.3.00/8", "1.2.3.4/33", "1.2.3.4/00",

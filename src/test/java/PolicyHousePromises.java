@@ -242,7 +242,19 @@ public final class PolicyHousePromises extends Sheet {
     same("20 deep", d.patch(within + "[".repeat(8) + "]".repeat(8) + "}]"), 3 + 11 + 8);
     same("21 deep", d.patch("[{\"op\":\"move\",\"from\":\"/a\",\"path\":\"/b\"},{\"op\":\"add\",\"path\":\"/c\",\"value\":[]},{\"op\":\"move\",\"from\":\"/b\",\"path\":\"/c/0\"}]"), PolicyHouse.FULL);
     same("nothing happens", d.h().count(3), 22);
-    // INPUT: any value; an empty tape: there is none.
+    // As many operations as a text has room for, on DATA that is heavy: one after the other.
+    d = new Desk();
+    d.data("{\"e\":0,\"h\":\"" + "x".repeat(1000) + "\"}");
+    StringBuilder many = new StringBuilder("[");
+    for (int i = 0; i < 60; i++) many.append(i > 0 ? "," : "").append("{\"op\":\"").append(i % 2 == 0 ? "replace" : "add").append("\",\"path\":\"/e\",\"value\":").append(i).append("}");
+    same("60 operations", d.patch(many + "]"), 1 + 2 + 1 + 2 + 1001);
+    same("the last one", d.ask("x := data.e"), "[59]");
+    same("60 operations and one that can't be done", d.patch(many + ",{\"op\":\"test\",\"path\":\"/e\",\"value\":58}]"), PolicyHouse.FULL);
+  }
+
+  /** Promise 11: "it may be any value"; "an empty tape: there is none". */
+  private static void inputs() {
+    d = new Desk();
     String[][] inputs = {{"null", "1"}, {"false", "1"}, {"-1", "1"}, {"\"\"", "1"}, {"[]", "1"}, {"{}", "1"}, {"{\"a\":[1]}", "5"}};
     for (String[] in : inputs) {
       same("INPUT " + in[0], d.input(in[0]) + " " + d.h().count(4), in[1] + " " + in[1]);
@@ -377,6 +389,51 @@ public final class PolicyHousePromises extends Sheet {
     same("plain again", d.h().run(strict, false) + " " + about(), "1 0 -1 3 1");
   }
 
+  /** What a QUERY, or the latest RUN, keeps stays while DATA and INPUT are others: all at once. */
+  private static void kept() {
+    d = new Desk();
+    for (int q = 0; q < 4; q++) {
+      d.data("{\"q\":[" + q + "]}");
+      same("prepare", d.prepare("x := data.q"), q);
+    }
+    for (int i = 0; i < 4; i++) {
+      d.data("{\"q\":[" + (10 + i) + "]}");
+      d.input("[" + i + "]");
+    }
+    for (int q = 0; q < 4; q++) same("DATA of QUERY " + q, runs(q), "[[" + q + "]]");
+    // The latest RUN's DATA and INPUT are of a QUERY that is no more.
+    d.data("{\"r\":[\"run\"]}");
+    d.input("[\"in\"]");
+    d.h().release(3);
+    same("prepare", d.prepare("x := [data.r, input]"), 3);
+    same("run", d.h().run(3, false), 1);
+    d.h().release(3);
+    for (int i = 0; i < 3; i++) {
+      d.data("{\"s\":[" + i + ",\"data\"]}");
+      d.input("[" + i + ",\"input\"]");
+      same("its RESULT", d.out(d.h().result(0, 0)), "[[[\"run\"],[\"in\"]]]");
+    }
+    same("DATA", d.h().count(3) + " INPUT " + d.h().count(4), "10 INPUT 8");
+    same("a patch", d.patch("[{\"op\":\"add\",\"path\":\"/s/0\",\"value\":[5]},{\"op\":\"add\",\"path\":\"/s/0\",\"value\":{}},{\"op\":\"remove\",\"path\":\"/s/2\"}]"), 12);
+    same("its RESULT", d.out(d.h().result(0, 0)), "[[[\"run\"],[\"in\"]]]");
+    same("INPUT and DATA", d.ask("x := [data.s, input]"), "[[[{},[5],\"data\"],[2,\"input\"]]]");
+    for (int q = 0; q < 3; q++) same("DATA of QUERY " + q, runs(q), "[[" + q + "]]");
+    // A bundle for which the QUERY is longer.
+    d = new Desk();
+    d.mods("package p a := 1");
+    d.prepare("x := data.p.a with input as 1 with data.k as 2; y := [z | z := data.p.a with input as 3]");
+    d.mods("package p a := 1 b := 2 " + "c contains 1 ".repeat(3), "package q " + "r if { 1 } ".repeat(2) + names(70));
+    same("renew to 75 rules", d.h().renew(0) + " " + d.h().count(1) + " " + runs(0), "1 74 [1,[1]]");
+    d.mods("package p a := 5");
+    same("renew to one", d.h().renew(0) + " " + runs(0), "1 [5,[5]]");
+  }
+
+  private static String names(int n) {
+    StringBuilder s = new StringBuilder();
+    for (int i = 0; i < n; i++) s.append("n").append(i).append(":=1 ");
+    return s.toString();
+  }
+
   private static String about() {
     return d.h().about(0) + " " + d.h().about(1) + " " + d.h().about(2) + " " + d.h().about(3);
   }
@@ -435,6 +492,10 @@ public final class PolicyHousePromises extends Sheet {
       same("data", d.data("{\"k" + i + "\":[" + i + "]}"), 1 + 1 + ("k" + i).length() + 2);
       same("input", d.h().input() + " " + d.h().count(3), "0 " + (4 + ("k" + i).length()));
     }
+    // What a RUN makes is no more in the next one.
+    d = new Desk();
+    d.prepare("x := [1 | some z in numbers.range(1, 500); numbers.range(1, z % 7 + 10)]");
+    for (int i = 0; i < 240; i++) same("run " + i, d.h().run(0, false), 1);
     d = new Desk();
     d.prepare("x := numbers.range(1, 500); y := [1 | x[_]; x[_]]");
     d.prepare("x := numbers.range(1, 500)");
@@ -453,8 +514,10 @@ public final class PolicyHousePromises extends Sheet {
     emptied();
     drafts();
     documents();
+    inputs();
     queries();
     runs();
+    kept();
     longest();
     calls();
     Desk.end("promises");

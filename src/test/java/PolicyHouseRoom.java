@@ -71,10 +71,76 @@ public final class PolicyHouseRoom {
     Desk.same("a short one again", d.out(d.h().document(0)), "none");
   }
 
+  /** STEPS by _ go through the keys of THE TREE, whose WEIGHTS may be more than 4000: nobody makes a set of them. */
+  private static void keys() {
+    d = new Desk();
+    d.mods("package p\naaaaaaaaaaaaaaaa := 1 b := 2");
+    Desk.same("data", d.data("{\"p\":{\"" + "x".repeat(3985) + "\":3}}"), 1 + 2 + 1 + 3986 + 1);
+    Desk.same("keys", d.ask("count([1 | some k; data.p[k]]) == 3"), "[]");
+    Desk.same("values", d.ask("x := [y | y := data.p[_]]"), "[[1,2,3]]");
+    Desk.same("an object of them", d.ask("data.p"), "-102");
+  }
+
+  /** A DOCUMENT whose PRINT is a little less and a little more than 100000 bytes: none is cut. */
+  private static void prints() {
+    for (int more = 0; more <= 10; more++) {
+      if (more == 5) continue;
+      d = new Desk();
+      String last = "d" + "x".repeat(1 + more);
+      d.mods("package p\nb := x if { x := data.d" + four("abc") + " with data.d." + last + " as data.d }\n");
+      String row = "[" + "-123456789012.123456,".repeat(188) + "-123456789012.123456]";
+      Desk.same("data", d.data("{\"d\":{\"n\":" + row + ",\"s\":\"" + "y".repeat(112) + "\"}}"), 1 + 2 + 1 + 2 + 190 + 2 + 113);
+      for (int i = 0; i < 4; i++) d.patch("[{\"op\":\"copy\",\"from\":\"/d/n\",\"path\":\"/d/" + (char) ('A' + i) + "\"}]");
+      Desk.same("a RUN", d.ask("data.p.b"), "[]");
+      int own = 2 + 5 * (4 + row.length()) + 6 + 112 + 5;
+      int due = 5 * own + 4 * 6 + more;
+      Desk.same("the test's own length", due, 99999 + more);
+      Desk.same("DOCUMENT", d.h().document(0), due);
+      Desk.same("OUTPUT", d.h().count(6), due);
+      Desk.same("its last bytes", "" + (char) d.h().output(due - 3) + (char) d.h().output(due - 2) + (char) d.h().output(due - 1) + d.h().output(due), "y\"}-1");
+    }
+  }
+
+  /** "At most 100 RULES", four modules: 400 RULES OF THE BUNDLE, each of which reads the one 133 behind it. */
+  private static void rules() {
+    String[] texts = new String[4];
+    for (int m = 0; m < 4; m++) {
+      StringBuilder s = new StringBuilder("package " + "abcd".charAt(m) + "\n");
+      for (int k = 0; k < 100; k++) {
+        int next = 100 * m + k + 133;
+        String value = next < 400 ? "[data." + "abcd".charAt(next / 100) + ".r" + next % 100 + "]" : "" + (100 * m + k);
+        s.append(k == 98 && m == 3 ? "default " : "").append("r").append(k).append(":=").append(value).append(k == 99 && m == 3 ? " if {1;2}" : "").append("\n");
+      }
+      texts[m] = s.toString();
+    }
+    d = new Desk();
+    Desk.same("rules", d.mods(texts), "400");
+    int[][] depends = {{0, 3}, {1, 2}, {15, 2}, {16, 2}, {31, 2}, {32, 2}, {133, 2}, {134, 1}, {266, 1}, {267, 0}, {399, 0}};
+    for (int[] r : depends) Desk.same("on how many " + r[0] + " DEPENDS", d.h().rule(r[0], 4), r[1]);
+    Desk.same("MODULE and PLACE", d.h().rule(399, 1) + " " + d.h().rule(399, 2), "3 " + texts[3].indexOf("r99"));
+    Desk.same("x := data.a.r0", d.ask("x := data.a.r0"), "[[[[399]]]]");
+    Desk.same("DOCUMENTS", d.out(d.h().document(0)) + d.out(d.h().document(266)) + d.out(d.h().document(399)) + d.h().document(1) + d.h().document(400), "[[[399]]][399]399-1-1");
+    Desk.same("covered", d.h().covered(399) + " " + d.h().covered(398) + " " + d.h().covered(400), "2 0 -1");
+    Desk.same("x := data.c.r65", d.ask("x := [data.a.r31, data.a.r32, data.c.r65, data.d.r98]"), "[[[[297]],[[298]],[398],398]]");
+    Desk.same("with", d.ask("x := [data.a.r0, data.a.r1] with data.d.r99 as 7 with data.b.r34 as 8"), "[[[[[7]]],[8]]]");
+    Desk.same("all of them", d.ask("x := [count(data.a), count(data.d), count(data)]"), "[[100,100,4]]");
+    d = new Desk();
+    StringBuilder s = new StringBuilder("package w\n");
+    for (int i = 0; i < 40; i++) s.append("n").append(i).append(" := 1 ");
+    Desk.same("rules", d.mods(s + "a if { 1 with input as 1 } b if { a with input as 1 } c if { b with input as 1 } e if { data.w.c }"), "44");
+    Desk.same("three withs", d.ask("data.w.c"), "[]");
+    Desk.same("four withs", d.ask("data.w.c with input as 1"), "7@0");
+    Desk.same("four withs", d.ask("true; data.w.e with input as 1"), "7@6");
+    Desk.same("three withs", d.ask("data.w.b with input as 1"), "[]");
+  }
+
   public static void main(String[] args) {
     defaults();
     empties();
     greats();
+    keys();
+    prints();
+    rules();
     Desk.end("room");
   }
 }

@@ -61,6 +61,22 @@ public final class PolicyHouseScopes extends Sheet {
         x := data.a[null] =>
         x := data[0] =>
         x := data.e[{}] =>
+        -- what was made is a value as any other
+        x := data.a; y := x.q => [{"b":AB,"q":1},1]
+        x := data.a; y := x["b"].z => [{"b":AB,"q":1},9]
+        x := data.c; y := data.conf.k[0] => [{"d":{"v":{"w":[2]}}},7]
+        x := data.e; y := input => @ 1+1+1
+        x := data.e; y := input with input as 6 => [{},6]
+        x := data.e; y := input.k with input as {"k": [6]} => [{},[6]]
+        x := data.a; some k; x.b[k] == 9 => [{"b":AB,"q":1},"z"]
+        -- with below the name of a package
+        x := data with data.a.q as 7 => [{"a":{"b":AB,"q":7},"c":{"d":{"v":{"w":[2]}}},"conf":{"k":[7,{"l":8}]},"e":{}}]
+        x := data.a with data.a.q as 7 with data.a.r as 8 => [{"b":AB,"q":7,"r":8}]
+        x := data.a.q with data.a.q as 7 => [7]
+        some k; data.a[k] with data.a.r as 7 => ["b"] ["q"] ["r"]
+        some k; data[k].k with data.e.k as 7 => ["conf"] ["e"]
+        x := data.c with data.c.k as 7 => [{"d":{"v":{"w":[2]}},"k":7}]
+        x := data.a.b with data.a.b.z as 7 with data.a.b.g as 8 => [{"g":8,"s":{1},"x":1,"z":7}]
         """.replace("AB", ab));
     world("{\"a\":1,\"b\":{\"c\":2}}", null);
     asks("""
@@ -145,6 +161,9 @@ public final class PolicyHouseScopes extends Sheet {
         x := data.t with data.t.b as 2 with data.t as 1 => [1]
         x := data.t with data.t.b as 2 with data.t.c as 3 => [{"b":2,"c":3}]
         x := data.t with data.t.b as 2 with data.t.b as 3 => [{"b":3}]
+        x := [data.s, data.t] with data.s as 1 with data.t.b as 2 with data.t.c as 3 => [[1,{"b":2,"c":3}]]
+        x := [data.s, data.t, data.o.q] with data.s as 1 with data.t.b as 2 with data.o.q as 3 with data.t.c as 4 => [[1,{"b":2,"c":4},3]]
+        x := [data.s, data.t] with data.t.b as 2 with data.s as 1 with data.s.k as 3 => [[{"k":3},{"b":2}]]
         x := data.t with data.t.b as 2 with data.t.b.c as 3 => [{"b":{"c":3}}]
         x := input with input as 1 with input.b as 2 => [{"b":2}]
         x := input with input.b as 2 with input as 1 => [1]
@@ -171,6 +190,11 @@ public final class PolicyHouseScopes extends Sheet {
         x := [y | y := input with input.b as 3] with input as {"a": 1} => [[{"a":1,"b":3}]]
         x := [[z, data.s] | z := [[y, data.s] | y := data.s with data.s as 3] with data.s as 2] with data.s as 1 => [[[[[3,2]],1]]]
         every v in [1, 2] { v == input.w with input.w as v; input.w == 5 } with input.w as 5 => []
+        x := [y | some v in [1, 2]; y := data.z.d with input.w as v] => [[{1:7},{2:7}]]
+        x := [[v, y] | some v in [1, 2]; y := data.z.d with input.w as v] => [[[1,{1:7}],[2,{2:7}]]]
+        -- three of them, with four TARGETS each
+        x := [y | y := [[z, data.a1, data.z.a] | z := [data.a1, data.a2, data.a3, data.a4, data.b1, data.b2, data.b3, data.b4, data.c1, data.c2, data.c3, data.c4, data.z.c] with data.c1 as 9 with data.c2 as 10 with data.c3 as 11 with data.c4 as 12] with data.b1 as 5 with data.b2 as 6 with data.b3 as 7 with data.b4 as 8] with data.a1 as 1 with data.a2 as 2 with data.a3 as 3 with data.a4 as 4 => [[[[[1,2,3,4,5,6,7,8,9,10,11,12,[2,7]],1,2]]]]
+        x := [y | y := [z | z := data with data.c1 as 9 with data.c2 as 10 with data.c3 as 11 with data.c4.k as 12] with data.b1 as 5 with data.b2 as 6 with data.b3 as 7 with data.b4 as 8] with data.a1 as 1 with data.a2 as 2 with data.a3 as 3 with data.c4.l as 4 => [[[{"a1":1,"a2":2,"a3":3,"b1":5,"b2":6,"b3":7,"b4":8,"c1":9,"c2":10,"c3":11,"c4":{"k":12,"l":4},"m":[3,4],"n":[1,2],"o":{"p":5,"q":{"r":6}},"s":7,"z":{"a":2,"b":7,"c":[2,7],"d":{2:7}}}]]]
         """);
     world(null, null);
   }
@@ -219,6 +243,12 @@ public final class PolicyHouseScopes extends Sheet {
     made("every y in [1, 2] { data.p.b with input as y } with data.p.b as 5", "none none none none none none", "0 0 0 0 0 0 0 3");
     // None that a with makes is the QUERY's own.
     made("data.p.a; data.p.b with input as 1; data.p.a", "1 none none none none none", "2 2 0 0 0 0 0 3");
+    // In the middle of what is gathered.
+    asks("""
+        x := [y | some z in [1, 2]; y := data.p.e with input.i as z] => [[{1},{2}]]
+        x := [y | some z in [1, 2]; y := [z, data.p.g] with input.i as z] => [[[1,[{2}]],[2,[{2}]]]]
+        x := {z: y | some z in [1, 2]; y := data.p.e with input.i as z} => [{1:{1},2:{2}}]
+        """);
     asks("""
         -- at most 3 LITERALS with with are looked at within one another
         x := [y | y := [z | z := input with input as 3] with input as 2] with input as 1 => [[[3]]]
@@ -228,6 +258,35 @@ public final class PolicyHouseScopes extends Sheet {
         x := [y | y := data.p.c with input as 2] with input as 1 => [[1]]
         x := 1 with input as [y | y := data.p.c with input as [z | z := 1 with input as 3]] => [1]
         every y in [1] { data.p.c with input as [z | z := data.p.c with input as 1] } => []
+        """);
+    world("{}", null, """
+        package w
+        f(x) := 1 if { 1 with input as 1 }
+        g(x) := 1 if { f(x) with input as 1 }
+        h(x) := 1 if { g(x) with input as 1 }
+        i(x) := 1 if { h(x) }
+        j := 1 if { 1 with input as i(1) }
+        """);
+    asks("""
+        -- by what its LITERALS read: FUNCTIONS, too; what EXPRESSIONS behind as read counts without it
+        data.w.g(1) with input as 1 => []
+        7 ¿data.w.h(1) with input as 1
+        7 true; ¿x := [1 | data.w.i(1) with input as 1]
+        data.w.h(1) => []
+        data.w.i(1) => []
+        data.w.j => []
+        7 ¿data.w.j with input as 1
+        true with input as data.w.i(1) => []
+        true with input as data.w.j => []
+        true with data.w.h as 1 => []
+        7 ¿data.w.h with input as 1
+        7 ¿data.w with input as 1
+        7 x := 1; ¿not data.w.h(1) with input as 1
+        7 x := 1; ¿some y in [data.w.h(1)] with input as 1
+        7 x := 1; ¿every y in [1] { data.w.h(1) } with input as 1
+        7 x := 1; ¿every y in [1] { data.w.h(1) with input as 1 }
+        7 x := 1; ¿y = data.w.h(1) with input as 1; some y
+        7 data.w.h(1); data.w.g(1) with input as 1; ¿data.w.h(2) with input as 1; data.w.h(3) with input as 1
         """);
     world(null, null);
   }

@@ -73,6 +73,17 @@ public final class PolicyHouseWays extends Sheet {
         some i; x := data.r[i][i] => [0,1]
         some i; data.a[i] == 20; x := data.a[i] => [1,20]
         x := [data.a[_] | true] => [[10,20,30]]
+        -- STEPS by EXPRESSIONS behind others
+        x := data.r[_][2 - 1] => [2]
+        x := data.r[_][0 + 0] => [1] [3]
+        some i; x := data.r[i][1 - 1] => [0,1] [1,3]
+        x := data.r[1 - 1][0 + 1] => [2]
+        x := data.r[count([1])][count([])] => [3]
+        x := data.r[_][count([data.a[_]]) - 1] => [1] [3]
+        x := data.r[data.z][data.z] => [1]
+        x := data[concat("", ["a"])][1 + 1] => [30]
+        x := data[_][1 + 0] => [20] [[3]]
+        some k; x := data[k][1 + 0][0 + 0] => ["r",3]
         """);
     world("{}", null);
     asks("""
@@ -186,6 +197,11 @@ public final class PolicyHouseWays extends Sheet {
         999999999999.999999 * 1.000001 => nothing
         999999.999999 * 999999.999999 => 999999999998
         3037000.49976 * 3037 => 9223370517.77112
+        4294967296 * 4294.967296 => nothing
+        -4294967296 * 4294.967296 => nothing
+        4294967296 * -4294.967297 => nothing
+        65536 * 281474976.710656 => nothing
+        4294967296.000001 * 4294.967296 => nothing
         0.5 * 0.000001 => 0.000001
         {1} * {2} => nothing
         "a" * 2 => nothing
@@ -206,6 +222,12 @@ public final class PolicyHouseWays extends Sheet {
         -500000 / 1000000000000 => -0.000001
         1000000 / 0.000001 => 1000000000000
         1000000.000001 / 0.000001 => nothing
+        1000000000000 / 0.000001 => nothing
+        288230376151.711744 / 0.000001 => nothing
+        -288230376151.711744 / 0.000001 => nothing
+        576460752303.423488 / 0.000002 => nothing
+        18446744073.709551 / 0.000001 => nothing
+        18446744073.709552 / 0.001 => nothing
         {1} / {1} => nothing
         -- % of two whole numbers, none by 0, with the first one's sign
         7 % 3 => 1
@@ -342,6 +364,14 @@ public final class PolicyHouseWays extends Sheet {
         every e, x in {5, 6} { e == x } => []
         every i, x in [5, 7] { x == i + 5 } =>
         every k, x in {"a": "a"} { k == x } => []
+        every i, x in [10, 20, 30] { data.a[i] == x } => [] @ 1+4+3*4+1
+        every i, x in [10, 20, 30] { data.a[i] == 10 } => @ 1+4+3*4
+        every i, x in [20, 20, 30] { data.a[i] == x } =>
+        every x in [0, 1] { data.a[x] == 10 } =>
+        every x in [1, 2] { some y; [x, y] = [1, 5] } =>
+        every x in [1, 1] { some y; [x, y] = [1, 5] } => []
+        every i, x in [5, 5] { some y; [i, x, y] = [0, 5, 6] } =>
+        every x in [0, 1] { y := [z | z := data.a[x]]; y == [10] } =>
         -- Another EXPRESSION: its WAYS whose values are not FALSE
         true => []
         null => []
@@ -398,6 +428,14 @@ public final class PolicyHouseWays extends Sheet {
         {1: x} := {"1": 2} =>
         {"k": {"l": x}, [1]: y} := {[1]: 5, "k": {"l": 6}} => [6,5]
         {1: 2} := {1: 2} => []
+        {1: x, 2: y, 2: z} := {1: 5, 2: 6} => [5,6,6]
+        {1: x, 2: y, 2: z} := {1: 5, 2: 6, 3: 7} =>
+        {1: x, 2: y, 3: z} := {1: 5, 2: 6} =>
+        some x, y; {data.r[0][x]: y} = {1: 5} => [0,5]
+        some x, y; {data.r[0][x]: y} = {2: 5} => [1,5]
+        some x, y; {data.r[0][x]: y} = {3: 5} =>
+        some x, y; [data.r[0][x], y] = [2, 7] => [1,7]
+        some x, y; [y, data.r[0][x]] = [7, 2] => [1,7]
         {1: 2} := {1: 3} =>
         k := "a"; some x; {k: x} = {"a": 5} => ["a",5]
         some x; {data.a[_]: x} = {20: 5} => [5]
@@ -541,6 +579,10 @@ public final class PolicyHouseWays extends Sheet {
         w[data.n[_]] := 2
         y := x if { x := data.n[_]; x == 3 } else := "none"
         default z := {1: 2, 1: 3}
+        default da := {2, {1}, set()}
+        default db := {{"k": {1}}: [{}], -1: `x`}
+        default dc := (([null, true, (false)]))
+        default dd := {1, 1.0}
         """);
     asks("""
         -- Of a complete rule: of each PART that is no default, by its BRANCHES in order, the first that has a value in some WAY
@@ -576,8 +618,9 @@ public final class PolicyHouseWays extends Sheet {
         x := data.p.w => [{1:2,2:2}]
         x := data.p.o[2] => [1]
         """);
-    String[] names = {"a", "b", "c", "d", "e", "f", "g", "h", "i", "j", "k", "l", "m", "n", "s", "t", "o", "u", "v", "w", "y", "z"};
-    String[] values = {"none", "2", "none", "1", "none", "\"d\"", "1", "none", "{\"k\":[1]}", "3", "2", "false", "true", "none", "{1,2,5}", "set()", "{1:1,2:1}", "{}", "none", "{1:2,2:2}", "\"none\"", "none"};
+    String[] names = {"a", "b", "c", "d", "e", "f", "g", "h", "i", "j", "k", "l", "m", "n", "s", "t", "o", "u", "v", "w", "y", "z", "da", "db", "dc", "dd"};
+    String[] values = {"none", "2", "none", "1", "none", "\"d\"", "1", "none", "{\"k\":[1]}", "3", "2", "false", "true", "none", "{1,2,5}", "set()", "{1:1,2:1}", "{}", "none", "{1:2,2:2}", "\"none\"", "none",
+      "{2,set(),{1}}", "{-1:\"x\",{\"k\":{1}}:[{}]}", "[null,true,false]", "{1}"};
     for (int r = 0; r < names.length; r++) {
       ready(0, 40);
       d.ask("data.p." + names[r]);

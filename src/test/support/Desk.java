@@ -8,7 +8,12 @@ final class Desk {
   static void same(String what, Object got, Object due) {
     if (String.valueOf(got).equals(String.valueOf(due))) return;
     wrong++;
-    System.out.println(what + " answered " + got + ", due is " + due);
+    System.out.println(what + " answered " + brief(got) + ", due is " + brief(due));
+  }
+
+  private static String brief(Object value) {
+    String s = String.valueOf(value);
+    return s.length() > 300 ? s.substring(0, 300) + " .. (" + s.length() + ")" : s;
   }
 
   /** Ends a test: tells that all is as due, or fails. */
