@@ -575,10 +575,12 @@ public final class PolicyHouseCalls extends Sheet {
         [split("zg", "g4"), "abc"] => [["zg"],"abc"]
         [trim_prefix("zh", "zh4"), "abc"] => ["zh","abc"]
         [endswith("i", "zi"), trim_suffix("j", "zj")] => [false,"j"]
-        [base64.decode("YWJ"), "abc"] => none
-        [hex.decode("41f"), "abc"] => none
-        [urlquery.decode("w%4"), "abc"] => none
-        [urlquery.decode("w%"), "abc"] => none
+        [base64.decode("YWJ"), "a01"] => none
+        [base64.decode("YW"), "a02"] => none
+        [hex.decode("41f"), "a03"] => none
+        [hex.decode("4"), "a04"] => none
+        [urlquery.decode("w%4"), "a05"] => none
+        [urlquery.decode("w%"), "a06"] => none
         [to_number("-"), "1", "abc"] => none
         [to_number("1."), "123", "abc"] => none
         [sprintf("y%", [1]), "abc"] => none
@@ -646,13 +648,32 @@ public final class PolicyHouseCalls extends Sheet {
         json.patch(data.k, [{"op": "add", "path": "/z", "value": 1}, {"op": "remove", "path": "/l"}]) => great
         """, line -> {
       int at = line.lastIndexOf(" => ");
-      String q = "x := " + line.substring(0, at) + " with data.k.m as \"abcd\"";
       String due = line.substring(at + 4);
+      String e = due.equals("great") ? "(" + line.substring(0, at) + " == 5)" : line.substring(0, at);
+      String q = "x := " + e + " with data.k.m as \"abcd\"";
       ready(q.length(), due.length() + 20);
       if (due.equals("fits")) same(q, d.number(q), "1");
       else if (due.equals("none")) same(q, d.ask(q, true), "-103");
       else same(q, d.ask(q), due.equals("great") ? "-102" : "[" + due + "]");
     });
+    world("{\"h\":\"" + ",".repeat(1999) + "\"}", "\"" + ",".repeat(2000) + "\"");
+    asks("""
+        count(split(data.h, "")) == 1999 => []
+        count(split(input, "")) == 2000 => -102
+        count(split(data.h, ",")) == 2000 => []
+        count(split(replace(input, ",", ",,"), ",")) == 4001 => -102
+        count(split(replace(input, ",,", ",z"), ",")) == 1001 => []
+        count(strings.reverse(input)) == 2000 => []
+        count(hex.encode(data.h)) == 3998 => []
+        count(hex.encode(input)) == 4000 => -102
+        count(base64.encode(input)) == 2668 => []
+        count(urlquery.encode(data.h)) == 5997 => -102
+        count(replace(data.h, ",", "ab")) == 3998 => []
+        count(replace(input, ",", "ab")) == 4000 => -102
+        count(sprintf("%s%%", [input])) == 2001 => []
+        count(sprintf("%v", [[input]])) == 2004 => []
+        count(json.marshal(input)) == 2002 => []
+        """);
     world("{\"k\":{\"" + "x".repeat(3990) + "\":1}}", null);
     asks("""
         count(object.keys(data.k)) == 2 with data.k.abcdefg as 1 => []

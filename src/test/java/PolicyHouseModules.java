@@ -985,11 +985,14 @@ public final class PolicyHouseModules extends Sheet {
       rule("a := [[[[[[1]]]]]]");
     }
     d = new Desk();
-    same("a module of literals", d.module("package p\na if {" + "b;".repeat(2991) + "b}"), 1);
+    same("a module of literals", d.mods("package p\na if {" + "1;".repeat(2989) + "false}"), "1");
+    same("each of them", d.ask("data.p.a") + d.h().covered(0), "2990");
     d = new Desk();
-    same("a module of terms", d.module("package p\na := [" + "1,".repeat(2990) + "1]"), 1);
+    same("a module of terms", d.mods("package p\na := [" + "1,".repeat(2989) + "\"b\"]"), "1");
+    same("each of them", d.ask("count(data.p.a) == 2990; x := data.p.a[2989]"), "[\"b\"]");
     d = new Desk();
-    same("a module of SIGNS", d.module("package p\na := (" + "1+".repeat(2990) + "1)"), 1);
+    same("a module of SIGNS", d.mods("package p\na := (" + "1+".repeat(2990) + "1)"), "1");
+    same("each of them", d.ask("x := data.p.a"), "[2991]");
     d = new Desk();
     same("a QUERY of COMPREHENSIONS", d.number("[" + "[1|1],".repeat(999) + "1]"), "1");
   }

@@ -401,13 +401,15 @@ public final class PolicyHousePromises extends Sheet {
       d.input("[" + i + "]");
     }
     for (int q = 0; q < 4; q++) same("DATA of QUERY " + q, runs(q), "[[" + q + "]]");
-    // The latest RUN's DATA and INPUT are of a QUERY that is no more.
+    // The latest RUN's DATA and INPUT are of a QUERY that is no more; four others have their own.
     d.data("{\"r\":[\"run\"]}");
     d.input("[\"in\"]");
     d.h().release(3);
     same("prepare", d.prepare("x := [data.r, input]"), 3);
     same("run", d.h().run(3, false), 1);
     d.h().release(3);
+    d.data("{\"q\":[3]}");
+    same("prepare", d.prepare("x := data.q"), 3);
     for (int i = 0; i < 3; i++) {
       d.data("{\"s\":[" + i + ",\"data\"]}");
       d.input("[" + i + ",\"input\"]");
@@ -416,8 +418,9 @@ public final class PolicyHousePromises extends Sheet {
     same("DATA", d.h().count(3) + " INPUT " + d.h().count(4), "10 INPUT 8");
     same("a patch", d.patch("[{\"op\":\"add\",\"path\":\"/s/0\",\"value\":[5]},{\"op\":\"add\",\"path\":\"/s/0\",\"value\":{}},{\"op\":\"remove\",\"path\":\"/s/2\"}]"), 12);
     same("its RESULT", d.out(d.h().result(0, 0)), "[[[\"run\"],[\"in\"]]]");
+    for (int q = 0; q < 4; q++) same("DATA of QUERY " + q, runs(q), "[[" + q + "]]");
+    d.h().release(3);
     same("INPUT and DATA", d.ask("x := [data.s, input]"), "[[[{},[5],\"data\"],[2,\"input\"]]]");
-    for (int q = 0; q < 3; q++) same("DATA of QUERY " + q, runs(q), "[[" + q + "]]");
     // A bundle for which the QUERY is longer.
     d = new Desk();
     d.mods("package p a := 1");

@@ -109,7 +109,7 @@ public final class PolicyHouseRoom {
       for (int k = 0; k < 100; k++) {
         int next = 100 * m + k + 133;
         String value = next < 400 ? "[data." + "abcd".charAt(next / 100) + ".r" + next % 100 + "]" : "" + (100 * m + k);
-        s.append(k == 98 && m == 3 ? "default " : "").append("r").append(k).append(":=").append(value).append(k == 99 && m == 3 ? " if {1;2}" : "").append("\n");
+        s.append(k == 99 && m == 3 ? "default " : "").append("r").append(k).append(":=").append(value).append(k == 98 && m == 3 ? " if {1;2}" : "").append("\n");
       }
       texts[m] = s.toString();
     }
@@ -117,11 +117,12 @@ public final class PolicyHouseRoom {
     Desk.same("rules", d.mods(texts), "400");
     int[][] depends = {{0, 3}, {1, 2}, {15, 2}, {16, 2}, {31, 2}, {32, 2}, {133, 2}, {134, 1}, {266, 1}, {267, 0}, {399, 0}};
     for (int[] r : depends) Desk.same("on how many " + r[0] + " DEPENDS", d.h().rule(r[0], 4), r[1]);
-    Desk.same("MODULE and PLACE", d.h().rule(399, 1) + " " + d.h().rule(399, 2), "3 " + texts[3].indexOf("r99"));
+    Desk.same("MODULE and PLACE", d.h().rule(399, 1) + " " + d.h().rule(399, 2), "3 " + texts[3].indexOf("default"));
     Desk.same("x := data.a.r0", d.ask("x := data.a.r0"), "[[[[399]]]]");
     Desk.same("DOCUMENTS", d.out(d.h().document(0)) + d.out(d.h().document(266)) + d.out(d.h().document(399)) + d.h().document(1) + d.h().document(400), "[[[399]]][399]399-1-1");
-    Desk.same("covered", d.h().covered(399) + " " + d.h().covered(398) + " " + d.h().covered(400), "2 0 -1");
+    Desk.same("covered", d.h().covered(399) + " " + d.h().covered(398) + " " + d.h().covered(400), "0 0 -1");
     Desk.same("x := data.c.r65", d.ask("x := [data.a.r31, data.a.r32, data.c.r65, data.d.r98]"), "[[[[297]],[[298]],[398],398]]");
+    Desk.same("covered", d.h().covered(399) + " " + d.h().covered(398), "0 2");
     Desk.same("with", d.ask("x := [data.a.r0, data.a.r1] with data.d.r99 as 7 with data.b.r34 as 8"), "[[[[[7]]],[8]]]");
     Desk.same("all of them", d.ask("x := [count(data.a), count(data.d), count(data)]"), "[[100,100,4]]");
     d = new Desk();
@@ -134,6 +135,19 @@ public final class PolicyHouseRoom {
     Desk.same("three withs", d.ask("data.w.b with input as 1"), "[]");
   }
 
+  /** A heavy DRAFT that is looked at again and again. */
+  private static void again() {
+    d = new Desk();
+    d.module("package p\na if {" + "b;".repeat(2500) + "false} else := 5\nb := 1\n");
+    for (int i = 0; i < 3; i++) {
+      Desk.same("check", d.h().check(), 0);
+      d.module("package q" + i + "\nc := " + i);
+    }
+    Desk.same("rules", d.h().activate(), 5);
+    Desk.same("as it says", d.ask("x := [data.p.a, data.q0.c, data.q2.c]"), "[[5,0,2]]");
+    Desk.same("TRIES", d.h().covered(0), 2501);
+  }
+
   public static void main(String[] args) {
     defaults();
     empties();
@@ -141,6 +155,7 @@ public final class PolicyHouseRoom {
     keys();
     prints();
     rules();
+    again();
     Desk.end("room");
   }
 }

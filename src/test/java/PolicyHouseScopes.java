@@ -92,9 +92,12 @@ public final class PolicyHouseScopes extends Sheet {
         some k; data[k] with data.d as 3 => ["a"] ["b"] ["d"] @ 1+1+100+1+3+3*3
         some k; data[k] with data.a as 3 => ["a"] ["b"] @ 1+1+100+1+2+2*3
         """);
-    world("{}", null, "package a");
+    world("{\"e\":{\"g\":5,\"h\":{\"i\":6}}}", null, "package a", "package e");
     asks("""
-        x := data => [{"a":{}}] @ 1+4+5
+        x := data => [{"a":{},"e":{"g":5,"h":{"i":6}}}] @ 1+16+17
+        x := data.e; y := x.g => [{"g":5,"h":{"i":6}},5] @ 1+10+1+12
+        x := data.e; y := x.h => [{"g":5,"h":{"i":6}},{"i":6}] @ 1+10+1+15
+        x := data.e; y := input with input as 7 => [{"g":5,"h":{"i":6}},7]
         """);
     world(null, null);
   }
@@ -266,7 +269,7 @@ public final class PolicyHouseScopes extends Sheet {
         h(x) := 1 if { g(x) with input as 1 }
         i(x) := 1 if { h(x) }
         j := 1 if { 1 with input as i(1) }
-        """);
+        """, "package v\ny := 1");
     asks("""
         -- by what its LITERALS read: FUNCTIONS, too; what EXPRESSIONS behind as read counts without it
         data.w.g(1) with input as 1 => []

@@ -368,6 +368,8 @@ public final class PolicyHouseWays extends Sheet {
         every i, x in [10, 20, 30] { data.a[i] == 10 } => @ 1+4+3*4
         every i, x in [20, 20, 30] { data.a[i] == x } =>
         every x in [0, 1] { data.a[x] == 10 } =>
+        every i, x in [0, 1] { data.a[x] == 10 } =>
+        every i, x in [0, 0] { data.a[x] == 10 } => []
         every x in [1, 2] { some y; [x, y] = [1, 5] } =>
         every x in [1, 1] { some y; [x, y] = [1, 5] } => []
         every i, x in [5, 5] { some y; [i, x, y] = [0, 5, 6] } =>
@@ -583,6 +585,8 @@ public final class PolicyHouseWays extends Sheet {
         default db := {{"k": {1}}: [{}], -1: `x`}
         default dc := (([null, true, (false)]))
         default dd := {1, 1.0}
+        de := 1 if { false } else := 2 if { false } else := 3 if { false } else := 4 if { false } else := 5 if { false } else := 6 if { false } else := 7 if { false } else := 8 if { false } else := 9
+        df := 1 if { false } else := 2 if { false } else := 3 if { false } else := 4 if { false } else := 5 if { false } else := 6 if { false } else := 7 if { false } else := 8 if { true } else := 9
         """);
     asks("""
         -- Of a complete rule: of each PART that is no default, by its BRANCHES in order, the first that has a value in some WAY
@@ -618,9 +622,9 @@ public final class PolicyHouseWays extends Sheet {
         x := data.p.w => [{1:2,2:2}]
         x := data.p.o[2] => [1]
         """);
-    String[] names = {"a", "b", "c", "d", "e", "f", "g", "h", "i", "j", "k", "l", "m", "n", "s", "t", "o", "u", "v", "w", "y", "z", "da", "db", "dc", "dd"};
+    String[] names = {"a", "b", "c", "d", "e", "f", "g", "h", "i", "j", "k", "l", "m", "n", "s", "t", "o", "u", "v", "w", "y", "z", "da", "db", "dc", "dd", "de", "df"};
     String[] values = {"none", "2", "none", "1", "none", "\"d\"", "1", "none", "{\"k\":[1]}", "3", "2", "false", "true", "none", "{1,2,5}", "set()", "{1:1,2:1}", "{}", "none", "{1:2,2:2}", "\"none\"", "none",
-      "{2,set(),{1}}", "{-1:\"x\",{\"k\":{1}}:[{}]}", "[null,true,false]", "{1}"};
+      "{2,set(),{1}}", "{-1:\"x\",{\"k\":{1}}:[{}]}", "[null,true,false]", "{1}", "9", "8"};
     for (int r = 0; r < names.length; r++) {
       ready(0, 40);
       d.ask("data.p." + names[r]);
@@ -628,6 +632,22 @@ public final class PolicyHouseWays extends Sheet {
       same("DOCUMENT of another one", d.h().document(r == 0 ? 1 : 0), -1);
     }
     same("no such rule", d.h().document(-1) + " " + d.h().document(names.length), "-1 -1");
+    world(null, null);
+  }
+
+  /** Rules that all have as many BRANCHES as may be. */
+  private static void branches() {
+    StringBuilder s = new StringBuilder("package p\n");
+    for (int r = 0; r < 5; r++) {
+      s.append("r").append(r).append(" := 0 if { false }");
+      for (int i = 1; i <= 8; i++) s.append(" else := ").append(i).append(" if { ").append(i == 4 + r).append(" }");
+      s.append("\n");
+    }
+    world("{}", null, s.toString());
+    asks("""
+        x := data.p => [{"r0":4,"r1":5,"r2":6,"r3":7,"r4":8}]
+        """);
+    same("TRIES", d.h().covered(0) + " " + d.h().covered(4), "5 9");
     world(null, null);
   }
 
@@ -639,6 +659,7 @@ public final class PolicyHouseWays extends Sheet {
     results();
     functions();
     documents();
+    branches();
     Desk.end("ways");
   }
 }
