@@ -538,6 +538,7 @@ public final class PolicyHouseCalls extends Sheet {
         urlquery.decode("") => ""
         urlquery.decode("&=/") => "&=/"
         urlquery.decode("%41") => "A"
+        urlquery.decode("%0a%00%F0%0F") => "\\n\\u0000ð\\u000f"
         urlquery.decode("%") => none
         urlquery.decode("%4") => none
         urlquery.decode("a%4") => none
@@ -685,10 +686,36 @@ public final class PolicyHouseCalls extends Sheet {
     world(null, null);
   }
 
+  /** walk at its edges: a WEIGHT of 4000 and 4001, 20 DEEP and 21. */
+  private static void walks() {
+    for (int n = 3996; n <= 3997; n++) {
+      d = new Desk();
+      d.input("\"" + "x".repeat(n) + "\"");
+      same("walk of a string of " + n, d.ask("count(walk(input)) == 1"), n == 3996 ? "[]" : "-102");
+      same("its FUEL", d.h().about(2), 1 + n + 1 + 4000 + (n == 3996 ? 4000 + 1 + 2 + 1 + 1 : 0));
+    }
+    // An array of a string of n bytes and numbers: n stands twice in it.
+    int[][] arrays = {{1995, 0, 3999}, {1996, 0, 4001}, {1993, 1, 4000}, {1994, 1, 4002}};
+    for (int[] a : arrays) {
+      d = new Desk();
+      d.input("[\"" + "x".repeat(a[0]) + "\"" + ",5".repeat(a[1]) + "]");
+      same("walk that has a WEIGHT of " + a[2], d.ask("count(walk(input)) == " + (2 + a[1])), a[2] <= 4000 ? "[]" : "-102");
+      same("its FUEL", d.h().about(2), 1 + 2 + a[0] + a[1] + (a[2] > 4000 ? 4000 : 2 * a[2] + 1 + 2 + 1 + 1));
+    }
+    d = new Desk();
+    d.input("[".repeat(12) + "1" + "]".repeat(12));
+    same("walk of what is 18 DEEP", d.number("a := [[[[[input]]]]]; count(walk(a)) == 18"), "1");
+    same("walk of what is 19 DEEP", d.ask("a := [[[[[input]]]]]; count(walk([a])) == 19"), "-102");
+    same("walk of what is 20 DEEP", d.ask("a := [[[[[input]]]]]; count(walk([[a]])) == 20"), "-102");
+    same("walk of keys that are 17 DEEP", d.ask("a := [[[[input]]]]; count(walk({a: 1})) == 2; x := 1"), "[" + "[".repeat(16) + "1" + "]".repeat(16) + ",1]");
+    same("walk of keys that are 18 DEEP", d.ask("a := [[[[[input]]]]]; count(walk({a: 1})) == 2; x := 1"), "-102");
+  }
+
   public static void main(String[] args) {
     numbers();
     strings();
     rows();
+    walks();
     patches();
     codes();
     ends();

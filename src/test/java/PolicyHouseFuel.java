@@ -160,6 +160,37 @@ public final class PolicyHouseFuel extends Sheet {
         json.patch(data.o, [{"op": "remove", "path": "/x"}, {"op": "remove", "path": "/x"}]) => @ 1+19+19+39+7+39+4
         json.patch(data.o, [{"op": "remove", "path": "/x"}, {"op": "remove", "path": "/y"}]) => [] @ 1+19+19+39+7+39+4+1+1+1
         """);
+    world("{\"a\":[1,2,3]}", null, """
+        package w
+        a := 1 if { data.a[_] > 0 }
+        a := 1 if { data.a[_] > 0 } else := 2 if { data.a[_] > 0 }
+        b := 1
+        b := 2 if { true; true }
+        b := 3 if { true; true; true }
+        f(x) := 1 if { true; true }
+        f(1) := 1 if { true; true; true }
+        g(x) := x if { some y in data.a; y > 1 } else := 5 if { true }
+        h(x) := y if { some y in data.a }
+        o[1] := x if { some x in data.a }
+        """);
+    asks("""
+        -- All is gone through wholly: nothing is left out because something was found (but BRANCHES behind one that has a value)
+        data.w.a => [] @ 13+13+1+1
+        data.w.b => -101 @ 2+3+1
+        data.w.f(1) => [] @ 1+1+2+3+1
+        data.w.f(2) => [] @ 1+1+2+1
+        data.w.g(7) => [] @ 1+1+16+1
+        data.w.h(0) => -101 @ 1+1+4
+        data.w.o => -101 @ 1+3+1
+        not data.a[_] => @ 1+3
+        not data.a[_] > 0 => @ 1+3+9
+        every x in data.a { data.a[_] > x } => @ 1+3*13
+        x := data.a; x[_] = 1 => [[1,2,3]] @ 2+3+5
+        1 = data.a[_] => [] @ 1+3+1
+        -- (to MATCH ends where a part does not)
+        [4, {1}] := [1, {1}] => @ 1+2+4
+        {"k": 4, "l": {1}} := {"k": 1, "l": {1}} => @ 1+2+8+1
+        """);
     world(null, null);
   }
 

@@ -165,6 +165,26 @@ public final class PolicyHouseRun {
     Desk.same("depends", d.h().rule(69, 4) + " " + d.h().rule(34, 4), "1 0");
   }
 
+  /** Names that are beginnings of others, and such as a table may take for one another. */
+  private static void alike() {
+    String[] names = {"k", "kbvz", "ksxk", "ab", "abkvj", "aab", "rbo", "aaa", "rbp", "a", "aa", "b", "ba", "A", "_", "_a"};
+    for (int turn = 0; turn < 2; turn++) {
+      StringBuilder data = new StringBuilder("{");
+      String m = "package m\n";
+      for (int i = 0; i < names.length; i++) {
+        String name = names[turn == 0 ? i : names.length - 1 - i];
+        data.append(i > 0 ? "," : "").append("\"").append(name).append("\":").append(i);
+        if (!name.equals("_")) m += name + " := [" + i + "]\n";
+      }
+      house("{\"d\":" + data + "}}", null, m);
+      for (int i = 0; i < names.length; i++) {
+        String name = names[turn == 0 ? i : names.length - 1 - i];
+        same("x := data.d." + name, "[" + i + "]");
+        same("x := data.m." + name, name.equals("_") ? "" : "[[" + i + "]]");
+      }
+    }
+  }
+
   private static void nested() {
     house("{\"d\":1}", null, "package p\nv := data.d\nw if { v == 2 }\nt contains x if { x := v with data.d as 3 }\n"
         + "t contains x if { x := w with data.d as 2 }\nu if { t[3] with data.p.v as 9 }\n");
@@ -349,6 +369,7 @@ public final class PolicyHouseRun {
     tree();
     variables();
     many();
+    alike();
     nested();
     noted();
     greats();

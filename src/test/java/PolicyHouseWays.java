@@ -72,6 +72,8 @@ public final class PolicyHouseWays extends Sheet {
         some i, j; x := data.r[i][j] => [0,0,1] [0,1,2] [1,0,3] [5,"k",6]
         some i; x := data.r[i][i] => [0,1]
         some i; data.a[i] == 20; x := data.a[i] => [1,20]
+        z := 5; some i; data.a[i] == 20; x := data.a[i] => [5,1,20]
+        some i, j; x := data.r[i][j]; y := data.r[j][i] => [0,0,1,1] [0,1,2,3] [1,0,3,2]
         x := [data.a[_] | true] => [[10,20,30]]
         -- STEPS by EXPRESSIONS behind others
         x := data.r[_][2 - 1] => [2]
@@ -367,6 +369,9 @@ public final class PolicyHouseWays extends Sheet {
         every i, x in [10, 20, 30] { data.a[i] == x } => [] @ 1+4+3*4+1
         every i, x in [10, 20, 30] { data.a[i] == 10 } => @ 1+4+3*4
         every i, x in [20, 20, 30] { data.a[i] == x } =>
+        z := 5; every i, x in [10, 20, 30] { data.a[i] == x } => [5]
+        z := 5; every i, x in [20, 20, 30] { data.a[i] == x } =>
+        z := 5; every i, x in [10, 20, 30] { i = z; x } =>
         every x in [0, 1] { data.a[x] == 10 } =>
         every i, x in [0, 1] { data.a[x] == 10 } =>
         every i, x in [0, 0] { data.a[x] == 10 } => []
@@ -394,6 +399,12 @@ public final class PolicyHouseWays extends Sheet {
         _ = 5 => []
         x := 5; x = 5.0 => [5]
         x := 5; x = 6 =>
+        z := 1; x := 5; x = 5.0 => [1,5]
+        z := 1; x := 5; x = 6 =>
+        z := 1; x := 5; 6 = x =>
+        some z, x; [z, x, x] = [1, 5, 5] => [1,5]
+        some z, x; [z, x, x] = [1, 5, 6] =>
+        some z, x; {1: z, 2: x, 3: [x]} = {1: 4, 2: 5, 3: [6]} =>
         some x; [x, x] = [5, 5] => [5]
         some x; [x, x] = [5, 6] =>
         some x, y; [x, y, x] = [5, 6, 5] => [5,6]
@@ -502,6 +513,7 @@ public final class PolicyHouseWays extends Sheet {
         e(x) if { x == 1 }
         e(x) := false if { x == 2 }
         i(x) := (input.v + x)
+        j(x, y) if { y = x }
         """);
     asks("""
         -- Of a FUNCTION: as of a complete rule, in a WAY of its own in which its PARAMETERS MATCH the operands (a PART of which one does not has no value)
@@ -529,6 +541,8 @@ public final class PolicyHouseWays extends Sheet {
         x := data.p.e(1) => [true]
         x := data.p.e(2) => [false]
         x := data.p.e(3) =>
+        x := data.p.j(2, 2) => [true]
+        x := data.p.j(2, 3) =>
         data.p.e(1) => []
         data.p.e(2) =>
         not data.p.e(2) => []
