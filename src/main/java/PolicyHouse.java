@@ -368,7 +368,9 @@ public final class PolicyHouse {
     static final int RUN = 258000;
     static final int SPILL = 820000;
     static final int CELLS = 886000;
+    // What with makes of DATA may be greater: 65 deep and some 200000 by the FUEL that it takes.
     static final int LAX = 4000000;
+    static final int LAXDEEP = 100;
 
     final int[] cell = new int[CELLS];
     final int[] acc = new int[90000];
@@ -384,7 +386,7 @@ public final class PolicyHouse {
       cell[TRUE] = 2;
       for (int kind = ARRAY; kind <= SET; kind++) {
         cell[empty(kind)] = kind;
-        cell[empty(kind) + 1] = 1 << 6 | 1;
+        cell[empty(kind) + 1] = 1 << 8 | 1;
       }
     }
 
@@ -440,11 +442,11 @@ public final class PolicyHouse {
     int weight(int h) {
       int kind = cell[h] & 15;
       if (kind <= NUMBER) return 1;
-      return kind == STRING ? 1 + (cell[h] >>> 4) : cell[h + 1] >>> 6;
+      return kind == STRING ? 1 + (cell[h] >>> 4) : cell[h + 1] >>> 8;
     }
 
     int depth(int h) {
-      return (cell[h] & 15) <= STRING ? 1 : cell[h + 1] & 63;
+      return (cell[h] & 15) <= STRING ? 1 : cell[h + 1] & 255;
     }
 
     boolean tooGreat(int h) {
@@ -582,10 +584,10 @@ public final class PolicyHouse {
         weight += weight(acc[i]);
         depth = Math.max(depth, depth(acc[i]));
       }
-      if (weight > (lax ? LAX : HEAVY) || depth >= (lax ? 62 : DEEP)) return BIG;
+      if (weight > (lax ? LAX : HEAVY) || depth >= (lax ? LAXDEEP : DEEP)) return BIG;
       int h = room(n * step + 2);
       cell[h] = kind | n << 4;
-      cell[h + 1] = weight << 6 | depth + 1;
+      cell[h + 1] = weight << 8 | depth + 1;
       System.arraycopy(acc, base, cell, h + 2, n * step);
       return h;
     }
@@ -4251,7 +4253,7 @@ public final class PolicyHouse {
   /** Signs, and built-ins of numbers, rows and all values; 0 is no value, BIG is too great. */
   static final class Builtins {
     static final long BAD = -9000000000000000000L;
-    static final int STEPS = 60;
+    static final int STEPS = Heap.LAXDEEP;
     static final String WEEK = "Thursday Friday Saturday Sunday Monday Tuesday Wednesday ";
     final Heap heap;
     final Texts texts;

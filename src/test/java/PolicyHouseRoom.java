@@ -71,6 +71,53 @@ public final class PolicyHouseRoom {
     Desk.same("a short one again", d.out(d.h().document(0)), "none");
   }
 
+  /** A row of rules each of which puts the DOCUMENT of the last one five names deeper into DATA: up to 65 DEEP, by all FUEL. */
+  private static void deep() {
+    String step = "data.d.b.c.d.e.f";
+    String names = "{\"b\":{\"c\":{\"d\":{\"e\":{\"f\":".repeat(9);
+    String rows = "[".repeat(19) + "7" + "]".repeat(19);
+    String path = "/b/c/d/e/f".repeat(9);
+    int base = 14 + 15 + 16 + 17 + 18 + 19 + 20;
+    for (int n = 7; n <= 10; n++) {
+      d = new Desk();
+      StringBuilder m = new StringBuilder("package p\ne := [[[[[[input]]]]]]\ng := [e]\n");
+      for (int i = 0; i < n; i++) {
+        m.append("r").append(i).append(" := x if { x := data.d with ").append(step).append(" as ").append(i == 0 ? "g" : "r" + (i - 1)).append(" }\n");
+      }
+      Desk.same("rules", d.mods(m.toString()), "" + (n + 2));
+      d.input("[".repeat(12) + "7" + "]".repeat(12));
+      String last = "data.p.r" + (n - 1);
+      Desk.same("a row of " + n, d.ask(last), n < 10 ? "[]" : "-104");
+      if (n == 10) continue;
+      Desk.same("its FUEL", d.h().about(2), base + n * 4101 + 2);
+      int bytes = names.length() / 9 * n + rows.length() + 5 * n;
+      Desk.same("DOCUMENT", d.h().document(n + 1), bytes);
+      String all = names.substring(0, names.length() / 9 * n) + rows;
+      for (int i = 0; i < all.length(); i += 7) Desk.same("byte " + i, d.h().output(i), (int) all.charAt(i));
+      String great = n < 9 ? "-102" : "-104";
+      Desk.same("a result of it", d.ask("x := " + last), great);
+      Desk.same("in an array", d.ask("[" + last + "]"), great);
+      String from = path.substring(0, 10 * n) + "/0".repeat(19);
+      Desk.same("out of it", d.ask("x := json.patch(" + last + ", [{\"op\": \"copy\", \"from\": \"" + from + "\", \"path\": \"\"}])"), "[7]");
+      Desk.same("not out of it", d.ask("x := json.patch(" + last + ", [{\"op\": \"copy\", \"from\": \"" + from + "/0\", \"path\": \"\"}])", true), "-103");
+      Desk.same("walk", d.ask("walk(" + last + ")"), great);
+    }
+  }
+
+  /** The same by a FUNCTION that is called for what it gave: nine times, with what is 17 DEEP. */
+  private static void deepCalls() {
+    d = new Desk();
+    Desk.same("rules", d.mods("package p\nf(v) := x if { x := data.d with data.d.b.c.d.e.f as v }\ng(v) := f(f(f(v)))\nh(v) := g(g(g(v)))\n"), "3");
+    d.input("[".repeat(12) + "7" + "]".repeat(12));
+    int objects = 45;
+    int arrays = 12 + 4;
+    int json = objects * 6 + 2 * arrays + 1;
+    Desk.same("json.marshal", d.begin("w := json.marshal(data.p.h([[[[input]]]]))", 8), (json + 2 * objects + 4) + " [\"{\\\"b\\\"");
+    int last = objects * 3 + 13 + 4;
+    Desk.same("its FUEL", d.h().about(2), 1 + 14 + 15 + 16 + 17 + 1 + 3 + 9 * 102 + 9 * 4000 + last + json + 1 + json + 2);
+    Desk.same("one more", d.ask("w := json.marshal(data.p.f(data.p.h([[[input]]])))"), "-104");
+  }
+
   /** STEPS by _ go through the keys of THE TREE, whose WEIGHTS may be more than 4000: nobody makes a set of them. */
   private static void keys() {
     d = new Desk();
@@ -152,6 +199,8 @@ public final class PolicyHouseRoom {
     defaults();
     empties();
     greats();
+    deep();
+    deepCalls();
     keys();
     prints();
     rules();
