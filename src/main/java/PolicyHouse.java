@@ -368,7 +368,7 @@ public final class PolicyHouse {
     static final int RUN = 258000;
     static final int SPILL = 820000;
     static final int CELLS = 886000;
-    // What with makes of DATA may be greater: 65 deep and some 200000 by the FUEL that it takes.
+    // What with makes of DATA may be greater: 65 deep and some 256000 by the FUEL that it takes.
     static final int LAX = 4000000;
     static final int LAXDEEP = 100;
 
