@@ -11,6 +11,9 @@ public final class PolicyHouse {
   private static final int FEEDS = 512;
   private static final int MODULES = 4;
   private static final int QUERIES = 4;
+  // A DOCUMENT that with made of THE TREE has at most some 14 million bytes: room for one is made
+  // at once, and used again, so that OUTPUTS each greater than the last one do not fill the room.
+  private static final int GREATEST = 1900000;
 
   private final Heap heap = new Heap();
   private final Texts texts = new Texts(heap);
@@ -274,10 +277,7 @@ public final class PolicyHouse {
     texts.show(h, json, 0);
     if (texts.over) return NONE;
     bytes = texts.length;
-    // A DOCUMENT may be greater than all that is made, if a with made it of THE TREE.
-    int size = shown.length;
-    for (int i = 0; i < 30 && 8 * size < bytes; i++) size *= 2;
-    if (size > shown.length) shown = new long[size];
+    if (bytes > 8 * shown.length) shown = new long[Math.max(GREATEST, bytes / 8 + 1)];
     texts.pack(bytes, shown);
     texts.show(h, json, 0);
     return bytes;
@@ -368,7 +368,7 @@ public final class PolicyHouse {
     static final int RUN = 258000;
     static final int SPILL = 820000;
     static final int CELLS = 886000;
-    // What with makes of DATA may be greater: 65 deep and some 256000 by the FUEL that it takes.
+    // What with makes of DATA may be greater: 65 deep and some 680000 by the FUEL that it takes.
     static final int LAX = 4000000;
     static final int LAXDEEP = 100;
 

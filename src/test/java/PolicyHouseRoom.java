@@ -1,3 +1,5 @@
+import java.lang.management.ManagementFactory;
+
 // Promises 15 to 20: what takes much room without much FUEL, and values that with makes TOO GREAT.
 public final class PolicyHouseRoom {
   private static Desk d = new Desk();
@@ -32,11 +34,11 @@ public final class PolicyHouseRoom {
     holds("every i in numbers.range(1, 380) { not data.p[i] with input as i }", 1 + 2 + 381 + 380 * 102 + 1);
   }
 
-  /** DATA of 3455, in which 17 rows of numbers are, of 20 bytes each. */
-  private static void fill() {
+  /** DATA in which a row of numbers, of 20 bytes each, and so many copies of it are. */
+  private static void fill(int copies) {
     Desk.same("data", d.data("{\"d\":{\"n\":[" + "-123456789012.123456,".repeat(199) + "1]}}"), 207);
-    for (int i = 0; i < 16; i++) d.patch("[{\"op\":\"copy\",\"from\":\"/d/n\",\"path\":\"/d/" + (char) ('A' + i) + "\"}]");
-    Desk.same("weight", d.h().count(3), 207 + 16 * 203);
+    for (int i = 0; i < copies; i++) d.patch("[{\"op\":\"copy\",\"from\":\"/d/n\",\"path\":\"/d/" + (char) ('A' + i) + "\"}]");
+    Desk.same("weight", d.h().count(3), 207 + copies * 203);
   }
 
   private static String four(String as) {
@@ -50,7 +52,7 @@ public final class PolicyHouseRoom {
     d = new Desk();
     d.mods("package p\na := 1 if true" + four("abcd") + "\nb := x if { x := data.d" + four("abcd") + " }\n"
         + "c := [x] if { x := data.d" + four("a") + " }\ne := count(x) if { x := data.d" + four("ab") + " }\n");
-    fill();
+    fill(16);
     int made = 4 * 4000 + 100;
     holds("data.p.a", 1 + 1 + made + 1);
     holds("data.p.a" + four("efgh"), 1 + made + 1 + made + 1);
@@ -69,6 +71,38 @@ public final class PolicyHouseRoom {
     for (int i = 0; i < begin.length; i++) Desk.same("byte " + i, d.h().output(i), begin[i]);
     Desk.same("last bytes", d.h().output(one - 4) + " " + d.h().output(one - 1) + " " + d.h().output(one), "44 125 -1");
     Desk.same("a short one again", d.out(d.h().document(0)), "none");
+  }
+
+  private static long allocated() {
+    return ((com.sun.management.ThreadMXBean) ManagementFactory.getThreadMXBean()).getThreadAllocatedBytes(Thread.currentThread().getId());
+  }
+
+  private static void greatDocument(int rule, int due) {
+    Desk.same("DOCUMENT of " + rule, d.h().document(rule), due);
+    Desk.same("its last bytes", "" + (char) d.h().output(due - 2) + (char) d.h().output(due - 1) + d.h().output(due), "]}-1");
+  }
+
+  /** The greatest that nine TARGETS make of DATA: withs within withs, each of which doubles what there is; OUTPUT grows but once. */
+  private static void greatest() {
+    d = new Desk();
+    d.mods("package p\na2 := v if { v := data.d with data.d.b as data.d }\na1 := v if { v := a2 with data.d.a as data.d }\n"
+        + "b3 := v if { v := data.d with data.d.c as data.d }\nb2 := v if { v := b3 with data.d.b as data.d }\nb1 := v if { v := b2 with data.d.a as a1 }\n"
+        + "c3 := v if { v := data.d with data.d.c as data.d }\nc2 := v if { v := c3 with data.d.b as data.d }\n"
+        + "c1 := v if { v := c2 with data.d.a as b1 with data.d.e as b1 }\n");
+    fill(18);
+    holds("data.p.c1", 1 + 9 * 4000 + 8 * 100 + 8 + 1);
+    int row = 199 * 21 + 3;
+    int own = 19 * (row + 4) + 18 + 2;
+    int a = 2 * (2 * own + 5) + 5;
+    int b = 2 * (2 * (own + 5 + a) + 5) + 5;
+    int c = 2 * (2 * (own + 2 * (5 + b)) + 5) + 5;
+    long before = allocated();
+    greatDocument(1, a);
+    greatDocument(4, b);
+    greatDocument(7, c);
+    greatDocument(4, b);
+    long taken = allocated() - before;
+    Desk.same("OUTPUT of " + c + " takes less than 16 million bytes", taken < 16000000, true);
   }
 
   /** A row of rules each of which puts the DOCUMENT of the last one five names deeper into DATA: up to 65 DEEP, by all FUEL. */
@@ -199,6 +233,7 @@ public final class PolicyHouseRoom {
     defaults();
     empties();
     greats();
+    greatest();
     deep();
     deepCalls();
     keys();
